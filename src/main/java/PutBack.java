@@ -254,7 +254,7 @@ public final class PutBack {
         Text from = slotAt(view);
         Text old = slotAt(source);
         machine.rest();
-        if (told == null || told != repeatedOf(told) || from == null || old == null) {
+        if (told == null || told.kind == THEN || repeatedOf(told) == null || from == null || old == null) {
             return NONE;
         }
         return machine.partInto(told, from, old, i);
@@ -1320,12 +1320,16 @@ public final class PutBack {
                 case '[':
                     return ranges();
                 case '(':
-                    TextSet within = takeOpening() ? choice() : null;
-                    return within != null && takeClosing() ? within : null;
+                    return enclosed();
                 default:
                     refuse(CANT_STAND, place);
                     return null;
             }
+        }
+
+        private TextSet enclosed() {
+            TextSet within = takeOpening() ? choice() : null;
+            return within != null && takeClosing() ? within : null;
         }
 
         private TextSet choice() {
@@ -1386,7 +1390,7 @@ public final class PutBack {
         private TextSet ranges() {
             long signs = 0;
             place++;
-            while (place < length && tape[place] != ']') {
+            for (int i = 0; i < TAPE_BYTES && place < length && tape[place] != ']'; i++) {
                 int low = takeBound(0);
                 int high = low;
                 if (low != NONE && place < length && tape[place] == '-') {
@@ -1565,13 +1569,10 @@ public final class PutBack {
             if (many <= 0 || at < 0 || to > from.length) {
                 return;
             }
-            byte[] read = from;
             if (top + many > store.length) {
-                byte[] wider = Arrays.copyOf(store, 2 * (top + many));
-                read = from == store ? wider : from;
-                store = wider;
+                store = Arrays.copyOf(store, 2 * (top + many));
             }
-            System.arraycopy(read, at, store, top, many);
+            System.arraycopy(from, at, store, top, many);
             top += many;
         }
 
@@ -1627,7 +1628,7 @@ public final class PutBack {
                         append(now.quoted, 0, now.quoted.length);
                         break;
                     case ROW:
-                        good = splitRow(now, SOURCE, c, d) && showRow(now);
+                        good = splitRow(now, SOURCE, c, d) && awaitAsSeen(now);
                         break;
                     case BRANCHES:
                         good = showBranch(now, c, d);
@@ -1670,7 +1671,8 @@ public final class PutBack {
             return at == finish;
         }
 
-        private boolean showRow(Lens row) {
+        /** The kids of a row wait in the order in which the view has them. */
+        private boolean awaitAsSeen(Lens row) {
             for (int i = row.order.length - 1; i >= 0; i--) {
                 int k = row.order[i];
                 if (k < 0 || k >= row.kids.length || k >= MOST_KIDS) {
@@ -1942,12 +1944,15 @@ public final class PutBack {
                 Lens now = waiting[waits];
                 int v = ranges[4 * waits];
                 int w = ranges[4 * waits + 1];
-                switch (now.hasKey ? now.kind : DICT) {
+                if (!now.hasKey) {
+                    continue;
+                }
+                switch (now.kind) {
                     case KEY:
                         append(store, v, w);
                         break;
                     case ROW:
-                        good = splitRow(now, VIEW, v, w) && showRow(now);
+                        good = splitRow(now, VIEW, v, w) && awaitAsSeen(now);
                         break;
                     case BRANCHES:
                         good = keyBranch(now, v, w);
@@ -1956,7 +1961,7 @@ public final class PutBack {
                         good = backPart(now, v, w, NONE, NONE);
                         break;
                     case THEN:
-                        await(now.lastKid(), v, w, NONE, NONE);
+                        good = keyThen(now, v, w);
                         break;
                     default:
                         break;
@@ -1965,6 +1970,14 @@ public final class PutBack {
             good = good && waits == bottom;
             waits = bottom;
             return good;
+        }
+
+        private boolean keyThen(Lens then, int from, int to) {
+            Lens last = then.lastKid();
+            if (last != null) {
+                await(last, from, to, NONE, NONE);
+            }
+            return last != null;
         }
 
         private boolean keyBranch(Lens branches, int from, int to) {

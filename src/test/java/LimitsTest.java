@@ -1,0 +1,254 @@
+import java.lang.management.ManagementFactory;
+
+/** Deep and repeated lenses, wild numbers in every state, and the room that a run takes. */
+public final class LimitsTest {
+    private static final int[] WILD = {Integer.MIN_VALUE, -61, -3, -2, -1, 0, 1, 2, 3, 5, 7, 8, 20, 59, 60, 61, 599, 600,
+        999, 1000, Integer.MAX_VALUE - 1, Integer.MAX_VALUE};
+
+    private static long state = 5;
+
+    private LimitsTest() {
+    }
+
+    private static int pick(int n) {
+        state = state * 6364136223846793005L + 1442695040888963407L;
+        return (int) Math.floorMod(state >>> 33, (long) n);
+    }
+
+    public static void main(String[] args) {
+        deepBranches();
+        deepStars();
+        deepSwaps();
+        deepThens();
+        emptyParts();
+        manyDicts();
+        tower();
+        wildNumbers();
+        roomOfLenses();
+        roomOfLaws();
+        Calls.finish("LimitsTest");
+    }
+
+    private static String repeated(String text, int times) {
+        return text.repeat(times);
+    }
+
+    /** Twelve levels in each definition, and each one within the next. */
+    private static PutBack nested(String begin, String core, String end, int definitions) {
+        PutBack x = new PutBack();
+        for (int i = 0; i < definitions; i++) {
+            String inner = i == 0 ? core : "l" + (char) ('a' + i - 1);
+            String told = "l" + (char) ('a' + i) + "=" + repeated(begin, 12) + inner + repeated(end, 12);
+            Calls.due("define " + told, Calls.define(x, told), i);
+        }
+        return x;
+    }
+
+    private static void roundTrip(PutBack x, int lens, String source, String view, String anew) {
+        Calls.say(x, 0, source);
+        Calls.due("get " + source, x.get(lens, 0, 1), view.length());
+        Calls.due("get " + source, Calls.read(x, 1), view);
+        Calls.due("put " + source, x.put(lens, 1, 0, 2), source.length());
+        Calls.due("put " + source, Calls.read(x, 2), source);
+        Calls.due("create " + source, x.create(lens, 1, 2), anew.length());
+        Calls.due("create " + source, Calls.read(x, 2), anew);
+    }
+
+    private static void deepBranches() {
+        PutBack x = nested("(copy\"\"|copy\"b\".", "copy\"\"", ")", 5);
+        for (int n = 0; n <= 60; n += 12) {
+            roundTrip(x, 4, repeated("b", n), repeated("b", n), repeated("b", n));
+        }
+        Calls.due("positions", x.set(4, 0, 0), 60);
+        Calls.due("laws", x.laws(4, 2, 5), 0);
+    }
+
+    private static void deepStars() {
+        PutBack x = nested("copy\"a\".(", "copy\"b\"", ")*.copy\"c\"", 2);
+        String deep = repeated("a", 24) + "b" + repeated("c", 24);
+        roundTrip(x, 1, deep, deep, deep);
+        roundTrip(x, 1, "aacacaaccc", "aacacaaccc", "aacacaaccc");
+    }
+
+    private static void deepSwaps() {
+        PutBack x = nested("swap(copy[a-z],", "copy[0-9]", ")", 4);
+        String source = "abcdefghijklmnopqrstuvwxyzabcdefghijklmnopqrstuv5";
+        String view = new StringBuilder(source).reverse().toString();
+        roundTrip(x, 3, source, view, source);
+        Calls.due("positions", x.set(3, 1, 0), 49);
+    }
+
+    private static void deepThens() {
+        PutBack x = new PutBack();
+        Calls.define(x, "a = (copy [a-c] . del [0-9] \"5\" . ins \";\")*");
+        for (char c = 'b'; c <= 'h'; c++) {
+            String told = c + " = " + (char) (c - 1) + " then (copy [a-c] . swap(copy \";\", ins \"\"))*";
+            Calls.due("define " + told, Calls.define(x, told), c - 'a');
+        }
+        roundTrip(x, 7, "a1b2c3", "a;b;c;", "a5b5c5");
+        x = new PutBack();
+        Calls.define(x, "a = swap(copy [a-z], copy \"5\" . copy [a-z])");
+        Calls.define(x, "b = a then swap(copy \"5\" . copy [a-z], copy [a-z])");
+        for (char c = 'c'; c <= 'h'; c++) {
+            String told = c + " = " + (char) (c - 1) + " then " + (char) (c - 1) + " then " + (char) (c - 1);
+            Calls.due("define " + told, Calls.define(x, told), c - 'a');
+        }
+        roundTrip(x, 7, "x5y", "x5y", "x5y");
+    }
+
+    /** Parts that are empty on both sides may be named over and over. */
+    private static void emptyParts() {
+        PutBack x = new PutBack();
+        Calls.define(x, "a=" + repeated("ins\"\".", 90) + "key\"\"");
+        for (char c = 'b'; c <= 'g'; c++) {
+            Calls.define(x, c + "=" + repeated((char) (c - 1) + ".", 250) + (char) (c - 1));
+        }
+        Calls.due("define", Calls.define(x, "h=dict(g.copy\"x\".g)"), 7);
+        roundTrip(x, 7, "xxx", "xxx", "xxx");
+        Calls.due("key", x.key(7, 0, 1, 3), 0);
+    }
+
+    private static void manyDicts() {
+        PutBack x = new PutBack();
+        String told = "a=" + repeated("dict ", 118) + "key[a]";
+        Calls.due("define", Calls.define(x, told), PutBack.NONE);
+        Calls.due("fault", x.fault(0), 8);
+        Calls.due("place", x.fault(1), 2 + 116 * 5);
+        Calls.due("define", Calls.define(x, "a=" + repeated("dict ", 119)), PutBack.NONE);
+        Calls.due("fault", x.fault(0), 1);
+        Calls.due("place", x.fault(1), 597);
+        Calls.due("define", Calls.define(x, "a=copy" + repeated("(", 590)), PutBack.NONE);
+        Calls.due("fault", x.fault(0), 3);
+        Calls.due("place", x.fault(1), 18);
+    }
+
+    /** A lens may name so many "then" that nobody could wait for them: a call ends all the same. */
+    private static void tower() {
+        PutBack x = new PutBack();
+        Calls.define(x, "a=copy[a]");
+        for (char c = 'b'; c <= 'h'; c++) {
+            String before = String.valueOf((char) (c - 1));
+            Calls.due("define", Calls.define(x, c + "=" + before + repeated(" then " + before, 80)), c - 'a');
+        }
+        Calls.say(x, 0, "a");
+        Calls.due("get of 81 times 81", x.get(2, 0, 1), 1);
+        Calls.due("put of 81 times 81", x.put(2, 0, 0, 1), 1);
+        x.get(7, 0, 1);
+        x.put(7, 0, 0, 1);
+        x.create(7, 0, 1);
+        x.laws(7, 2, 5);
+        Calls.due("small ones go on", x.get(0, 0, 1), 1);
+    }
+
+    private static int wild() {
+        return pick(3) == 0 ? WILD[pick(WILD.length)] : pick(9) - 1;
+    }
+
+    private static void wildNumbers() {
+        for (int run = 0; run < 200; run++) {
+            PutBack x = new PutBack();
+            String[] some = {"a = dict (key [a-c]+ . del [0-9]* \"7\" . copy \";\")", "b = a then (copy [a-c]+ . copy \";\")*",
+                "c = copy [a] | del [b] \"b\"", "d = c . copy \",\" . a", "e = swap(a, copy \"-\" . c)"};
+            for (int i = 0; i < 512; i++) {
+                if (pick(12) == 0) {
+                    Calls.define(x, some[pick(some.length)]);
+                } else if (pick(8) == 0) {
+                    Calls.say(x, pick(8), new String[] {"", "a1;b;", "a;b;", "a,a;", "-ac;", "b"}[pick(6)]);
+                } else {
+                    wildCall(x, pick(29));
+                }
+            }
+            Calls.due("lenses", x.look(0) <= 8, true);
+        }
+    }
+
+    private static void wildCall(PutBack x, int which) {
+        int a = wild();
+        int b = wild();
+        int c = wild();
+        int d = wild();
+        switch (which) {
+            case 0: x.feed(a, b, c, d, a ^ b); break;
+            case 1: x.end(a); break;
+            case 2: x.lens(); break;
+            case 3: x.fault(a); break;
+            case 4: x.text(a); break;
+            case 5: x.symbol(a, b); break;
+            case 6: x.fits(a, b, c); break;
+            case 7: x.get(a, b, c); break;
+            case 8: x.put(a, b, c, d); break;
+            case 9: x.create(a, b, c); break;
+            case 10: x.many(a, b, c); break;
+            case 11: x.nth(a, b, c, d); break;
+            case 12: x.compare(a, b, c, d); break;
+            case 13: x.set(a, b, c); break;
+            case 14: x.goesOn(a, b, c, d); break;
+            case 15: x.parts(a, b); break;
+            case 16: x.aligned(a, b, c, d); break;
+            case 17: x.key(a, b, c, d); break;
+            case 18: x.laws(a, b, c); break;
+            case 19: x.open(a, b); break;
+            case 20: x.edit(a, b, c, d); break;
+            case 21: x.undo(); break;
+            case 22: x.copy(a, b); break;
+            case 23: x.moved(a); break;
+            case 24: x.join(a, b, c); break;
+            case 25: x.cut(a, b, c, d); break;
+            default: x.look(a); break;
+        }
+    }
+
+    private static long allocated() {
+        return ((com.sun.management.ThreadMXBean) ManagementFactory.getThreadMXBean())
+            .getThreadAllocatedBytes(Thread.currentThread().getId());
+    }
+
+    /** The room is some 7.3 million fields and elements; a field has four bytes at least. */
+    private static void room(String what, long before) {
+        long bytes = allocated() - before;
+        System.out.println("room of " + what + ": " + bytes + " bytes");
+        Calls.due("room of " + what, bytes < 12000000L, true);
+    }
+
+    private static void roomOfLenses() {
+        String[] tapes = {"a=" + repeated("ins\"\".", 99) + "x", "a=copy(" + repeated("\"\"", 290) + ")*x",
+            "a=" + repeated("ins\"a\".", 59) + "ins\"b\"x", "a=copy(" + repeated("[a]", 60) + ")" + repeated(".ins\"\"", 50) + "x"};
+        for (String tape : tapes) {
+            int[] numbers = new int[(tape.length() + 19) / 20 * 5];
+            for (int i = 0; i < numbers.length; i++) {
+                numbers[i] = Calls.four(tape, 4 * i);
+            }
+            long before = allocated();
+            PutBack x = new PutBack();
+            int calls = 0;
+            while (calls + numbers.length / 5 + 2 <= 512) {
+                for (int i = 0; i < numbers.length; i += 5) {
+                    x.feed(numbers[i], numbers[i + 1], numbers[i + 2], numbers[i + 3], numbers[i + 4]);
+                }
+                x.end(tape.length());
+                x.lens();
+                calls += numbers.length / 5 + 2;
+            }
+            room("lenses", before);
+        }
+    }
+
+    private static void roomOfLaws() {
+        PutBack x = new PutBack();
+        Calls.define(x, "a = dict (key [a-c]+ . del [0-9]* \"7\" . copy \";\")");
+        Calls.define(x, "b = a then (copy [a-c]+ . copy \";\")*");
+        Calls.say(x, 0, "a1;b2;c3;a1;b2;c3;a1;b2;c3;a1;b2;c3;a1;b2;c3;a1;b2;c3;");
+        Calls.say(x, 1, "a;b;c;a;b;c;a;b;c;a;b;c;a;b;c;a;b;c;a;b;c;a;b;c;");
+        x.open(1, 0);
+        long before = allocated();
+        for (int i = 0; i < 512; i++) {
+            switch (i % 4) {
+                case 0: x.laws(1, i / 4 % 4, 5); break;
+                case 1: x.put(1, 1, 0, 2); break;
+                case 2: x.edit(1, 0, 0, 7); break;
+                default: x.nth(1, 0, 999, 3); break;
+            }
+        }
+        room("laws, put, edit and nth", before);
+    }
+}
