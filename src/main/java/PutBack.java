@@ -944,11 +944,10 @@ public final class PutBack {
                 return NONE;
             }
             Lens made = top();
-            if (made == null) {
-                return NONE;
-            }
             if (sign() != NONE) {
                 refuse(CANT_STAND, place);
+            }
+            if (made == null || fault != 0 || told >= MOST_LENSES) {
                 return NONE;
             }
             lenses[told] = made;

@@ -23,6 +23,7 @@ public final class LimitsTest {
         emptyParts();
         manyDicts();
         tower();
+        growing();
         wildNumbers();
         roomOfLenses();
         roomOfLaws();
@@ -133,11 +134,60 @@ public final class LimitsTest {
         Calls.say(x, 0, "a");
         Calls.due("get of 81 times 81", x.get(2, 0, 1), 1);
         Calls.due("put of 81 times 81", x.put(2, 0, 0, 1), 1);
-        x.get(7, 0, 1);
-        x.put(7, 0, 0, 1);
-        x.create(7, 0, 1);
         x.laws(7, 2, 5);
         Calls.due("small ones go on", x.get(0, 0, 1), 1);
+        x.get(7, 0, 1);
+        Calls.due("small ones go on", x.put(0, 0, 0, 1), 1);
+        x.put(7, 0, 0, 1);
+        Calls.due("small ones go on", x.create(0, 0, 1), 1);
+        x.create(7, 0, 1);
+        Calls.due("small ones go on", x.laws(0, 0, 5), 0);
+        x.create(7, 0, 1);
+        Calls.due("small ones go on", x.open(0, 0), 1);
+        x.create(7, 0, 1);
+        Calls.due("small ones go on", x.edit(0, 0, 1, 0), 1);
+        towerOfKeys();
+    }
+
+    private static void towerOfKeys() {
+        PutBack x = new PutBack();
+        Calls.define(x, "a=dict(key[a])");
+        for (char c = 'b'; c <= 'h'; c++) {
+            String before = String.valueOf((char) (c - 1));
+            Calls.define(x, c + "=" + before + repeated(" then " + before, 80));
+        }
+        Calls.say(x, 0, "aa");
+        x.get(7, 0, 1);
+        Calls.due("small ones go on", x.aligned(0, 0, 0, 1), 1);
+        x.get(7, 0, 1);
+        Calls.due("small ones go on", x.key(0, 0, 0, 1), 1);
+    }
+
+    /** More texts in the midst, and more parts that wait, than there is room for at first. */
+    private static void growing() {
+        String b = repeated("b", 20);
+        String c = repeated("c", 20);
+        PutBack x = new PutBack();
+        Calls.define(x, "a = copy [a] . ins \"" + b + "\" . ins \"" + c + "\" then key (\"a" + b.substring(1) + "\"\"b\"\"" + c + "\")");
+        Calls.define(x, "d = dict a");
+        Calls.say(x, 0, repeated("a", 60));
+        Calls.say(x, 1, "a" + b + c);
+        Calls.due("keys of 41 symbols", x.put(1, 1, 0, 2), 1);
+        Calls.due("keys of 41 symbols", x.aligned(1, 1, 0, 0), 0);
+        x = new PutBack();
+        Calls.define(x, "a=(copy[a])*");
+        Calls.define(x, "b=a" + repeated(" then a", 80));
+        Calls.say(x, 0, repeated("a", 60));
+        Calls.due("81 texts of 60", x.put(1, 0, 0, 1), 60);
+        Calls.due("81 texts of 60", Calls.read(x, 1), repeated("a", 60));
+        x = new PutBack();
+        Calls.define(x, "a=ins\"a\"then copy\"a\"");
+        for (char k = 'b'; k <= 'h'; k++) {
+            String told = k + "=" + (char) (k - 1) + repeated(".ins\"b\"", 50) + "then copy\"a\".del\"" + b + "\"\"" + b
+                + "\".del\"" + b + "\"\"" + b + "\".del\"bbbbbbbbbb\"\"bbbbbbbbbb\"";
+            Calls.due("define " + told, Calls.define(x, told), k - 'a');
+        }
+        roundTrip(x, 7, "", "a", "");
     }
 
     private static int wild() {

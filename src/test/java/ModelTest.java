@@ -87,6 +87,12 @@ public final class ModelTest {
             definition = spoiled(definition);
         }
         tape(definition);
+        if (pick(15) == 0) {
+            int n = pick(definition.length() + 1);
+            x.end(n);
+            y.end(n);
+            definition = definition.substring(0, n);
+        }
         String call = "run " + run + " lens '" + definition + "' ";
         Calls.due(call, x.lens(), y.lens());
         for (int what = -1; what < 4; what++) {
@@ -137,6 +143,12 @@ public final class ModelTest {
         int kind = pick(14);
         if (kind > 11) {
             return one("dict ", "dict ", "") + "(" + record() + ")" + one("*", "", "");
+        }
+        if (pick(12) == 0) {
+            return one("dict ", "dict ", "") + name() + one("", "*", " . copy \"/\"");
+        }
+        if (pick(20) == 0) {
+            return "(" + record() + ") then copy [a-z]+ . " + one("copy", "key") + " [0-9]+ . copy \"" + separator() + "\"";
         }
         if (kind == 0) {
             String u = unit(2);

@@ -140,8 +140,10 @@ public final class PromisesTest {
         refused("", 1, 0, NONE);
         refused("  \n", 1, 3, NONE);
         refused("= copy [a]", 1, 0, NONE);
-        refused("copy = copy [a]", 1, 0, NONE);
-        refused("then = copy [a]", 1, 0, NONE);
+        for (String own : new String[] {"then", "copy", "key", "del", "ins", "swap", "dict"}) {
+            refused(own + " = copy [a]", 1, 0, NONE);
+            refused("p = la . " + own, 1, own.equals("then") ? 9 : 9 + own.length(), NONE);
+        }
         refused("A = copy [a]", 1, 0, NONE);
         refused("p1 = copy [a]", 1, 1, NONE);
         refused("p", 1, 1, NONE);
@@ -159,6 +161,9 @@ public final class PromisesTest {
         refused("p = del [a]", 1, 11, NONE);
         refused("p = del [a] [a]", 1, 12, NONE);
         refused("p = ins [a]", 1, 8, NONE);
+        refused("p = ins", 1, 7, NONE);
+        refused("p = ins \"", 1, 9, NONE);
+        refused("p = ins \"!", 1, 9, NONE);
         refused("p = \"a!\"", 1, 4, NONE);
         refused("p = dict", 1, 8, NONE);
         refused("p = swap copy [a]", 1, 9, NONE);
@@ -217,6 +222,7 @@ public final class PromisesTest {
         refused("p = ((((((((((((copy ([a])))))))))))))", 3, 21, NONE);
         refused("p = ((((((((((((swap(la, la)))))))))))))", 3, 20, NONE);
         refused("p = ((((((((((((swap la", 1, 21, NONE);
+        with("p = " + "(ins \"\") . swap(ins \"\", copy (\"\"\"\")) . ".repeat(12) + "ins \"\"");
         refused("p = copy (((((((((((([a])))))))))))) (", 1, 37, NONE);
     }
 
@@ -240,11 +246,37 @@ public final class PromisesTest {
         refused(x, "p = copy (" + twenty + twenty + twenty + " ([0]))", 3, 77, NONE);
         refused(x, "p = copy (" + twenty + twenty + twenty + "|[0])", 3, 76, NONE);
         refused(x, "p = copy (" + twenty + twenty + twenty + "|[a])", 3, 76, NONE);
+        with("p = copy (" + twenty + twenty + "\"" + SIXTY.substring(0, 19) + "\"|[0])");
+        with("p = copy (" + twenty + twenty + "\"" + SIXTY.substring(0, 19) + "\") | copy [0]");
         // The views are the same: only one of the two stays.
         x = with("a = del \"0\" \"0\" . ins " + twenty + " . ins " + twenty,
             "b = a | del \"1\" \"1\" . ins " + twenty + " . ins " + twenty);
         Calls.due("5 the same views", x.set(1, 1, 0), 40);
+        stale();
         refused(x, "p = a | del \"1\" \"1\" . ins \"0\" . ins " + twenty + " . ins " + twenty, 3, 6, NONE);
+    }
+
+    /** What stood on the tape behind its end is not read. */
+    private static void stale() {
+        String told = "p = copy ([a-c]\"de\"|\"f\") . del [x] \"x\"       . ins \"-\"";
+        for (int n = 0; n <= told.length(); n++) {
+            PutBack x = new PutBack();
+            Calls.tape(x, told);
+            x.end(n);
+            boolean whole = n == told.length() || n >= 24 && n <= 25 || n >= 38 && n <= 45;
+            Calls.due("5 " + n + " bytes", x.lens(), whole ? 0 : NONE);
+            Calls.due("5 " + n + " bytes", x.fault(0) == 0, whole);
+            Calls.due("5 " + n + " bytes, place", x.fault(1) <= n, true);
+        }
+        PutBack x = with("p = copy [a]" + " ".repeat(588));
+        refused(x, "q = copy [a" + " ".repeat(589), 1, 600, NONE);
+        refused(x, "q = copy [a" + "a".repeat(588) + "-", 1, 600, NONE);
+        refused(x, "q =" + " ".repeat(589) + "copy [a-", 1, 600, NONE);
+        refused(x, "q =" + " ".repeat(592) + "ins \"", 1, 600, NONE);
+        refused(x, "q =" + " ".repeat(597), 1, 600, NONE);
+        refused(x, " ".repeat(600), 1, 600, NONE);
+        refused(x, "q".repeat(600), 1, 0, NONE);
+        Calls.due("4 600 bytes", Calls.define(x, "q =" + " ".repeat(588) + "copy \"q\""), 1);
     }
 
     private static void branchesAndRows() {
@@ -427,6 +459,7 @@ public final class PromisesTest {
         Calls.due("9 into itself", x.get(1, 0, 0), 3);
         Calls.due("9 into itself", Calls.read(x, 0), "aab");
         longer();
+        manyTexts();
     }
 
     /** No text in the midst may be longer than 60. */
@@ -452,6 +485,20 @@ public final class PromisesTest {
         Calls.say(x, 3, twelve + "a;");
         Calls.due("10 no key is asked", x.put(4, 2, 3, 1), 0);
         Calls.due("9 too long within", x.get(4, 3, 1), NONE);
+        // To put back, what the last one shows is not asked.
+        x = with("a = (copy [a])* then (copy [a] . ins \"bbbb\")*", "w = (copy [a])* then (copy [a] . ins \"bbbb\")* then "
+            + "(copy [a] . del \"bbbb\" \"bbbb\")*");
+        Calls.say(x, 1, twelve + "a");
+        Calls.due("9 too long", x.get(0, 1, 2), NONE);
+        puts(x, 0, "abbbb", twelve + "a", "a");
+        Calls.say(x, 0, "a");
+        Calls.due("10 too long in the midst", x.put(1, 0, 1, 2), NONE);
+    }
+
+    private static void manyTexts() {
+        PutBack x = with("w = (copy [a] . ins \"bbbb\")*", "n = (copy [a] . del \"bbbb\" \"bbbb\")*", "wn = w then n",
+            "d = dict (key [c] . wn . copy \";\")", "one = (wn . copy \";\")*");
+        String twelve = "aaaaaaaaaaaa";
         // The texts in the midst of different parts are texts of their own.
         shows(x, 4, twelve + ";" + twelve + ";", twelve + ";" + twelve + ";");
     }
@@ -748,6 +795,19 @@ public final class PromisesTest {
         Calls.say(x, 1, "a5-b6");
         Calls.due("18 branches", x.aligned(7, 0, 1, 0), 1);
         Calls.due("18 branches", x.aligned(7, 0, 1, 1), 0);
+        // Of "then" the key is that of the last one.
+        x = with("t = swap(key [a-c], copy [0-9]) then (copy [0-9] . key [a-c])",
+            "v = key [a-c] . copy [0-9] then swap(copy [a-c], key [0-9])", "d = dict t", "e = dict v");
+        Calls.say(x, 0, "1b2a");
+        Calls.say(x, 1, "a1b2");
+        Calls.due("18 then", x.aligned(2, 0, 1, 0), 1);
+        Calls.due("18 then", x.aligned(2, 0, 1, 1), 0);
+        Calls.due("18 then", x.aligned(3, 0, 1, 0), 0);
+        Calls.due("18 then", x.aligned(3, 0, 1, 1), 1);
+        Calls.due("19 then", x.key(2, 0, 0, 2), 1);
+        Calls.due("19 then", Calls.read(x, 2), "b");
+        Calls.due("19 then", x.key(3, 0, 0, 2), 1);
+        Calls.due("19 then", Calls.read(x, 2), "1");
     }
 
     private static void hasKey(PutBack x, int lens, int i, String want) {
