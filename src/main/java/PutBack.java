@@ -573,7 +573,7 @@ public final class PutBack {
 
         private void linkBehind(long from, long to) {
             for (int p = 0; p < count; p++) {
-                if (isIn(from, p)) {
+                if (((from >>> p) & 1L) != 0) {
                     behind[p] |= to;
                 }
             }
@@ -582,7 +582,7 @@ public final class PutBack {
         long signsOf(long positions) {
             long signs = 0;
             for (int p = 0; p < count; p++) {
-                if (isIn(positions, p)) {
+                if (((positions >>> p) & 1L) != 0) {
                     signs |= allowed[p];
                 }
             }
@@ -943,7 +943,12 @@ public final class PutBack {
             if (name == 0 || !takeSign('=')) {
                 return NONE;
             }
-            Lens made = top();
+            Lens made = branches();
+            for (int i = 0; i < TAPE_BYTES && made != null && isWord("then"); i++) {
+                int where = place;
+                place += 4;
+                made = composed(made, branches(), where);
+            }
             if (sign() != NONE) {
                 refuse(CANT_STAND, place);
             }
@@ -1072,16 +1077,6 @@ public final class PutBack {
                 return 0;
             }
             return name;
-        }
-
-        private Lens top() {
-            Lens left = branches();
-            for (int i = 0; i < TAPE_BYTES && left != null && isWord("then"); i++) {
-                int where = place;
-                place += 4;
-                left = composed(left, branches(), where);
-            }
-            return left;
         }
 
         private Lens branches() {
