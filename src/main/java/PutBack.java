@@ -22,8 +22,18 @@ public final class PutBack {
     /** Answer of aligned() for a part that is made anew. */
     private static final int ANEW = -2;
 
-    /** A lens may name others "then" behind "then" without end; no sensible one needs so many steps. */
-    private static final int MOST_STEPS = 2000000;
+    /** Far above what eight tapes can tell: some 86 lenses behind one another, named 86 times each, and so on. */
+    private static final long MOST_STEPS = 1L << 62;
+
+    /** A "then" of at least so many parts recalls what it answered. */
+    private static final int HEAVY = 64;
+    private static final int MOST_WEIGHT = 1000000;
+
+    /** Each "then" takes four bytes of the tape. */
+    private static final int MOST_LINKS = TAPE_BYTES / 4;
+
+    /** How deep parts of lenses behind one another are looked at, to find a simpler lens. */
+    private static final int MOST_LOOKED = 12;
 
     /** A row has no kid without a position in its sources or views, so it has at most 60 and 60 of them. */
     private static final int MOST_KIDS = 2 * MOST_POSITIONS;
@@ -62,9 +72,8 @@ public final class PutBack {
         110, 111, 112, 113, 114, 115, 116, 117, 118, 119, 120, 121, 122};
 
     private final Text[] slots = new Text[MOST_SLOTS];
-    private final Comparer comparer = new Comparer();
-    private final Reader reader = new Reader(comparer);
-    private final Counter counter = new Counter();
+    private final Walker walker = new Walker();
+    private final Reader reader = new Reader(walker);
     private final Machine machine = new Machine();
     private final Trial trial = new Trial();
     private final Desk desk = new Desk();
@@ -148,7 +157,6 @@ public final class PutBack {
         Lens told = lensAt(lens);
         Text source = slotAt(slot);
         Text target = slotAt(into);
-        machine.rest();
         if (told == null || source == null || target == null || !machine.shows(told, source, target)) {
             return NONE;
         }
@@ -160,7 +168,6 @@ public final class PutBack {
         Text from = slotAt(view);
         Text old = slotAt(source);
         Text target = slotAt(into);
-        machine.rest();
         if (told == null || from == null || old == null || target == null) {
             return NONE;
         }
@@ -171,7 +178,6 @@ public final class PutBack {
         Lens told = lensAt(lens);
         Text from = slotAt(view);
         Text target = slotAt(into);
-        machine.rest();
         if (told == null || from == null || target == null) {
             return NONE;
         }
@@ -183,7 +189,7 @@ public final class PutBack {
         if (asked == null || n < 0 || n > MOST_COUNTED) {
             return NONE;
         }
-        return counter.textsOf(asked, n);
+        return walker.textsOf(asked, n);
     }
 
     public int nth(int lens, int side, int i, int into) {
@@ -192,13 +198,13 @@ public final class PutBack {
         if (asked == null || target == null || i < 0 || i > LAST_TOLD) {
             return NONE;
         }
-        return counter.find(asked, i, target) ? target.length : NONE;
+        return walker.find(asked, i, target) ? target.length : NONE;
     }
 
     public int compare(int lens, int side, int other, int otherSide) {
         TextSet one = setAt(lens, side);
         TextSet two = setAt(other, otherSide);
-        return one == null || two == null ? NONE : comparer.relation(one, two);
+        return one == null || two == null ? NONE : walker.relation(one, two);
     }
 
     public int set(int lens, int side, int what) {
@@ -253,7 +259,6 @@ public final class PutBack {
         Lens told = lensAt(lens);
         Text from = slotAt(view);
         Text old = slotAt(source);
-        machine.rest();
         if (told == null || told.kind == THEN || repeatedOf(told) == null || from == null || old == null) {
             return NONE;
         }
@@ -264,7 +269,6 @@ public final class PutBack {
         Lens outermost = repeatedOf(lensAt(lens));
         Text view = slotAt(slot);
         Text target = slotAt(into);
-        machine.rest();
         if (outermost == null || view == null || target == null) {
             return NONE;
         }
@@ -276,8 +280,7 @@ public final class PutBack {
         if (told == null || n < 1 || n > MOST_TRIED || kind < 0 || kind > 3) {
             return NONE;
         }
-        machine.rest();
-        trial.gather(told, n, counter);
+        trial.gather(told, n, walker);
         switch (kind) {
             case 0:
                 return trial.brokenShown(told, machine);
@@ -293,7 +296,6 @@ public final class PutBack {
     public int open(int lens, int slot) {
         Lens told = lensAt(lens);
         Text source = slotAt(slot);
-        machine.rest();
         if (told == null || source == null || !desk.begin(told, lens, source, machine)) {
             return NONE;
         }
@@ -305,7 +307,6 @@ public final class PutBack {
             return NONE;
         }
         Text comes = slotAt(slot);
-        machine.rest();
         boolean good = (side == SOURCE || side == VIEW) && comes != null
             && desk.change(side, at, gone, comes, machine);
         if (!good) {
@@ -402,7 +403,7 @@ public final class PutBack {
     private static Lens repeatedOf(Lens told) {
         Lens found = told;
         for (int i = 0; i <= MOST_LENSES && found != null && found.kind == THEN; i++) {
-            found = found.lastKid();
+            found = found.lastLink;
         }
         return found != null && (found.kind == STAR || found.kind == DICT) ? found : null;
     }
@@ -654,6 +655,25 @@ public final class PutBack {
             return runEnd(asked.ranks, 0, asked.length) == asked.length;
         }
 
+        /** The length that all texts of the set have, NONE if they have several. */
+        int onlyLength() {
+            long open = first;
+            if (hasEmpty || count == 0) {
+                return count == 0 ? 0 : NONE;
+            }
+            for (int n = 1; n <= count; n++) {
+                long further = 0;
+                for (int p = 0; p < count; p++) {
+                    further |= isIn(open, p) ? behind[p] : 0L;
+                }
+                if ((open & last) != 0) {
+                    return (open & ~last) == 0 && further == 0 ? n : NONE;
+                }
+                open = further;
+            }
+            return NONE;
+        }
+
         int stateBehind(Text asked) {
             int state = START;
             for (int i = 0; i < asked.length && state != NONE; i++) {
@@ -663,17 +683,25 @@ public final class PutBack {
         }
     }
 
-    /** Goes through two sets at once, over all pairs of states that one text leads to. */
-    private static final class Comparer {
+    /** Goes through sets: compares two of them, counts the texts of one, finds a text by its number. */
+    private static final class Walker {
         private static final int STATES = MOST_POSITIONS + 1;
 
         private final long[] seen = new long[STATES];
         private final int[] waiting = new int[STATES * STATES];
         private int waits;
+        /** In row k: behind each position, how many texts of k symbols lead to an end. */
+        private final long[] ways = new long[MOST_COUNTED * MOST_POSITIONS];
+        private TextSet counted;
+        private int rows;
 
+        /** Over all pairs of states that one text leads to in both sets. */
         int relation(TextSet a, TextSet b) {
             boolean moreInA = false;
             boolean moreInB = false;
+            if (a == b) {
+                return 0;
+            }
             Arrays.fill(seen, 0L);
             waits = 0;
             note(TextSet.START, TextSet.START);
@@ -706,20 +734,12 @@ public final class PutBack {
         }
 
         private void note(int p, int q) {
-            if (p < STATES && !isIn(seen[p], q) && waits < waiting.length) {
+            if (p < STATES && ((seen[p] >>> q) & 1L) == 0 && waits < waiting.length) {
                 seen[p] |= 1L << q;
                 waiting[waits] = p * STATES + q;
                 waits++;
             }
         }
-    }
-
-    /** Counts the texts of a set, and finds one by its number. */
-    private static final class Counter {
-        /** In row k: behind each position, how many texts of k symbols lead to an end. */
-        private final long[] ways = new long[MOST_COUNTED * MOST_POSITIONS];
-        private TextSet counted;
-        private int rows;
 
         long textsOf(TextSet asked, int n) {
             if (n <= 0 || n > MOST_COUNTED) {
@@ -806,6 +826,14 @@ public final class PutBack {
         boolean[] same = new boolean[0];
         /** The quoted text of a del or an ins. */
         byte[] quoted = new byte[0];
+        /** Of "then": what stands behind all others, which has its keys and parts. */
+        Lens lastLink;
+        /** Of "then" as it was told: another lens that does the same. */
+        Lens simpler;
+        /** Of "then": its number among all that were made. */
+        int number;
+        /** How many parts it has, those of lenses that it names too. */
+        int weight = 1;
 
         private Lens(int kind, TextSet source, TextSet view, Lens[] kids, boolean hasKey) {
             this.kind = kind;
@@ -829,7 +857,12 @@ public final class PutBack {
             made.order = new int[a + b];
             made.placeInRow(left, 0, swapped ? b : 0);
             made.placeInRow(right, a, swapped ? 0 : a);
+            made.weight = weightOf(left, right);
             return made;
+        }
+
+        static int weightOf(Lens left, Lens right) {
+            return Math.min(MOST_WEIGHT, left.weight + right.weight);
         }
 
         /** What has the empty text alone on both sides adds nothing: without it a row stays short. */
@@ -858,17 +891,46 @@ public final class PutBack {
             made.same = new boolean[many];
             System.arraycopy(left.same, 0, made.same, 0, Math.min(left.same.length, many));
             made.same[many - 1] = sameViews;
+            made.weight = weightOf(left, right);
             return made;
-        }
-
-        static Lens then(Lens left, Lens right) {
-            return new Lens(THEN, left.source, right.view, kidsBehind(left, THEN, right), right.hasKey);
         }
 
         static Lens repeated(int kind, Lens body) {
             Lens[] one = {body};
             boolean key = kind == STAR && body.hasKey;
-            return new Lens(kind, body.source.repeated(true), body.view.repeated(true), one, key);
+            Lens made = new Lens(kind, body.source.repeated(true), body.view.repeated(true), one, key);
+            made.weight = body.weight;
+            return made;
+        }
+
+        /** Its keys and its parts are those of the last one. */
+        static Lens then(Lens[] links, int many) {
+            Lens last = links[many - 1];
+            Lens made = new Lens(THEN, links[0].source, last.view, new Lens[many], last.hasKey);
+            System.arraycopy(links, 0, made.kids, 0, many);
+            made.lastLink = last;
+            made.weight = weightOfAll(made.kids);
+            return made;
+        }
+
+        /** One lens of this one and of another one of its kind behind it; the other's kid i is kid ends[i] of it. */
+        Lens through(Lens last, Lens[] parts, int[] ends) {
+            Lens made = new Lens(kind, source, last.view, parts, last.hasKey);
+            made.order = new int[order.length];
+            for (int i = 0; i < order.length; i++) {
+                made.order[i] = ends[last.order[i]];
+            }
+            made.same = same;
+            made.weight = weightOfAll(parts);
+            return made;
+        }
+
+        static int weightOfAll(Lens[] some) {
+            int sum = 0;
+            for (int i = 0; i < some.length; i++) {
+                sum = Math.min(MOST_WEIGHT, sum + some[i].weight);
+            }
+            return sum;
         }
 
         /** From the left: what stands left of a sign and is of its kind goes on with one kid more. */
@@ -885,9 +947,252 @@ public final class PutBack {
         Lens firstKid() {
             return kids.length > 0 ? kids[0] : null;
         }
+    }
 
-        Lens lastKid() {
-            return kids.length > 0 ? kids[kids.length - 1] : null;
+    /**
+     * Makes one lens of several that stand behind one another by "then". Tapes may name lenses so often that
+     * nobody could wait for all of them one by one: so what changes nothing is left out, and rows, branches and
+     * repetitions behind others that are split alike become one, of parts behind parts.
+     */
+    private static final class Composer {
+        private final Walker walker;
+        private int made;
+
+        Composer(Walker walker) {
+            this.walker = walker;
+        }
+
+        /** A lens that shows, puts back and makes anew as these do one behind another. */
+        Lens joined(Lens[] links, int many, int depth) {
+            Lens[] some = new Lens[many];
+            int count = 0;
+            boolean plain = false;
+            for (int i = 0; i < many; i++) {
+                boolean again = i > 0 && links[i] == links[i - 1];
+                Lens each = links[i].simpler != null ? links[i].simpler : links[i];
+                plain = again ? plain : isPlain(each, depth);
+                if (!plain || (count == 0 && i == many - 1)) {
+                    some[count] = each;
+                    count++;
+                }
+            }
+            if (count == 1) {
+                return some[0];
+            }
+            Lens found = depth < MOST_LOOKED ? joinedParts(some, count, depth) : null;
+            if (found == null) {
+                found = Lens.then(some, count);
+                made++;
+                found.number = made;
+            }
+            return found;
+        }
+
+        /** Whether a view is always as its source is. */
+        private static boolean isPlain(Lens lens, int depth) {
+            boolean plain = depth < MOST_LOOKED && lens.kind != THEN;
+            if (lens.kind == DEL || lens.kind == INS) {
+                return lens.source.count == 0 && lens.view.count == 0;
+            }
+            for (int i = 0; i < lens.order.length && plain; i++) {
+                plain = lens.order[i] == i;
+            }
+            for (int i = 0; i < lens.kids.length && plain; i++) {
+                Lens kid = lens.kids[i].simpler != null ? lens.kids[i].simpler : lens.kids[i];
+                plain = isPlain(kid, depth + 1);
+            }
+            return plain;
+        }
+
+        /** Whether a view is always as long as its source: then no text in the midst is longer than the outcome. */
+        private static boolean isEven(Lens lens, int depth) {
+            if (lens.kind == COPY || lens.kind == KEY) {
+                return true;
+            }
+            int length = lens.source.onlyLength();
+            if (length != NONE && length == lens.view.onlyLength()) {
+                return true;
+            }
+            boolean even = lens.kids.length > 0 && depth < MOST_LOOKED;
+            for (int i = 0; i < lens.kids.length && even; i++) {
+                even = isEven(lens.kids[i], depth + 1);
+            }
+            return even;
+        }
+
+        private static boolean canJoin(Lens lens, Lens first) {
+            boolean good = lens.kind == ROW || lens.kind == BRANCHES || lens.kind == STAR;
+            for (int i = 0; i < lens.same.length && good; i++) {
+                good = !lens.same[i];
+            }
+            return good && lens.kind == first.kind && lens.kids.length == first.kids.length && isEven(lens, 0);
+        }
+
+        /** One lens of which each part is made of parts behind parts; null if the lenses aren't split alike. */
+        private Lens joinedParts(Lens[] some, int count, int depth) {
+            Lens first = some[0];
+            int parts = first.kids.length;
+            boolean good = true;
+            for (int i = 0; i < count && good; i++) {
+                good = (i > 0 && some[i] == some[i - 1]) || canJoin(some[i], first);
+            }
+            int[] paths = new int[good ? count * parts : 0];
+            if (!good || !follow(some, count, paths)) {
+                return null;
+            }
+            Lens[] column = new Lens[count];
+            Lens[] kids = new Lens[parts];
+            int[] ends = new int[parts];
+            for (int k = 0; k < parts; k++) {
+                for (int i = 0; i < count; i++) {
+                    column[i] = some[i].kids[paths[i * parts + k]];
+                }
+                ends[paths[(count - 1) * parts + k]] = k;
+                kids[k] = joined(column, count, depth + 1);
+            }
+            return first.through(some[count - 1], kids, ends);
+        }
+
+        /** In row i: to which part of lens i each part of the first one comes. */
+        private boolean follow(Lens[] some, int count, int[] paths) {
+            int parts = some[0].kids.length;
+            int[] next = new int[parts];
+            for (int k = 0; k < parts; k++) {
+                paths[k] = k;
+            }
+            for (int i = 1; i < count; i++) {
+                boolean again = i > 1 && some[i] == some[i - 1] && some[i - 1] == some[i - 2];
+                if (!again && !pair(some[i - 1], some[i], next)) {
+                    return false;
+                }
+                for (int k = 0; k < parts; k++) {
+                    paths[i * parts + k] = next[paths[(i - 1) * parts + k]];
+                }
+            }
+            return true;
+        }
+
+        /** Which part of a lens takes what each part of the lens ahead of it shows. */
+        private boolean pair(Lens ahead, Lens behind, int[] next) {
+            boolean good = true;
+            for (int k = 0; k < ahead.kids.length && good; k++) {
+                good = false;
+                for (int j = 0; j < behind.kids.length && !good; j++) {
+                    boolean there = ahead.kind != ROW || ahead.order[j] == k;
+                    good = there && walker.relation(ahead.kids[k].view, behind.kids[j].source) == 0;
+                    next[k] = j;
+                }
+            }
+            return good;
+        }
+    }
+
+    /**
+     * What "then" answered before: lenses that name one another over and over ask the same again and again.
+     * It has room for so many answers; where it is full, a later one takes the place of an earlier one.
+     */
+    private static final class Recall {
+        private static final int IN_WORD = 10;
+        private static final int WORDS = LONGEST / IN_WORD;
+        private static final int ASKED = 2 + 2 * WORDS;
+        private static final int SPAN = ASKED + WORDS;
+        private static final int WAYS = 4;
+        private static final int FEWEST = 64;
+        private static final int MOST = 16384;
+
+        /** The answer that was found. */
+        final byte[] told = new byte[LONGEST];
+        int length;
+        private final long[] asked = new long[ASKED];
+        private long[] rows = new long[0];
+        private int buckets;
+        private int turn;
+
+        /** What a lens is asked: of a source alone (no view), of a view alone (no source), or of both. */
+        void ask(int number, byte[] store, int fromView, int toView, int fromSource, int toSource) {
+            asked[1] = 4L * number + (fromView == NONE ? 0 : 1) + (fromSource == NONE ? 0 : 2);
+            pack(store, fromView, toView, asked, 2);
+            pack(store, fromSource, toSource, asked, 2 + WORDS);
+            long mixed = 0;
+            for (int i = 1; i < ASKED; i++) {
+                mixed = (mixed ^ asked[i]) * 0x9E3779B97F4A7C15L;
+                mixed ^= mixed >>> 32;
+            }
+            // An empty row begins with 0.
+            asked[0] = mixed == 0 ? 1 : mixed;
+        }
+
+        /** Ten symbols in each word, each of them above 0. */
+        private static void pack(byte[] store, int from, int to, long[] into, int at) {
+            for (int i = 0; i < WORDS; i++) {
+                into[at + i] = 0;
+            }
+            int many = from == NONE ? 0 : Math.min(to - from, LONGEST);
+            for (int i = 0; i < many; i++) {
+                into[at + i / IN_WORD] |= (store[from + i] + 1L) << (6 * (i % IN_WORD));
+            }
+        }
+
+        /** Whether what was asked is known: then the answer is told (its length NONE if there is no outcome). */
+        boolean isKnown() {
+            int row = rowOf(asked, 0);
+            if (row == NONE || rows[row] == 0) {
+                return false;
+            }
+            length = rows[row + ASKED] < 0 ? NONE : 0;
+            for (int i = 0; i < LONGEST && length == i; i++) {
+                long rank = (rows[row + ASKED + i / IN_WORD] >>> (6 * (i % IN_WORD))) & 63L;
+                if (rank > 0) {
+                    told[i] = (byte) (rank - 1);
+                    length++;
+                }
+            }
+            return true;
+        }
+
+        /** Four times as many rows as there were, if there is none for what was asked. */
+        void makeRoom() {
+            if (buckets >= MOST || rowOf(asked, 0) != NONE) {
+                return;
+            }
+            long[] old = rows;
+            buckets = buckets == 0 ? FEWEST : 4 * buckets;
+            rows = new long[buckets * WAYS * SPAN];
+            for (int i = 0; i + SPAN <= old.length; i += SPAN) {
+                int row = old[i] == 0 ? NONE : rowOf(old, i);
+                if (row != NONE) {
+                    System.arraycopy(old, i, rows, row, SPAN);
+                }
+            }
+        }
+
+        /** Keeps the answer to what was asked, that stands from a place on ('to' is NONE if there is no outcome). */
+        void keep(byte[] store, int from, int to) {
+            int row = rowOf(asked, 0);
+            if (row == NONE) {
+                turn = (turn + 1) % WAYS;
+                row = ((int) (asked[0] & Math.max(0, buckets - 1)) * WAYS + turn) * SPAN;
+            }
+            if (row + SPAN <= rows.length) {
+                System.arraycopy(asked, 0, rows, row, ASKED);
+                pack(store, to == NONE ? NONE : from, to, rows, row + ASKED);
+                rows[row + ASKED] = to == NONE ? NONE : rows[row + ASKED];
+            }
+        }
+
+        /** Where in its bucket the row with a question stands, or an empty one; NONE if there is neither. */
+        private int rowOf(long[] from, int at) {
+            int begin = (int) (from[at] & Math.max(0, buckets - 1)) * WAYS * SPAN;
+            for (int row = begin; row < begin + WAYS * SPAN && row + SPAN <= rows.length; row += SPAN) {
+                boolean same = true;
+                for (int i = 0; i < ASKED && same; i++) {
+                    same = rows[row + i] == from[at + i];
+                }
+                if (same || rows[row] == 0) {
+                    return row;
+                }
+            }
+            return NONE;
         }
     }
 
@@ -902,13 +1207,16 @@ public final class PutBack {
         private final int[] tape = new int[TAPE_BYTES];
         private final long[] names = new long[MOST_LENSES];
         private final byte[] quoted = new byte[MOST_QUOTED];
-        private final Comparer comparer;
+        private final Lens[] links = new Lens[MOST_LINKS];
+        private final Walker walker;
+        private final Composer composer;
         private int quotedLength;
         private int place;
         private int opened;
 
-        Reader(Comparer comparer) {
-            this.comparer = comparer;
+        Reader(Walker walker) {
+            this.walker = walker;
+            composer = new Composer(walker);
         }
 
         void take(int four) {
@@ -944,16 +1252,25 @@ public final class PutBack {
                 return NONE;
             }
             Lens made = branches();
-            for (int i = 0; i < TAPE_BYTES && made != null && isWord("then"); i++) {
+            int many = 0;
+            while (many < MOST_LINKS - 1 && made != null && isWord("then")) {
                 int where = place;
                 place += 4;
-                made = composed(made, branches(), where);
+                links[many] = made;
+                many++;
+                made = behind(made, branches(), where);
             }
             if (sign() != NONE) {
                 refuse(CANT_STAND, place);
             }
             if (made == null || fault != 0 || told >= MOST_LENSES) {
                 return NONE;
+            }
+            if (many > 0) {
+                links[many] = made;
+                made = Lens.then(links, many + 1);
+                made.simpler = composer.joined(links, many + 1, 0);
+                made.weight = made.simpler.weight;
             }
             lenses[told] = made;
             names[told] = name;
@@ -1220,7 +1537,7 @@ public final class PutBack {
             }
             long shown = left.view.meets(right.view);
             boolean viewsMeet = shown != 0 || (left.view.hasEmpty && right.view.hasEmpty);
-            boolean same = viewsMeet && comparer.relation(left.view, right.view) == 0;
+            boolean same = viewsMeet && walker.relation(left.view, right.view) == 0;
             if (left.source.count + right.source.count > MOST_POSITIONS
                 || (!same && left.view.count + right.view.count > MOST_POSITIONS)) {
                 refuse(TOO_MANY, where);
@@ -1259,15 +1576,13 @@ public final class PutBack {
             return Lens.repeated(kind, body);
         }
 
-        private Lens composed(Lens left, Lens right, int where) {
-            if (left == null || right == null) {
-                return null;
-            }
-            if (comparer.relation(left.view, right.source) != 0) {
+        /** What stands behind "then", if it may. */
+        private Lens behind(Lens left, Lens right, int where) {
+            if (right != null && walker.relation(left.view, right.source) != 0) {
                 refuse(NOT_SAME, where);
                 return null;
             }
-            return Lens.then(left, right);
+            return right;
         }
 
         private boolean takeQuoted() {
@@ -1464,19 +1779,15 @@ public final class PutBack {
         private int waits;
         private int[] marks = new int[64];
         private int marked;
-        private int steps;
+        private long steps;
 
+        private final Recall recall = new Recall();
         private final int[] viewFrom = new int[MOST_KIDS];
         private final int[] viewTo = new int[MOST_KIDS];
         private final int[] sourceFrom = new int[MOST_KIDS];
         private final int[] sourceTo = new int[MOST_KIDS];
         private final Parts viewParts = new Parts();
         private final Parts sourceParts = new Parts();
-
-        /** Called once ahead of all that one call asks. */
-        void rest() {
-            steps = 0;
-        }
 
         boolean shows(Lens lens, Text source, Text into) {
             if (!lens.source.has(source)) {
@@ -1556,6 +1867,7 @@ public final class PutBack {
             top = 0;
             waits = 0;
             marked = 0;
+            steps = 0;
         }
 
         private void append(byte[] from, int at, int to) {
@@ -1703,6 +2015,27 @@ public final class PutBack {
         }
 
         private boolean showThen(Lens then, int from, int to, int depth) {
+            if (then.simpler != null) {
+                await(then.simpler, NONE, NONE, from, to);
+                return true;
+            }
+            if (then.weight < HEAVY) {
+                return showLinks(then, from, to, depth);
+            }
+            int begin = top;
+            recall.ask(then.number, store, NONE, NONE, from, to);
+            if (recall.isKnown()) {
+                append(recall.told, 0, recall.length);
+                return recall.length != NONE;
+            }
+            boolean good = showLinks(then, from, to, depth);
+            recall.ask(then.number, store, NONE, NONE, from, to);
+            recall.makeRoom();
+            recall.keep(store, begin, good ? top : NONE);
+            return good;
+        }
+
+        private boolean showLinks(Lens then, int from, int to, int depth) {
             int begin = top;
             int a = from;
             int b = to;
@@ -1885,6 +2218,27 @@ public final class PutBack {
         }
 
         private boolean backThen(Lens then, int fromView, int toView, int fromSource, int toSource, int depth) {
+            if (then.simpler != null) {
+                await(then.simpler, fromView, toView, fromSource, toSource);
+                return true;
+            }
+            if (then.weight < HEAVY) {
+                return backLinks(then, fromView, toView, fromSource, toSource, depth);
+            }
+            int begin = top;
+            recall.ask(then.number, store, fromView, toView, fromSource, toSource);
+            if (recall.isKnown()) {
+                append(recall.told, 0, recall.length);
+                return recall.length != NONE;
+            }
+            boolean good = backLinks(then, fromView, toView, fromSource, toSource, depth);
+            recall.ask(then.number, store, fromView, toView, fromSource, toSource);
+            recall.makeRoom();
+            recall.keep(store, begin, good ? top : NONE);
+            return good;
+        }
+
+        private boolean backLinks(Lens then, int fromView, int toView, int fromSource, int toSource, int depth) {
             int begin = top;
             int base = marked;
             boolean anew = fromSource == NONE;
@@ -1967,11 +2321,10 @@ public final class PutBack {
         }
 
         private boolean keyThen(Lens then, int from, int to) {
-            Lens last = then.lastKid();
-            if (last != null) {
-                await(last, from, to, NONE, NONE);
+            if (then.lastLink != null) {
+                await(then.lastLink, from, to, NONE, NONE);
             }
-            return last != null;
+            return then.lastLink != null;
         }
 
         private boolean keyBranch(Lens branches, int from, int to) {
@@ -2007,14 +2360,14 @@ public final class PutBack {
             }
         }
 
-        void gather(Lens lens, int n, Counter counter) {
+        void gather(Lens lens, int n, Walker walker) {
             sourceCount = 0;
             viewCount = 0;
             while (sourceCount < n && sourceCount < MOST_TRIED
-                && counter.find(lens.source, sourceCount, sources[sourceCount])) {
+                && walker.find(lens.source, sourceCount, sources[sourceCount])) {
                 sourceCount++;
             }
-            while (viewCount < n && viewCount < MOST_TRIED && counter.find(lens.view, viewCount, views[viewCount])) {
+            while (viewCount < n && viewCount < MOST_TRIED && walker.find(lens.view, viewCount, views[viewCount])) {
                 viewCount++;
             }
         }
