@@ -971,7 +971,8 @@ public final class PutBack {
                 boolean again = i > 0 && links[i] == links[i - 1];
                 Lens each = links[i].simpler != null ? links[i].simpler : links[i];
                 plain = again ? plain : isPlain(each, depth);
-                if (!plain || (count == 0 && i == many - 1)) {
+                // What the one ahead of the last one shows must not be too long, so that the last one can't go then.
+                if (!plain || (i == many - 1 && (count == 0 || !isEven(some[count - 1], 0)))) {
                     some[count] = each;
                     count++;
                 }

@@ -5,6 +5,8 @@ public final class LimitsTest {
     private static final int[] WILD = {Integer.MIN_VALUE, -61, -3, -2, -1, 0, 1, 2, 3, 5, 7, 8, 20, 59, 60, 61, 599, 600,
         999, 1000, Integer.MAX_VALUE - 1, Integer.MAX_VALUE};
 
+    private static final String FLIP = "(del\"a\"\"a\".ins\"b\"|del\"b\"\"b\".ins\"a\")";
+
     private static long state = 5;
 
     private LimitsTest() {
@@ -22,11 +24,12 @@ public final class LimitsTest {
         deepThens();
         emptyParts();
         manyDicts();
-        tower();
+        towers();
         growing();
         wildNumbers();
         roomOfLenses();
         roomOfLaws();
+        roomOfTowers();
         Calls.finish("LimitsTest");
     }
 
@@ -123,44 +126,112 @@ public final class LimitsTest {
         Calls.due("place", x.fault(1), 18);
     }
 
-    /** A lens may name so many "then" that nobody could wait for them: a call ends all the same. */
-    private static void tower() {
+    /** The given lenses, and behind them up to eight in all: each names the one ahead of it 86 times. */
+    private static PutBack tower(int most, String... given) {
         PutBack x = new PutBack();
-        Calls.define(x, "a=copy[a]");
-        for (char c = 'b'; c <= 'h'; c++) {
+        for (int i = 0; i < most; i++) {
+            char c = (char) ('a' + i);
             String before = String.valueOf((char) (c - 1));
-            Calls.due("define", Calls.define(x, c + "=" + before + repeated(" then " + before, 80)), c - 'a');
+            String told = i < given.length ? given[i] : c + "=" + before + repeated(" then " + before, 85);
+            Calls.due("define " + told, Calls.define(x, told), i);
         }
-        Calls.say(x, 0, "a");
-        Calls.due("get of 81 times 81", x.get(2, 0, 1), 1);
-        Calls.due("put of 81 times 81", x.put(2, 0, 0, 1), 1);
-        x.laws(7, 2, 5);
-        Calls.due("small ones go on", x.get(0, 0, 1), 1);
-        x.get(7, 0, 1);
-        Calls.due("small ones go on", x.put(0, 0, 0, 1), 1);
-        x.put(7, 0, 0, 1);
-        Calls.due("small ones go on", x.create(0, 0, 1), 1);
-        x.create(7, 0, 1);
-        Calls.due("small ones go on", x.laws(0, 0, 5), 0);
-        x.create(7, 0, 1);
-        Calls.due("small ones go on", x.open(0, 0), 1);
-        x.create(7, 0, 1);
-        Calls.due("small ones go on", x.edit(0, 0, 1, 0), 1);
-        towerOfKeys();
+        return x;
     }
 
-    private static void towerOfKeys() {
-        PutBack x = new PutBack();
-        Calls.define(x, "a=dict(key[a])");
-        for (char c = 'b'; c <= 'h'; c++) {
-            String before = String.valueOf((char) (c - 1));
-            Calls.define(x, c + "=" + before + repeated(" then " + before, 80));
+    /** Lenses may name others by "then" so often that nobody could wait for each: all calls answer as ever. */
+    private static void towers() {
+        PutBack x = tower(8, "a=copy[a]");
+        roundTrip(x, 7, "a", "a", "a");
+        lawful(x, 7);
+        Calls.due("open", x.open(7, 0), 1);
+        Calls.due("edit", x.edit(1, 0, 1, 0), 1);
+        Calls.due("edit", x.edit(0, 0, 1, 0), 1);
+        x = tower(8, "a=" + FLIP + "*");
+        String sixty = repeated("abbab", 12);
+        roundTrip(x, 7, sixty, sixty, sixty);
+        lawful(x, 7);
+        x = tower(8, "a=copy[a-z]", "b=swap(a,a).swap(a,a.a).swap(a,a.a.a.a).swap(a,a.a.a.a.a.a)");
+        // 86 to the 6 is 0, 1, 1, 1 modulo 2, 3, 5, 7.
+        roundTrip(x, 7, "abcdefghijklmnopq", "abdecghijflmnopqk", "abcdefghijklmnopq");
+        lawful(x, 7);
+        x = tower(8, "a=swap(copy[a-z],copy([a-z][a-z]))");
+        // 86 to the 7 is 2 modulo 3.
+        roundTrip(x, 7, "abc", "cab", "abc");
+        lawful(x, 7);
+        x = tower(8, "a=(del\"a\"\"a\".ins\"bb\"|del\"bb\"\"bb\".ins\"a\")*");
+        roundTrip(x, 7, "abbaabb", "abbaabb", "abbaabb");
+        lawful(x, 7);
+        Calls.say(x, 0, repeated("a", 31));
+        Calls.due("62 symbols in the midst", x.get(7, 0, 1), PutBack.NONE);
+        Calls.due("62 symbols in the midst", x.create(7, 0, 1), PutBack.NONE);
+        Calls.due("62 symbols in the midst", x.put(7, 1, 0, 1), PutBack.NONE);
+        Calls.due("62 symbols in the midst", x.open(7, 0), PutBack.NONE);
+        towerOfNumbers(3456);
+        towersOfKeys();
+    }
+
+    private static void lawful(PutBack x, int lens) {
+        for (int kind = 0; kind < 4; kind++) {
+            Calls.due("laws " + kind, x.laws(lens, kind, 5), 0);
         }
-        Calls.say(x, 0, "aa");
-        x.get(7, 0, 1);
-        Calls.due("small ones go on", x.aligned(0, 0, 0, 1), 1);
-        x.get(7, 0, 1);
-        Calls.due("small ones go on", x.key(0, 0, 0, 1), 1);
+    }
+
+    /** A number of 13 bits, the least first: the tower adds 86 to the 7, over more texts than can be recalled. */
+    private static void towerOfNumbers(int step) {
+        PutBack x = tower(8, "a=(del\"1\"\"1\".ins\"0\")*.(del\"0\"\"0\".ins\"1\".copy[0-1]*|copy\"\")");
+        long added = 1;
+        for (int i = 0; i < 7; i++) {
+            added = added * 86 % 8192;
+        }
+        for (int n = 1; n < 8192; n += step) {
+            roundTrip(x, 7, bits(n), bits((int) (n + added) % 8192), bits(n));
+        }
+        lawful(x, 7);
+    }
+
+    private static String bits(int n) {
+        StringBuilder made = new StringBuilder();
+        for (int i = 0; i < 13; i++) {
+            made.append((n >> i) & 1);
+        }
+        return made.toString();
+    }
+
+    private static void towersOfKeys() {
+        PutBack x = tower(7, "a=dict(swap(key[a-z],copy[a-z]).copy\";\")");
+        Calls.due("define", Calls.define(x, "h=dict(key[a-z].copy[a-z].copy\";\".del[0-9]\"0\")then g"), 7);
+        Calls.say(x, 0, "ab;1cd;2");
+        Calls.say(x, 1, "cd;xy;ab;");
+        Calls.due("put", x.put(7, 1, 0, 2), 12);
+        Calls.due("put", Calls.read(x, 2), "cd;2xy;0ab;1");
+        Calls.due("parts", x.parts(7, 1), 3);
+        Calls.due("key", x.key(7, 1, 1, 2), 1);
+        Calls.due("key", Calls.read(x, 2), "y");
+        Calls.due("aligned", x.aligned(7, 1, 0, 1), PutBack.NONE);
+        Calls.due("open", x.open(7, 0), 6);
+        Calls.due("edit", x.edit(1, 0, 6, 1), 12);
+        PutBack alone = tower(1, "a=dict(key[a-z].copy[a-z].copy\";\".del[0-9]\"0\")");
+        for (int kind = 0; kind < 4; kind++) {
+            Calls.due("laws " + kind, x.laws(7, kind, 5), alone.laws(0, kind, 5));
+        }
+        x = tower(6, "a=" + FLIP);
+        Calls.due("define", Calls.define(x, "h=dict(f.key[0-9]).ins\"\""), 6);
+        Calls.due("define", Calls.define(x, "g=dict(f.key[0-9].del[x-z]\"x\")"), 7);
+        Calls.say(x, 0, "a1zb2ya3x");
+        Calls.say(x, 1, "a3b1b7");
+        Calls.due("aligned", x.aligned(7, 1, 0, 0), 2);
+        Calls.due("aligned", x.aligned(7, 1, 0, 1), 0);
+        Calls.due("aligned", x.aligned(7, 1, 0, 2), -2);
+        Calls.due("put", x.put(7, 1, 0, 2), 9);
+        Calls.due("put", Calls.read(x, 2), "a3xb1zb7x");
+        x = tower(7, "a=key[a-c]|del\"x\"\"x\".ins\"x\"");
+        Calls.due("define", Calls.define(x, "h=dict(g.del[0-9]\"5\")"), 7);
+        Calls.say(x, 0, "a1x2c3");
+        Calls.say(x, 1, "cxb");
+        Calls.due("put", x.put(7, 1, 0, 2), 6);
+        Calls.due("put", Calls.read(x, 2), "c3x2b5");
+        Calls.due("key", x.key(7, 1, 0, 2), 1);
+        Calls.due("key", x.key(7, 1, 1, 2), 0);
     }
 
     /** More texts in the midst, and more parts that wait, than there is room for at first. */
@@ -300,5 +371,17 @@ public final class LimitsTest {
             }
         }
         room("laws, put, edit and nth", before);
+    }
+
+    private static void roomOfTowers() {
+        long before = allocated();
+        PutBack x = tower(8, "a=" + FLIP, "b=a" + repeated(".a", 29));
+        room("tower of rows", before);
+        before = allocated();
+        towerOfNumbers(8192);
+        // What is recalled are numbers of eight bytes.
+        System.out.println("room of a tower of numbers: " + (allocated() - before) + " bytes");
+        Calls.due("room of a tower of numbers", allocated() - before < 24000000L, true);
+        Calls.due("lenses", x.look(0), 8);
     }
 }

@@ -14,6 +14,8 @@ public final class ModelTest {
     private static PutBack x;
     private static PutBackModel y;
     private static final List<String> names = new ArrayList<>();
+    /** In some runs all definitions are of lenses that name one another by "then". */
+    private static Towers towers;
     private static final Map<String, Integer> answered = new TreeMap<>();
     private static int told;
     private static int good;
@@ -47,6 +49,7 @@ public final class ModelTest {
         x = new PutBack();
         y = new PutBackModel();
         names.clear();
+        towers = run % 4 == 3 ? new Towers(ModelTest::pick) : null;
         try {
             for (int i = 0; i < 3; i++) {
                 tellLens(run);
@@ -79,11 +82,12 @@ public final class ModelTest {
 
     private static void tellLens(int run) {
         String name = ownName();
-        String definition = (pick(50) == 0 ? "" : name) + one(" = ", "=", "=", " =\n") + definition();
+        String definition = (pick(50) == 0 ? "" : name) + one(" = ", "=", "=", " =\n")
+            + (towers != null ? towers.definition() : definition());
         if (definition.length() > 600) {
             return;
         }
-        if (pick(6) == 0) {
+        if (pick(towers != null ? 60 : 6) == 0) {
             definition = spoiled(definition);
         }
         tape(definition);
@@ -103,6 +107,9 @@ public final class ModelTest {
         if (x.fault(0) == 0) {
             good++;
             names.add(name);
+            if (towers != null) {
+                towers.told(name);
+            }
             int n = x.look(0) - 1;
             for (int k = 0; k < 10; k++) {
                 Calls.due(call + "set " + k, x.set(n, k / 5, k % 5), y.set(n, k / 5, k % 5));
@@ -265,8 +272,9 @@ public final class ModelTest {
     /** A text of a set, found by going on with symbols that can stand there. */
     private static String walked(int lens, int side) {
         StringBuilder made = new StringBuilder();
-        int most = 1 + pick(30);
-        for (int i = 0; i < 55; i++) {
+        int most = 1 + pick(towers != null ? 60 : 30);
+        boolean least = pick(4) == 0;
+        for (int i = 0; i < 59; i++) {
             tape(made.toString());
             x.text(7);
             y.text(7);
@@ -277,7 +285,7 @@ public final class ModelTest {
             if (many <= 0) {
                 break;
             }
-            made.append((char) x.goesOn(lens, side, 7, pick(many)));
+            made.append((char) x.goesOn(lens, side, 7, least && pick(9) > 0 ? 0 : pick(many)));
         }
         return made.toString();
     }

@@ -493,6 +493,22 @@ public final class PromisesTest {
         puts(x, 0, "abbbb", twelve + "a", "a");
         Calls.say(x, 0, "a");
         Calls.due("10 too long in the midst", x.put(1, 0, 1, 2), NONE);
+        // A last one that changes nothing makes what the one ahead of it shows a text in the midst.
+        x = with("a = (copy [a] . ins \"bbbb\")*", "b = a then copy \"abbbb\"*", "c = copy [a]* then a",
+            "d = copy [a]* then b then copy \"abbbb\"*");
+        Calls.say(x, 0, "abbbb");
+        Calls.say(x, 1, twelve + "a");
+        Calls.due("10 not in the midst", x.put(0, 0, 1, 2), 1);
+        Calls.due("10 too long in the midst", x.put(1, 0, 1, 2), NONE);
+        Calls.due("10 not in the midst", x.put(2, 0, 1, 2), 1);
+        Calls.due("10 too long in the midst", x.put(3, 0, 1, 2), NONE);
+        Calls.due("11 nothing is shown", x.create(3, 0, 2), 1);
+        x = with("a = (del [a] \"a\" . ins \"bb\" | del \"bb\" \"bb\" . ins \"a\")*", "b = a then a");
+        Calls.say(x, 0, twelve + twelve + "aaaaaa");
+        Calls.due("9 sixty in the midst", x.get(1, 0, 1), 30);
+        Calls.say(x, 0, twelve + twelve + "aaaaaaa");
+        Calls.due("9 too long in the midst", x.get(1, 0, 1), NONE);
+        Calls.due("11 too long in the midst", x.create(1, 0, 1), NONE);
     }
 
     private static void manyTexts() {
@@ -584,6 +600,39 @@ public final class PromisesTest {
         // A dict behind: its parts are aligned by key, and then those of the lens ahead by place.
         x = with("a = dict (key [a-c] . del [0-9] \"1\" . copy \";\")", "b = (swap(copy [a-c], copy \";\"))*", "c = a then b");
         puts(x, 2, ";b;a", "a5;b6;", "b6;a5;");
+        thensOfAlike();
+    }
+
+    /** Rows, branches and repetitions behind others of their kind. */
+    private static void thensOfAlike() {
+        String flip = "(del \"a\" \"a\" . ins \"b\" | del \"b\" \"b\" . ins \"a\")";
+        PutBack x = with("a = " + flip + "*", "b = a then (copy \"a\" | del \"b\" \"b\" . ins \"a\")*",
+            "c = a then a then a", "d = c then (copy \"a\" . ins \"\" | key \"b\")* then (del \"a\" \"a\" . ins \"b\" | del \"b\" \"b\" . ins \"a\")*",
+            "e = (copy \"a\" | del [b-c] \"c\" . ins \"b\")* then a");
+        shows(x, 1, "aab", "aaa");
+        puts(x, 1, "aaaa", "aab", "aabb");
+        puts(x, 1, "a", "baa", "b");
+        shows(x, 2, "aab", "bba");
+        puts(x, 2, "ab", "bbb", "ba");
+        shows(x, 3, "aab", "aab");
+        puts(x, 3, "abba", "b", "abba");
+        shows(x, 4, "abc", "baa");
+        puts(x, 4, "aaab", "abba", "cbba");
+        x = with("a = swap(copy [a-c], copy [0-9] . del [0-9] \"5\" . ins \"6\")", "b = a then swap(copy [0-9] . copy \"6\", copy [a-c])",
+            "c = b then copy [a-c] . (copy [0-9] . copy \"6\")", "d = c then swap(copy [a-c], copy [0-9] . copy \"6\")");
+        shows(x, 1, "a12", "a16");
+        puts(x, 1, "b76", "a12", "b72");
+        shows(x, 3, "a12", "16a");
+        puts(x, 3, "76b", "a12", "b72");
+        made(x, 3, "76b", "b75");
+        // By which branch a view goes back, and whether into the source.
+        x = with("a = copy \"a\" . del [0-9] \"1\" . ins \"x\" | copy \"b\" . del [0-9] \"2\" . ins \"x\"",
+            "b = del \"b\" \"b\" . ins \"a\" . copy \"x\" | del \"a\" \"a\" . ins \"b\" . copy \"x\"", "c = a then b then b then b");
+        shows(x, 2, "a7", "bx");
+        puts(x, 2, "bx", "a7", "a7");
+        puts(x, 2, "ax", "a7", "b2");
+        puts(x, 2, "ax", "b7", "b7");
+        made(x, 2, "bx", "a1");
     }
 
     private static void made(PutBack x, int lens, String view, String outcome) {
