@@ -830,8 +830,9 @@ public final class PutBack {
         Lens lastLink;
         /** Of "then" as it was told: another lens that does the same. */
         Lens simpler;
-        /** Of "then": its number among all that were made. */
+        /** Of "then": its number among all that were made, and whether all its kids are even. */
         int number;
+        boolean even;
         /** How many parts it has, those of lenses that it names too. */
         int weight = 1;
 
@@ -910,6 +911,7 @@ public final class PutBack {
             System.arraycopy(links, 0, made.kids, 0, many);
             made.lastLink = last;
             made.weight = weightOfAll(made.kids);
+            made.even = made.hasEvenKids(0);
             return made;
         }
 
@@ -947,6 +949,42 @@ public final class PutBack {
         Lens firstKid() {
             return kids.length > 0 ? kids[0] : null;
         }
+
+        /** Whether a view is always as its source is. */
+        boolean isPlain(int depth) {
+            boolean plain = depth < MOST_LOOKED && kind != THEN;
+            if (kind == DEL || kind == INS) {
+                return source.count == 0 && view.count == 0;
+            }
+            for (int i = 0; i < order.length && plain; i++) {
+                plain = order[i] == i;
+            }
+            for (int i = 0; i < kids.length && plain; i++) {
+                Lens kid = kids[i].simpler != null ? kids[i].simpler : kids[i];
+                plain = kid.isPlain(depth + 1);
+            }
+            return plain;
+        }
+
+        /** Whether a view is always as long as its source: then no text in the midst is longer than the outcome. */
+        boolean isEven(int depth) {
+            if (kind == COPY || kind == KEY || even) {
+                return true;
+            }
+            int length = source.onlyLength();
+            if (length != NONE && length == view.onlyLength()) {
+                return true;
+            }
+            return kind != THEN && depth < MOST_LOOKED && hasEvenKids(depth);
+        }
+
+        private boolean hasEvenKids(int depth) {
+            boolean good = kids.length > 0;
+            for (int i = 0; i < kids.length && good; i++) {
+                good = (i > 0 && kids[i] == kids[i - 1]) || kids[i].isEven(depth + 1);
+            }
+            return good;
+        }
     }
 
     /**
@@ -970,9 +1008,9 @@ public final class PutBack {
             for (int i = 0; i < many; i++) {
                 boolean again = i > 0 && links[i] == links[i - 1];
                 Lens each = links[i].simpler != null ? links[i].simpler : links[i];
-                plain = again ? plain : isPlain(each, depth);
+                plain = again ? plain : each.isPlain(depth);
                 // What the one ahead of the last one shows must not be too long, so that the last one can't go then.
-                if (!plain || (i == many - 1 && (count == 0 || !isEven(some[count - 1], 0)))) {
+                if (!plain || (i == many - 1 && (count == 0 || !some[count - 1].isEven(0)))) {
                     some[count] = each;
                     count++;
                 }
@@ -989,44 +1027,12 @@ public final class PutBack {
             return found;
         }
 
-        /** Whether a view is always as its source is. */
-        private static boolean isPlain(Lens lens, int depth) {
-            boolean plain = depth < MOST_LOOKED && lens.kind != THEN;
-            if (lens.kind == DEL || lens.kind == INS) {
-                return lens.source.count == 0 && lens.view.count == 0;
-            }
-            for (int i = 0; i < lens.order.length && plain; i++) {
-                plain = lens.order[i] == i;
-            }
-            for (int i = 0; i < lens.kids.length && plain; i++) {
-                Lens kid = lens.kids[i].simpler != null ? lens.kids[i].simpler : lens.kids[i];
-                plain = isPlain(kid, depth + 1);
-            }
-            return plain;
-        }
-
-        /** Whether a view is always as long as its source: then no text in the midst is longer than the outcome. */
-        private static boolean isEven(Lens lens, int depth) {
-            if (lens.kind == COPY || lens.kind == KEY) {
-                return true;
-            }
-            int length = lens.source.onlyLength();
-            if (length != NONE && length == lens.view.onlyLength()) {
-                return true;
-            }
-            boolean even = lens.kids.length > 0 && depth < MOST_LOOKED;
-            for (int i = 0; i < lens.kids.length && even; i++) {
-                even = isEven(lens.kids[i], depth + 1);
-            }
-            return even;
-        }
-
         private static boolean canJoin(Lens lens, Lens first) {
             boolean good = lens.kind == ROW || lens.kind == BRANCHES || lens.kind == STAR;
             for (int i = 0; i < lens.same.length && good; i++) {
                 good = !lens.same[i];
             }
-            return good && lens.kind == first.kind && lens.kids.length == first.kids.length && isEven(lens, 0);
+            return good && lens.kind == first.kind && lens.kids.length == first.kids.length && lens.isEven(0);
         }
 
         /** One lens of which each part is made of parts behind parts; null if the lenses aren't split alike. */

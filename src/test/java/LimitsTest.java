@@ -6,6 +6,8 @@ public final class LimitsTest {
         999, 1000, Integer.MAX_VALUE - 1, Integer.MAX_VALUE};
 
     private static final String FLIP = "(del\"a\"\"a\".ins\"b\"|del\"b\"\"b\".ins\"a\")";
+    /** Adds one to a number of bits, the least first. */
+    private static final String NUMBERS = "a=(del\"1\"\"1\".ins\"0\")*.(del\"0\"\"0\".ins\"1\".copy[0-1]*|copy\"\")";
 
     private static long state = 5;
 
@@ -168,6 +170,32 @@ public final class LimitsTest {
         Calls.due("62 symbols in the midst", x.open(7, 0), PutBack.NONE);
         towerOfNumbers(3456);
         towersOfKeys();
+        towerOfNothing();
+        towerInRow();
+    }
+
+    private static void towerInRow() {
+        PutBack x = tower(6, NUMBERS);
+        Calls.due("define", Calls.define(x, "g=f.copy\",\".f"), 6);
+        Calls.due("define", Calls.define(x, "h=g" + repeated(" then g", 85)), 7);
+        // 86 to the 6 is 0 modulo 64.
+        roundTrip(x, 7, "10110,011101", "10110,011101", "10110,011101");
+        x = tower(6, "a=dict(swap(key[a-z],copy[a-z]).copy\";\")");
+        Calls.due("define", Calls.define(x, "g=f.copy\",\".f"), 6);
+        Calls.due("define", Calls.define(x, "h=g" + repeated(" then g", 85)), 7);
+        roundTrip(x, 7, "ab;cd;,ef;", "ab;cd;,ef;", "ab;cd;,ef;");
+    }
+
+    /** What is shown of the empty text, made anew from it and put back into it is not the same. */
+    private static void towerOfNothing() {
+        PutBack x = tower(2, "a=ins\"x\"|del\"x\"\"x\"");
+        Calls.due("define", Calls.define(x, "c=del[0-9]?\"5\".copy\"x\"?then b"), 2);
+        Calls.say(x, 0, "");
+        for (int i = 0; i < 2; i++) {
+            Calls.due("get", x.get(2, 0, 1), 0);
+            Calls.due("create", x.create(2, 0, 1), 1);
+            Calls.due("put", x.put(2, 0, 0, 1), 0);
+        }
     }
 
     private static void lawful(PutBack x, int lens) {
@@ -178,7 +206,7 @@ public final class LimitsTest {
 
     /** A number of 13 bits, the least first: the tower adds 86 to the 7, over more texts than can be recalled. */
     private static void towerOfNumbers(int step) {
-        PutBack x = tower(8, "a=(del\"1\"\"1\".ins\"0\")*.(del\"0\"\"0\".ins\"1\".copy[0-1]*|copy\"\")");
+        PutBack x = tower(8, NUMBERS);
         long added = 1;
         for (int i = 0; i < 7; i++) {
             added = added * 86 % 8192;
