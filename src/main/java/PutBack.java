@@ -32,6 +32,9 @@ public final class PutBack {
     /** Each "then" takes four bytes of the tape. */
     private static final int MOST_LINKS = TAPE_BYTES / 4;
 
+    /** Where a length isn't always the same. */
+    private static final int UNKNOWN = -1000000;
+
     /** How deep parts of lenses behind one another are looked at, to find a simpler lens. */
     private static final int MOST_LOOKED = 12;
 
@@ -664,7 +667,7 @@ public final class PutBack {
             for (int n = 1; n <= count; n++) {
                 long further = 0;
                 for (int p = 0; p < count; p++) {
-                    further |= isIn(open, p) ? behind[p] : 0L;
+                    further |= ((open >>> p) & 1L) != 0 ? behind[p] : 0L;
                 }
                 if ((open & last) != 0) {
                     return (open & ~last) == 0 && further == 0 ? n : NONE;
@@ -672,6 +675,23 @@ public final class PutBack {
                 open = further;
             }
             return NONE;
+        }
+
+        /** Whether there is one text alone. */
+        boolean isOneText() {
+            boolean one = onlyLength() == count;
+            for (int p = 0; p < count && one; p++) {
+                one = (allowed[p] & (allowed[p] - 1)) == 0;
+            }
+            return one;
+        }
+
+        byte[] leastSigns() {
+            byte[] made = new byte[count];
+            for (int p = 0; p < count; p++) {
+                made[p] = (byte) lowest(allowed[p]);
+            }
+            return made;
         }
 
         int stateBehind(Text asked) {
@@ -830,9 +850,17 @@ public final class PutBack {
         Lens lastLink;
         /** Of "then" as it was told: another lens that does the same. */
         Lens simpler;
-        /** Of "then": its number among all that were made, and whether all its kids are even. */
+        /** Of "then": by which number its answers are recalled, 0 if none were yet. */
         int number;
-        boolean even;
+        /** Of "then": as grows() and isOneToOne() tell. */
+        int growth;
+        boolean oneToOne;
+        /** Of "then": whether all kids are stepwise; else of a lens that is so: which positions stay as they are. */
+        boolean stepwise;
+        long kept;
+        /** Of "then": the words that show and make by it, and in which time of the words they are so. */
+        final int[] roots = new int[2];
+        int time;
         /** How many parts it has, those of lenses that it names too. */
         int weight = 1;
 
@@ -911,19 +939,9 @@ public final class PutBack {
             System.arraycopy(links, 0, made.kids, 0, many);
             made.lastLink = last;
             made.weight = weightOfAll(made.kids);
-            made.even = made.hasEvenKids(0);
-            return made;
-        }
-
-        /** One lens of this one and of another one of its kind behind it; the other's kid i is kid ends[i] of it. */
-        Lens through(Lens last, Lens[] parts, int[] ends) {
-            Lens made = new Lens(kind, source, last.view, parts, last.hasKey);
-            made.order = new int[order.length];
-            for (int i = 0; i < order.length; i++) {
-                made.order[i] = ends[last.order[i]];
-            }
-            made.same = same;
-            made.weight = weightOfAll(parts);
+            made.growth = made.growthInRow(0);
+            made.oneToOne = made.hasKidsOneToOne(0, true);
+            made.stepwise = made.hasKidsStepwise();
             return made;
         }
 
@@ -966,51 +984,138 @@ public final class PutBack {
             return plain;
         }
 
-        /** Whether a view is always as long as its source: then no text in the midst is longer than the outcome. */
-        boolean isEven(int depth) {
-            if (kind == COPY || kind == KEY || even) {
-                return true;
+        /** By how much a view is always longer than its source, UNKNOWN if it isn't always as much. */
+        int grows(int depth) {
+            int ofSource = source.onlyLength();
+            int ofView = view.onlyLength();
+            if (kind == COPY || kind == KEY) {
+                return 0;
             }
-            int length = source.onlyLength();
-            if (length != NONE && length == view.onlyLength()) {
-                return true;
+            if (ofSource != NONE && ofView != NONE) {
+                return ofView - ofSource;
             }
-            return kind != THEN && depth < MOST_LOOKED && hasEvenKids(depth);
+            if (kind == THEN) {
+                return growth;
+            }
+            if (kids.length == 0 || depth >= MOST_LOOKED) {
+                return UNKNOWN;
+            }
+            if (kind == ROW) {
+                return growthInRow(depth);
+            }
+            int sum = kids[0].grows(depth + 1);
+            for (int i = 1; i < kids.length; i++) {
+                sum = kids[i].grows(depth + 1) == sum ? sum : UNKNOWN;
+            }
+            return sum == 0 || kind == BRANCHES ? sum : UNKNOWN;
         }
 
-        private boolean hasEvenKids(int depth) {
-            boolean good = kids.length > 0;
+        private int growthInRow(int depth) {
+            int sum = 0;
+            int latest = 0;
+            for (int i = 0; i < kids.length && sum != UNKNOWN; i++) {
+                latest = i > 0 && kids[i] == kids[i - 1] ? latest : kids[i].grows(depth + 1);
+                sum = latest == UNKNOWN ? UNKNOWN : sum + latest;
+            }
+            return sum;
+        }
+
+        /** Whether a view is always as long as its source: then no text in the midst is longer than the outcome. */
+        boolean isEven() {
+            return grows(0) == 0;
+        }
+
+        /** Whether a view goes back to one source, whatever it is put into, with no text in the midst too long. */
+        boolean isOneToOne(int depth) {
+            switch (kind) {
+                case DEL:
+                    return source.isOneText();
+                case ROW:
+                case STAR:
+                    return hasKidsOneToOne(depth, false);
+                case BRANCHES:
+                    return !hasSameViews() && hasKidsOneToOne(depth, false);
+                case DICT:
+                    return hasKidsOneToOne(depth, true);
+                case THEN:
+                    return oneToOne;
+                default:
+                    return true;
+            }
+        }
+
+        private boolean hasKidsOneToOne(int depth, boolean even) {
+            boolean good = depth < MOST_LOOKED;
             for (int i = 0; i < kids.length && good; i++) {
-                good = (i > 0 && kids[i] == kids[i - 1]) || kids[i].isEven(depth + 1);
+                boolean again = i > 0 && kids[i] == kids[i - 1];
+                good = again || (kids[i].isOneToOne(depth + 1) && (!even || kids[i].grows(0) == 0));
             }
             return good;
         }
-    }
 
-    /**
-     * Makes one lens of several that stand behind one another by "then". Tapes may name lenses so often that
-     * nobody could wait for all of them one by one: so what changes nothing is left out, and rows, branches and
-     * repetitions behind others that are split alike become one, of parts behind parts.
-     */
-    private static final class Composer {
-        private final Walker walker;
-        private int made;
-
-        Composer(Walker walker) {
-            this.walker = walker;
+        private boolean hasKidsStepwise() {
+            boolean good = true;
+            for (int i = 0; i < kids.length && good; i++) {
+                boolean again = i > 0 && kids[i] == kids[i - 1];
+                good = again || (kids[i].kind == THEN ? kids[i].stepwise : kids[i].isStepwise(0));
+            }
+            return good;
         }
 
-        /** A lens that shows, puts back and makes anew as these do one behind another. */
-        Lens joined(Lens[] links, int many, int depth) {
+        /**
+         * Whether each symbol of a source becomes one of its view by itself: then position p of the one set goes with
+         * position p of the other one. Either a symbol stays (the kept ones), or one stands for one.
+         */
+        private boolean isStepwise(int depth) {
+            int inSource = 0;
+            int inView = 0;
+            kept = 0;
+            if (kind == COPY || kind == KEY) {
+                kept = (1L << source.count) - 1;
+                return source.count == view.count;
+            }
+            boolean good = depth < MOST_LOOKED && kind != THEN && !hasSameViews();
+            for (int i = 0; i < kids.length && good; i++) {
+                Lens kid = kids[i];
+                if (kid.kind == DEL || kid.kind == INS) {
+                    good = kid.kind == INS || kid.source.isOneText();
+                } else {
+                    good = inSource == inView && kid.isStepwise(depth + 1);
+                    kept |= kid.kept << inSource;
+                }
+                good = good && (kind != ROW || order[i] == i);
+                inSource += kid.source.count;
+                inView += kid.view.count;
+                good = good && (kind == ROW || inSource == inView);
+            }
+            return good && inSource == inView && inSource == source.count && inView == view.count;
+        }
+
+        private boolean hasSameViews() {
+            boolean found = false;
+            for (int i = 0; i < same.length; i++) {
+                found |= same[i];
+            }
+            return found;
+        }
+
+        /**
+         * A lens that shows, puts back and makes anew as these do one behind another. Tapes may name lenses so often
+         * that nobody could wait for all of them one by one: so what changes nothing is left out, and rows, branches
+         * and repetitions behind others that are split alike become one, of parts behind parts.
+         */
+        static Lens joined(Lens[] links, int many, Walker walker, int depth) {
             Lens[] some = new Lens[many];
             int count = 0;
             boolean plain = false;
+            boolean texts = true;
             for (int i = 0; i < many; i++) {
                 boolean again = i > 0 && links[i] == links[i - 1];
                 Lens each = links[i].simpler != null ? links[i].simpler : links[i];
                 plain = again ? plain : each.isPlain(depth);
+                texts = texts && (again || (each.source.isOneText() && each.view.isOneText()));
                 // What the one ahead of the last one shows must not be too long, so that the last one can't go then.
-                if (!plain || (i == many - 1 && (count == 0 || !some[count - 1].isEven(0)))) {
+                if (!plain || (i == many - 1 && (count == 0 || !some[count - 1].isEven()))) {
                     some[count] = each;
                     count++;
                 }
@@ -1018,25 +1123,35 @@ public final class PutBack {
             if (count == 1) {
                 return some[0];
             }
-            Lens found = depth < MOST_LOOKED ? joinedParts(some, count, depth) : null;
-            if (found == null) {
-                found = Lens.then(some, count);
-                made++;
-                found.number = made;
+            if (texts) {
+                return oneForOne(some[0].source, some[count - 1].view);
             }
-            return found;
+            Lens found = depth < MOST_LOOKED ? joinedParts(some, count, walker, depth) : null;
+            return found != null ? found : then(some, count);
+        }
+
+        /** One text for another one. */
+        private static Lens oneForOne(TextSet source, TextSet view) {
+            Lens gone = leaf(DEL, source, TextSet.ofQuoted(new byte[0], 0));
+            Lens come = leaf(INS, gone.view, view);
+            gone.quoted = source.leastSigns();
+            come.quoted = view.leastSigns();
+            boolean same = source.count == view.count;
+            for (int i = 0; i < source.count && same; i++) {
+                same = gone.quoted[i] == come.quoted[i];
+            }
+            return same ? leaf(COPY, source, view) : row(gone, come, false);
         }
 
         private static boolean canJoin(Lens lens, Lens first) {
-            boolean good = lens.kind == ROW || lens.kind == BRANCHES || lens.kind == STAR;
-            for (int i = 0; i < lens.same.length && good; i++) {
-                good = !lens.same[i];
-            }
-            return good && lens.kind == first.kind && lens.kids.length == first.kids.length && lens.isEven(0);
+            boolean repeats = first.kind == STAR || first.kind == DICT;
+            boolean alike = repeats ? lens.kind == STAR || (lens.kind == DICT && lens.isOneToOne(0))
+                : lens.kind == first.kind && (lens.kind == ROW || lens.kind == BRANCHES);
+            return alike && lens.kids.length == first.kids.length && !lens.hasSameViews() && lens.isEven();
         }
 
         /** One lens of which each part is made of parts behind parts; null if the lenses aren't split alike. */
-        private Lens joinedParts(Lens[] some, int count, int depth) {
+        private static Lens joinedParts(Lens[] some, int count, Walker walker, int depth) {
             Lens first = some[0];
             int parts = first.kids.length;
             boolean good = true;
@@ -1044,7 +1159,7 @@ public final class PutBack {
                 good = (i > 0 && some[i] == some[i - 1]) || canJoin(some[i], first);
             }
             int[] paths = new int[good ? count * parts : 0];
-            if (!good || !follow(some, count, paths)) {
+            if (!good || !follow(some, count, paths, walker)) {
                 return null;
             }
             Lens[] column = new Lens[count];
@@ -1055,13 +1170,13 @@ public final class PutBack {
                     column[i] = some[i].kids[paths[i * parts + k]];
                 }
                 ends[paths[(count - 1) * parts + k]] = k;
-                kids[k] = joined(column, count, depth + 1);
+                kids[k] = joined(column, count, walker, depth + 1);
             }
             return first.through(some[count - 1], kids, ends);
         }
 
         /** In row i: to which part of lens i each part of the first one comes. */
-        private boolean follow(Lens[] some, int count, int[] paths) {
+        private static boolean follow(Lens[] some, int count, int[] paths, Walker walker) {
             int parts = some[0].kids.length;
             int[] next = new int[parts];
             for (int k = 0; k < parts; k++) {
@@ -1069,7 +1184,7 @@ public final class PutBack {
             }
             for (int i = 1; i < count; i++) {
                 boolean again = i > 1 && some[i] == some[i - 1] && some[i - 1] == some[i - 2];
-                if (!again && !pair(some[i - 1], some[i], next)) {
+                if (!again && !pair(some[i - 1], some[i], next, walker)) {
                     return false;
                 }
                 for (int k = 0; k < parts; k++) {
@@ -1080,7 +1195,7 @@ public final class PutBack {
         }
 
         /** Which part of a lens takes what each part of the lens ahead of it shows. */
-        private boolean pair(Lens ahead, Lens behind, int[] next) {
+        private static boolean pair(Lens ahead, Lens behind, int[] next, Walker walker) {
             boolean good = true;
             for (int k = 0; k < ahead.kids.length && good; k++) {
                 good = false;
@@ -1091,6 +1206,300 @@ public final class PutBack {
                 }
             }
             return good;
+        }
+
+        /** The set of rows (each part at its place) or of branches on one side. */
+        private TextSet setOf(Lens[] parts, int side, int[] places) {
+            TextSet made = null;
+            for (int i = 0; i < parts.length; i++) {
+                Lens part = parts[i < places.length ? places[i] : i];
+                TextSet next = side == SOURCE ? part.source : part.view;
+                if (made == null) {
+                    made = next;
+                } else {
+                    made = kind == ROW ? TextSet.chain(made, next) : TextSet.either(made, next);
+                }
+            }
+            return made;
+        }
+
+        /** One lens of this one and of others of its kind up to the last one, whose kid i is kid ends[i] of it. */
+        private Lens through(Lens last, Lens[] parts, int[] ends) {
+            if (kind == STAR || kind == DICT) {
+                // A dict of parts that go back to one source each puts back as a * does.
+                return repeated(STAR, parts[0]);
+            }
+            int[] places = new int[order.length];
+            int inSource = 0;
+            int inView = 0;
+            for (int i = 0; i < parts.length; i++) {
+                inSource += parts[i].source.count;
+                inView += parts[i].view.count;
+                if (i < places.length) {
+                    places[i] = ends[last.order[i]];
+                }
+            }
+            // The sets are the same as before, but their positions are those of the parts, if these aren't too many.
+            boolean own = inSource <= MOST_POSITIONS && inView <= MOST_POSITIONS;
+            Lens made = new Lens(kind, own ? setOf(parts, SOURCE, new int[0]) : source,
+                own ? setOf(parts, VIEW, places) : last.view, parts, last.hasKey);
+            made.order = places;
+            made.same = same;
+            made.weight = weightOfAll(parts);
+            return made;
+        }
+    }
+
+    /**
+     * Many stepwise lenses behind one another, symbol by symbol. Each is an atom: a lens, and the position of its set to
+     * which it came. What is still to be done is a word: a row of elements, of which each is an atom or another word, so
+     * many times. Words that are alike are one node, so that a lens that stands there some million times is one element,
+     * and goes on as one.
+     */
+    private static final class Words {
+        private static final int MOST_NODES = 4096;
+        private static final int MOST_ATOMS = 512;
+        private static final int MOST_STACKED = 4096;
+        private static final int MOST_DEEP = 24;
+        private static final int SYMBOLS = 42;
+
+        final byte[] told = new byte[LONGEST];
+        private Lens[] lenses = new Lens[0];
+        private int[] states = new int[0];
+        private int atoms;
+        /** Of an element: what (an atom below 0, or a word), how often, NONE; of a word: an element, 0, the rest. */
+        private int[] first = new int[0];
+        private long[] times = new long[0];
+        private int[] rest = new int[0];
+        private int nodes;
+        private int[] places = new int[0];
+        /** Of each element and symbol: what is to be done behind it (a word), and the symbol that comes out. */
+        private int[] answers = new int[0];
+        private int[] stack = new int[0];
+        private long[] stackTimes = new long[0];
+        private int stacked;
+        private int symbol;
+        private boolean failed;
+        private int time;
+
+        /** What lenses show of a source, or make of a view: it is told; false if that took too much room. */
+        boolean run(Lens then, int side, byte[] store, int from, int to) {
+            begin();
+            int word = rootOf(then, side, 0);
+            for (int i = from; i < to && i - from < LONGEST && !failed; i++) {
+                word = throughWord(word, store[i], 0);
+                told[i - from] = (byte) symbol;
+            }
+            return !failed;
+        }
+
+        private void begin() {
+            failed = false;
+            stacked = 0;
+            if (time == 0) {
+                lenses = new Lens[MOST_ATOMS];
+                states = new int[MOST_ATOMS];
+                first = new int[MOST_NODES];
+                times = new long[MOST_NODES];
+                rest = new int[MOST_NODES];
+                places = new int[2 * MOST_NODES];
+                answers = new int[MOST_NODES * SYMBOLS];
+                stack = new int[MOST_STACKED];
+                stackTimes = new long[MOST_STACKED];
+            }
+            if (time == 0 || nodes > MOST_NODES / 2 || atoms > MOST_ATOMS / 2) {
+                Arrays.fill(places, 0);
+                Arrays.fill(answers, 0);
+                // Node 0 is the empty word.
+                nodes = 1;
+                atoms = 0;
+                time++;
+            }
+        }
+
+        private int rootOf(Lens then, int side, int depth) {
+            if (then.time == time && then.roots[side] != 0) {
+                return then.roots[side] - 1;
+            }
+            if (then.time != time) {
+                then.time = time;
+                then.roots[1 - side] = 0;
+            }
+            failed |= depth > MOST_LENSES;
+            int base = stacked;
+            for (int i = 0; i < then.kids.length && !failed; i++) {
+                Lens kid = then.kids[side == SOURCE ? i : then.kids.length - 1 - i];
+                int what = kid.kind == THEN ? rootOf(kid, side, depth + 1) : atomOf(kid, side, TextSet.START);
+                push(what, 1, false, base);
+            }
+            int word = gather(base);
+            then.roots[side] = failed ? 0 : word + 1;
+            return word;
+        }
+
+        /** A lens at a position; the empty word (0) if all symbols that may come behind it stay as they are. */
+        private int atomOf(Lens lens, int side, int state) {
+            TextSet set = side == SOURCE ? lens.source : lens.view;
+            long reached = state >= 0 && state < set.count ? set.behind[state] : set.first;
+            long open = reached;
+            while (open != 0) {
+                int p = Long.bitCount((open & -open) - 1);
+                open &= open - 1;
+                open |= set.behind[p] & ~reached;
+                reached |= set.behind[p];
+            }
+            if ((reached & ~lens.kept) == 0) {
+                return 0;
+            }
+            int found = 0;
+            while (found < atoms && (lenses[found] != lens || states[found] != 2 * state + side)) {
+                found++;
+            }
+            if (found == MOST_ATOMS) {
+                failed = true;
+                return 0;
+            }
+            if (found == atoms) {
+                lenses[found] = lens;
+                states[found] = 2 * state + side;
+                atoms++;
+            }
+            return -1 - found;
+        }
+
+        /** An atom, or a word, so often on the stack; a word as its elements if it is flat or has but one. */
+        private void push(int what, long often, boolean flat, int base) {
+            boolean whole = what < 0 || (rest[what] != 0 && (often > 1 || !flat));
+            int word = what;
+            while (word != 0 && !failed) {
+                int next = whole ? what : first[first[word]];
+                long many = whole ? often : times[first[word]] * often;
+                if (stacked > base && stack[stacked - 1] == next) {
+                    stackTimes[stacked - 1] += many;
+                } else if (stacked < MOST_STACKED) {
+                    stack[stacked] = next;
+                    stackTimes[stacked] = many;
+                    stacked++;
+                } else {
+                    failed = true;
+                }
+                word = whole ? 0 : rest[word];
+            }
+        }
+
+        /** The word of what stands on the stack from a place on, which goes from there. */
+        private int gather(int base) {
+            int word = 0;
+            while (stacked > base && !failed) {
+                stacked--;
+                int node = stack[stacked];
+                for (int phase = 0; phase < 2 && !failed; phase++) {
+                    long often = phase == 0 ? stackTimes[stacked] : 0;
+                    int behind = phase == 0 ? NONE : word;
+                    long mixed = ((node * 0x9E3779B97F4A7C15L) ^ often) * 0xC2B2AE3D27D4EB4FL + behind;
+                    mixed = (mixed ^ (mixed >>> 29)) * 0x9E3779B97F4A7C15L;
+                    int at = (int) (mixed >>> 40) & (places.length - 1);
+                    for (int i = 0; i < places.length && places[at] != 0 && (first[places[at]] != node
+                        || times[places[at]] != often || rest[places[at]] != behind); i++) {
+                        at = (at + 1) & (places.length - 1);
+                    }
+                    if (places[at] == 0 && nodes < MOST_NODES) {
+                        first[nodes] = node;
+                        times[nodes] = often;
+                        rest[nodes] = behind;
+                        places[at] = nodes;
+                        nodes++;
+                    }
+                    failed = places[at] == 0;
+                    node = places[at];
+                }
+                word = node;
+            }
+            stacked = base;
+            return failed ? 0 : word;
+        }
+
+        private int throughWord(int word, int x, int depth) {
+            int base = stacked;
+            int y = x;
+            for (int w = word; w != 0 && !failed; w = rest[w]) {
+                int section = through(first[w], y, depth + 1);
+                y = symbol;
+                push(section, 1, true, base);
+            }
+            symbol = y;
+            return gather(base);
+        }
+
+        /** What is to be done behind a symbol that goes through an element; 'symbol' is what comes out. */
+        private int through(int element, int x, int depth) {
+            failed |= depth > MOST_DEEP;
+            if (failed) {
+                return 0;
+            }
+            int at = element * SYMBOLS + x;
+            if (answers[at] != 0) {
+                symbol = (answers[at] - 1) % 64;
+                return (answers[at] - 1) / 64;
+            }
+            int base = stacked;
+            if (first[element] < 0 && times[element] == 1) {
+                int atom = -1 - first[element];
+                push(atomOf(lenses[atom], states[atom] & 1, stepOf(atom, x)), 1, false, base);
+            } else {
+                power(first[element], times[element], x, depth);
+            }
+            int word = gather(base);
+            answers[at] = failed ? 0 : 64 * word + symbol + 1;
+            return word;
+        }
+
+        /** The position to which an atom comes by a symbol; 'symbol' is what comes out. */
+        private int stepOf(int atom, int x) {
+            int side = states[atom] & 1;
+            int state = states[atom] >> 1;
+            TextSet set = side == SOURCE ? lenses[atom].source : lenses[atom].view;
+            TextSet other = side == SOURCE ? lenses[atom].view : lenses[atom].source;
+            for (long open = state < set.count ? set.behind[state] : set.first; open != 0; open &= open - 1) {
+                int p = Long.bitCount((open & -open) - 1);
+                if (((set.allowed[p] >>> x) & 1L) != 0) {
+                    boolean stays = ((lenses[atom].kept >>> p) & 1L) != 0;
+                    symbol = stays ? x : Long.bitCount((other.allowed[p] & -other.allowed[p]) - 1);
+                    return p;
+                }
+            }
+            failed = true;
+            return TextSet.START;
+        }
+
+        /** The same over and over: after some times the symbol is the first one again, and all goes on in rounds. */
+        private void power(int what, long often, int x, int depth) {
+            int base = stacked;
+            int y = x;
+            int section = 0;
+            long done = 0;
+            long left = often;
+            push(what, 1, false, base);
+            int one = what < 0 ? first[gather(base)] : NONE;
+            stacked = base;
+            while (done < left && !failed) {
+                section = what < 0 ? through(one, y, depth + 1) : throughWord(what, y, depth + 1);
+                y = symbol;
+                push(section, 1, true, base);
+                done++;
+                if (y == x && left == often && done < often) {
+                    int round = gather(base);
+                    push(round, often / done, true, base);
+                    left = often % done;
+                    done = 0;
+                }
+                failed |= done > SYMBOLS;
+            }
+            if (often == 1) {
+                stacked = base;
+                push(section, 1, false, base);
+            }
+            symbol = y;
         }
     }
 
@@ -1114,10 +1523,15 @@ public final class PutBack {
         private long[] rows = new long[0];
         private int buckets;
         private int turn;
+        private int numbers;
 
         /** What a lens is asked: of a source alone (no view), of a view alone (no source), or of both. */
-        void ask(int number, byte[] store, int fromView, int toView, int fromSource, int toSource) {
-            asked[1] = 4L * number + (fromView == NONE ? 0 : 1) + (fromSource == NONE ? 0 : 2);
+        void ask(Lens lens, byte[] store, int fromView, int toView, int fromSource, int toSource) {
+            if (lens.number == 0) {
+                numbers++;
+                lens.number = numbers;
+            }
+            asked[1] = 4L * lens.number + (fromView == NONE ? 0 : 1) + (fromSource == NONE ? 0 : 2);
             pack(store, fromView, toView, asked, 2);
             pack(store, fromSource, toSource, asked, 2 + WORDS);
             long mixed = 0;
@@ -1216,14 +1630,12 @@ public final class PutBack {
         private final byte[] quoted = new byte[MOST_QUOTED];
         private final Lens[] links = new Lens[MOST_LINKS];
         private final Walker walker;
-        private final Composer composer;
         private int quotedLength;
         private int place;
         private int opened;
 
         Reader(Walker walker) {
             this.walker = walker;
-            composer = new Composer(walker);
         }
 
         void take(int four) {
@@ -1276,7 +1688,7 @@ public final class PutBack {
             if (many > 0) {
                 links[many] = made;
                 made = Lens.then(links, many + 1);
-                made.simpler = composer.joined(links, many + 1, 0);
+                made.simpler = Lens.joined(links, many + 1, walker, 0);
                 made.weight = made.simpler.weight;
             }
             lenses[told] = made;
@@ -1788,6 +2200,7 @@ public final class PutBack {
         private int marked;
         private long steps;
 
+        private final Words words = new Words();
         private final Recall recall = new Recall();
         private final int[] viewFrom = new int[MOST_KIDS];
         private final int[] viewTo = new int[MOST_KIDS];
@@ -1951,7 +2364,7 @@ public final class PutBack {
                         good = showPart(now, c, d);
                         break;
                     case THEN:
-                        good = showThen(now, c, d, depth);
+                        good = answerThen(now, NONE, NONE, c, d, depth);
                         break;
                     default:
                         break;
@@ -2021,22 +2434,32 @@ public final class PutBack {
             return true;
         }
 
-        private boolean showThen(Lens then, int from, int to, int depth) {
+        /** Shows (without a view), makes anew (without a source) or puts back by lenses behind one another. */
+        private boolean answerThen(Lens then, int fromView, int toView, int fromSource, int toSource, int depth) {
+            boolean shows = fromView == NONE;
+            int from = !shows && then.oneToOne ? NONE : fromSource;
             if (then.simpler != null) {
-                await(then.simpler, NONE, NONE, from, to);
+                await(then.simpler, fromView, toView, fromSource, toSource);
                 return true;
             }
             if (then.weight < HEAVY) {
-                return showLinks(then, from, to, depth);
+                return shows ? showLinks(then, from, toSource, depth)
+                    : backLinks(then, fromView, toView, from, toSource, depth);
+            }
+            if (then.stepwise && words.run(then, shows ? SOURCE : VIEW, store, shows ? from : fromView,
+                shows ? toSource : toView)) {
+                append(words.told, 0, shows ? toSource - from : toView - fromView);
+                return true;
             }
             int begin = top;
-            recall.ask(then.number, store, NONE, NONE, from, to);
+            recall.ask(then, store, fromView, toView, from, toSource);
             if (recall.isKnown()) {
                 append(recall.told, 0, recall.length);
                 return recall.length != NONE;
             }
-            boolean good = showLinks(then, from, to, depth);
-            recall.ask(then.number, store, NONE, NONE, from, to);
+            boolean good = shows ? showLinks(then, from, toSource, depth)
+                : backLinks(then, fromView, toView, from, toSource, depth);
+            recall.ask(then, store, fromView, toView, from, toSource);
             recall.makeRoom();
             recall.keep(store, begin, good ? top : NONE);
             return good;
@@ -2094,7 +2517,7 @@ public final class PutBack {
                             : askKeys(now, c, d, depth) && alignParts(now, v, w) && backAligned(now);
                         break;
                     case THEN:
-                        good = backThen(now, v, w, c, d, depth);
+                        good = answerThen(now, v, w, c, d, depth);
                         break;
                     default:
                         break;
@@ -2224,33 +2647,18 @@ public final class PutBack {
             return true;
         }
 
-        private boolean backThen(Lens then, int fromView, int toView, int fromSource, int toSource, int depth) {
-            if (then.simpler != null) {
-                await(then.simpler, fromView, toView, fromSource, toSource);
-                return true;
-            }
-            if (then.weight < HEAVY) {
-                return backLinks(then, fromView, toView, fromSource, toSource, depth);
-            }
-            int begin = top;
-            recall.ask(then.number, store, fromView, toView, fromSource, toSource);
-            if (recall.isKnown()) {
-                append(recall.told, 0, recall.length);
-                return recall.length != NONE;
-            }
-            boolean good = backLinks(then, fromView, toView, fromSource, toSource, depth);
-            recall.ask(then.number, store, fromView, toView, fromSource, toSource);
-            recall.makeRoom();
-            recall.keep(store, begin, good ? top : NONE);
-            return good;
-        }
-
         private boolean backLinks(Lens then, int fromView, int toView, int fromSource, int toSource, int depth) {
             int begin = top;
             int base = marked;
             boolean anew = fromSource == NONE;
-            if (!anew && !showAhead(then, fromSource, toSource, depth)) {
-                return false;
+            // What all kids but the last show, one behind another; the marks tell where each begins and ends.
+            for (int k = 0; k < then.kids.length && !anew; k++) {
+                markTop();
+                int a = k == 0 ? fromSource : marks[base + k - 1];
+                int b = k == 0 ? toSource : top;
+                if (k < then.kids.length - 1 && !show(then.kids[k], a, b, depth + 1)) {
+                    return false;
+                }
             }
             int low = top;
             int v = fromView;
@@ -2269,23 +2677,6 @@ public final class PutBack {
             }
             marked = base;
             settle(begin, low);
-            return true;
-        }
-
-        /** What all kids but the last show, one behind another; the marks tell where each begins and ends. */
-        private boolean showAhead(Lens then, int from, int to, int depth) {
-            int a = from;
-            int b = to;
-            markTop();
-            for (int k = 0; k < then.kids.length - 1; k++) {
-                int start = top;
-                if (!show(then.kids[k], a, b, depth + 1)) {
-                    return false;
-                }
-                markTop();
-                a = start;
-                b = top;
-            }
             return true;
         }
 
