@@ -26,7 +26,7 @@ public final class PutBack {
     private static final long MOST_STEPS = 1L << 62;
 
     /** A "then" of at least so many parts recalls what it answered. */
-    private static final int HEAVY = 64;
+    private static final int HEAVY = 200;
     private static final int MOST_WEIGHT = 1000000;
 
     /** Each "then" takes four bytes of the tape. */
@@ -858,8 +858,9 @@ public final class PutBack {
         /** Of "then": whether all kids are stepwise; else of a lens that is so: which positions stay as they are. */
         boolean stepwise;
         long kept;
-        /** Of "then": the words that show and make by it, and in which time of the words they are so. */
-        final int[] roots = new int[2];
+        /** Of "then": the words (above 0) that show and make by it, and in which time of the words they are so. */
+        int shownBy;
+        int madeBy;
         int time;
         /** How many parts it has, those of lenses that it names too. */
         int weight = 1;
@@ -1257,9 +1258,9 @@ public final class PutBack {
      * and goes on as one.
      */
     private static final class Words {
-        private static final int MOST_NODES = 4096;
+        private static final int MOST_NODES = 2048;
         private static final int MOST_ATOMS = 512;
-        private static final int MOST_STACKED = 4096;
+        private static final int MOST_STACKED = 8192;
         private static final int MOST_DEEP = 24;
         private static final int SYMBOLS = 42;
 
@@ -1285,10 +1286,19 @@ public final class PutBack {
         /** What lenses show of a source, or make of a view: it is told; false if that took too much room. */
         boolean run(Lens then, int side, byte[] store, int from, int to) {
             begin();
-            int word = rootOf(then, side, 0);
+            push(rootOf(then, side, 0), 1, true, 0);
             for (int i = from; i < to && i - from < LONGEST && !failed; i++) {
-                word = throughWord(word, store[i], 0);
+                int many = stacked;
+                symbol = store[i];
+                for (int k = 0; k < many && !failed; k++) {
+                    push(stack[k], stackTimes[k], false, stacked);
+                    int element = first[gather(stacked - 1)];
+                    push(through(element, symbol, 0), 1, true, many);
+                }
                 told[i - from] = (byte) symbol;
+                stacked = Math.max(0, stacked - many);
+                System.arraycopy(stack, many, stack, 0, stacked);
+                System.arraycopy(stackTimes, many, stackTimes, 0, stacked);
             }
             return !failed;
         }
@@ -1306,24 +1316,22 @@ public final class PutBack {
                 answers = new int[MOST_NODES * SYMBOLS];
                 stack = new int[MOST_STACKED];
                 stackTimes = new long[MOST_STACKED];
-            }
-            if (time == 0 || nodes > MOST_NODES / 2 || atoms > MOST_ATOMS / 2) {
+            } else if (nodes > MOST_NODES / 2 || atoms > MOST_ATOMS / 2) {
                 Arrays.fill(places, 0);
                 Arrays.fill(answers, 0);
-                // Node 0 is the empty word.
-                nodes = 1;
-                atoms = 0;
-                time++;
+            } else {
+                return;
             }
+            // Node 0 is the empty word.
+            nodes = 1;
+            atoms = 0;
+            time++;
         }
 
         private int rootOf(Lens then, int side, int depth) {
-            if (then.time == time && then.roots[side] != 0) {
-                return then.roots[side] - 1;
-            }
-            if (then.time != time) {
-                then.time = time;
-                then.roots[1 - side] = 0;
+            int known = side == SOURCE ? then.shownBy : then.madeBy;
+            if (then.time == time && known != 0) {
+                return known - 1;
             }
             failed |= depth > MOST_LENSES;
             int base = stacked;
@@ -1333,16 +1341,20 @@ public final class PutBack {
                 push(what, 1, false, base);
             }
             int word = gather(base);
-            then.roots[side] = failed ? 0 : word + 1;
+            boolean stays = then.time == time;
+            then.shownBy = side == SOURCE ? word + 1 : stays ? then.shownBy : 0;
+            then.madeBy = side == VIEW ? word + 1 : stays ? then.madeBy : 0;
+            then.time = failed ? 0 : time;
             return word;
         }
 
         /** A lens at a position; the empty word (0) if all symbols that may come behind it stay as they are. */
-        private int atomOf(Lens lens, int side, int state) {
+        private int atomOf(Lens lens, int side, int at) {
             TextSet set = side == SOURCE ? lens.source : lens.view;
-            long reached = state >= 0 && state < set.count ? set.behind[state] : set.first;
+            int state = stateLike(set, at);
+            long reached = state < set.count ? set.behind[state] : set.first;
             long open = reached;
-            while (open != 0) {
+            for (int i = 0; i < MOST_POSITIONS && open != 0; i++) {
                 int p = Long.bitCount((open & -open) - 1);
                 open &= open - 1;
                 open |= set.behind[p] & ~reached;
@@ -1367,11 +1379,22 @@ public final class PutBack {
             return -1 - found;
         }
 
+        /** The first one of all states behind which the same may come. */
+        private static int stateLike(TextSet set, int state) {
+            long behind = state >= 0 && state < set.count ? set.behind[state] : set.first;
+            int found = behind == set.first ? TextSet.START : 0;
+            while (found < set.count && set.behind[found] != behind) {
+                found++;
+            }
+            return found;
+        }
+
         /** An atom, or a word, so often on the stack; a word as its elements if it is flat or has but one. */
         private void push(int what, long often, boolean flat, int base) {
             boolean whole = what < 0 || (rest[what] != 0 && (often > 1 || !flat));
             int word = what;
-            while (word != 0 && !failed) {
+            // The rest of a word is an earlier node.
+            for (int i = 0; i < MOST_NODES && word != 0 && !failed; i++) {
                 int next = whole ? what : first[first[word]];
                 long many = whole ? often : times[first[word]] * often;
                 if (stacked > base && stack[stacked - 1] == next) {
@@ -1419,13 +1442,15 @@ public final class PutBack {
             return failed ? 0 : word;
         }
 
-        private int throughWord(int word, int x, int depth) {
+        private int throughWord(int begin, int x, int depth) {
             int base = stacked;
             int y = x;
-            for (int w = word; w != 0 && !failed; w = rest[w]) {
-                int section = through(first[w], y, depth + 1);
+            int word = begin;
+            for (int i = 0; i < MOST_NODES && word != 0 && !failed; i++) {
+                int section = through(first[word], y, depth + 1);
                 y = symbol;
                 push(section, 1, true, base);
+                word = rest[word];
             }
             symbol = y;
             return gather(base);
@@ -1477,12 +1502,12 @@ public final class PutBack {
             int base = stacked;
             int y = x;
             int section = 0;
-            long done = 0;
+            int done = 0;
             long left = often;
             push(what, 1, false, base);
             int one = what < 0 ? first[gather(base)] : NONE;
             stacked = base;
-            while (done < left && !failed) {
+            while (done < left && done < SYMBOLS && !failed) {
                 section = what < 0 ? through(one, y, depth + 1) : throughWord(what, y, depth + 1);
                 y = symbol;
                 push(section, 1, true, base);
@@ -1493,8 +1518,8 @@ public final class PutBack {
                     left = often % done;
                     done = 0;
                 }
-                failed |= done > SYMBOLS;
             }
+            failed |= done < left;
             if (often == 1) {
                 stacked = base;
                 push(section, 1, false, base);

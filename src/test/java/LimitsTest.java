@@ -9,6 +9,9 @@ public final class LimitsTest {
     /** Adds one to a number of bits, the least first. */
     private static final String NUMBERS = "a=(del\"1\"\"1\".ins\"0\")*.(del\"0\"\"0\".ins\"1\".copy[0-1]*|copy\"\")";
 
+    private static final String LESS = "b=(del\"0\"\"0\".ins\"1\")*.(del\"1\"\"1\".ins\"0\".copy[0-1]*|copy\"\")";
+    private static final String OTHERS = "b=(del\"0\"\"0\".ins\"1\"|del\"1\"\"1\".ins\"0\")*";
+
     private static long state = 5;
 
     private LimitsTest() {
@@ -168,7 +171,8 @@ public final class LimitsTest {
         Calls.due("62 symbols in the midst", x.create(7, 0, 1), PutBack.NONE);
         Calls.due("62 symbols in the midst", x.put(7, 1, 0, 1), PutBack.NONE);
         Calls.due("62 symbols in the midst", x.open(7, 0), PutBack.NONE);
-        towerOfNumbers(3456);
+        towersOfNumbers();
+        towerOfMoves(4567);
         towersOfKeys();
         towerOfNothing();
         towerInRow();
@@ -204,22 +208,44 @@ public final class LimitsTest {
         }
     }
 
-    /** A number of 13 bits, the least first: the tower adds 86 to the 7, over more texts than can be recalled. */
-    private static void towerOfNumbers(int step) {
-        PutBack x = tower(8, NUMBERS);
-        long added = 1;
-        for (int i = 0; i < 7; i++) {
-            added = added * 86 % 8192;
+    /** Numbers of 60 bits, the least first: towers add what the last lens named adds, so often as they name it. */
+    private static void towersOfNumbers() {
+        adds(tower(8, NUMBERS), 7, 1);
+        adds(tower(8, NUMBERS, LESS), 6, -1);
+        adds(tower(8, NUMBERS, LESS, "c=a then b then a then a then b then a"), 5, 2);
+        adds(tower(8, NUMBERS, OTHERS, "c=a then b then a then b"), 5, 0);
+        adds(tower(8, NUMBERS, OTHERS, "c=a then b then a then a then b"), 5, -1);
+        adds(tower(8, NUMBERS, "b=copy[0-1].a|copy\"\"", "c=a then b then a then b then b"), 5, 8);
+        adds(tower(8, NUMBERS, OTHERS, LESS.replace("b=", "c="), "d=a then b then c then b then a"), 4, 3);
+        PutBack x = tower(8, NUMBERS, "b=dict(a.key\";\")", "c=b");
+        // 86 to the 5 is 0 modulo 16, 32 modulo 64.
+        roundTrip(x, 7, "0101;110010;11;000000;", "0101;110011;11;000001;", "0101;110010;11;000000;");
+    }
+
+    private static void adds(PutBack x, int levels, int each) {
+        long added = each;
+        for (int i = 0; i < levels; i++) {
+            added *= 86;
         }
-        for (int n = 1; n < 8192; n += step) {
-            roundTrip(x, 7, bits(n), bits((int) (n + added) % 8192), bits(n));
+        for (long n = 1; n > 0; n *= 37) {
+            roundTrip(x, 7, bits(n, 60), bits(n + added, 60), bits(n, 60));
         }
         lawful(x, 7);
     }
 
-    private static String bits(int n) {
+    /** As the number moves to and fro, it can't be gone through symbol by symbol: more texts than can be recalled. */
+    private static void towerOfMoves(long step) {
+        PutBack x = tower(8, NUMBERS, "b=swap(copy[x],a.copy\";\")", "c=swap(a.copy\";\",copy[x])", "d=b then c");
+        for (long n = 1; n < 8192; n += step) {
+            String source = "x" + bits(n, 13) + ";";
+            roundTrip(x, 7, source, "x" + bits(n + 2L * 86 * 86 * 86 * 86, 13) + ";", source);
+        }
+        lawful(x, 7);
+    }
+
+    private static String bits(long n, int many) {
         StringBuilder made = new StringBuilder();
-        for (int i = 0; i < 13; i++) {
+        for (int i = 0; i < many; i++) {
             made.append((n >> i) & 1);
         }
         return made.toString();
@@ -406,10 +432,13 @@ public final class LimitsTest {
         PutBack x = tower(8, "a=" + FLIP, "b=a" + repeated(".a", 29));
         room("tower of rows", before);
         before = allocated();
-        towerOfNumbers(8192);
+        adds(tower(8, NUMBERS), 7, 1);
+        room("tower of numbers", before);
+        before = allocated();
+        towerOfMoves(9999);
         // What is recalled are numbers of eight bytes.
-        System.out.println("room of a tower of numbers: " + (allocated() - before) + " bytes");
-        Calls.due("room of a tower of numbers", allocated() - before < 24000000L, true);
+        System.out.println("room of a tower of moves: " + (allocated() - before) + " bytes");
+        Calls.due("room of a tower of moves", allocated() - before < 24000000L, true);
         Calls.due("lenses", x.look(0), 8);
     }
 }
