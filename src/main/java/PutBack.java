@@ -666,8 +666,9 @@ public final class PutBack {
             }
             for (int n = 1; n <= count; n++) {
                 long further = 0;
-                for (int p = 0; p < count; p++) {
-                    further |= ((open >>> p) & 1L) != 0 ? behind[p] : 0L;
+                for (long some = open; some != 0; some &= some - 1) {
+                    int p = Long.bitCount((some & -some) - 1);
+                    further |= p < count ? behind[p] : 0L;
                 }
                 if ((open & last) != 0) {
                     return (open & ~last) == 0 && further == 0 ? n : NONE;
@@ -1070,26 +1071,30 @@ public final class PutBack {
         private boolean isStepwise(int depth) {
             int inSource = 0;
             int inView = 0;
-            kept = 0;
-            if (kind == COPY || kind == KEY) {
-                kept = (1L << source.count) - 1;
-                return source.count == view.count;
-            }
             boolean good = depth < MOST_LOOKED && kind != THEN && !hasSameViews();
+            long staying = 0;
+            if (kind == COPY || kind == KEY) {
+                inSource = source.count;
+                inView = view.count;
+                staying = (1L << inSource) - 1;
+            }
             for (int i = 0; i < kids.length && good; i++) {
                 Lens kid = kids[i];
                 if (kid.kind == DEL || kid.kind == INS) {
                     good = kid.kind == INS || kid.source.isOneText();
                 } else {
                     good = inSource == inView && kid.isStepwise(depth + 1);
-                    kept |= kid.kept << inSource;
+                    staying |= kid.kept << inSource;
                 }
                 good = good && (kind != ROW || order[i] == i);
                 inSource += kid.source.count;
                 inView += kid.view.count;
                 good = good && (kind == ROW || inSource == inView);
             }
-            return good && inSource == inView && inSource == source.count && inView == view.count;
+            good = good && inSource == inView && inSource == source.count && inView == view.count;
+            // What was found once stays, though the lens may be a part of others that lies too deep to be looked at.
+            kept = good ? staying : kept;
+            return good;
         }
 
         private boolean hasSameViews() {

@@ -173,6 +173,7 @@ public final class LimitsTest {
         Calls.due("62 symbols in the midst", x.open(7, 0), PutBack.NONE);
         towersOfNumbers();
         towerOfMoves(4567);
+        towerOfDeepNumbers();
         towersOfKeys();
         towerOfNothing();
         towerInRow();
@@ -231,6 +232,26 @@ public final class LimitsTest {
             roundTrip(x, 7, bits(n, 60), bits(n + added, 60), bits(n, 60));
         }
         lawful(x, 7);
+    }
+
+    /** A lens that is also a part of others, up to some 24 deep. */
+    private static void towerOfDeepNumbers() {
+        String number = NUMBERS.substring(2);
+        for (int deep = 1; deep <= 11; deep++) {
+            PutBack x = tower(2, "a=del\"x\"\"x\".ins\"y\"." + number + "|del\"y\"\"y\".ins\"x\".copy[0-1]*");
+            String begin = repeated("copy\"a\".(", deep);
+            String end = repeated(")*.copy\"c\"", deep);
+            Calls.due("define", Calls.define(x, "c=" + begin + "(a)*.copy\"b\"" + end), 2);
+            Calls.due("define", Calls.define(x, "d=" + begin + "(b)*.copy\"b\"" + end), 3);
+            Calls.due("define", Calls.define(x, "e=c then c" + repeated(" then c", 84)), 4);
+            // One of two links adds one: 43 in all.
+            roundTrip(x, 1, "x00000001", "x11010101", "x00000001");
+            String ahead = repeated("a", deep);
+            String behind = repeated("c", deep);
+            for (int i = 3; i < 5; i++) {
+                roundTrip(x, i, ahead + "x00000001b" + behind, ahead + "x11010101b" + behind, ahead + "x00000001b" + behind);
+            }
+        }
     }
 
     /** As the number moves to and fro, it can't be gone through symbol by symbol: more texts than can be recalled. */
