@@ -193,13 +193,13 @@ public final class LimitsTest {
 
     /** What is shown of the empty text, made anew from it and put back into it is not the same. */
     private static void towerOfNothing() {
-        PutBack x = tower(2, "a=ins\"x\"|del\"x\"\"x\"");
-        Calls.due("define", Calls.define(x, "c=del[0-9]?\"5\".copy\"x\"?then b"), 2);
+        PutBack x = tower(3, "a=ins\"x\"|del\"x\"\"x\"");
+        Calls.due("define", Calls.define(x, "d=del[0-9]?\"5\".copy\"x\"?then c"), 3);
         Calls.say(x, 0, "");
         for (int i = 0; i < 2; i++) {
-            Calls.due("get", x.get(2, 0, 1), 0);
-            Calls.due("create", x.create(2, 0, 1), 1);
-            Calls.due("put", x.put(2, 0, 0, 1), 0);
+            Calls.due("get", x.get(3, 0, 1), 0);
+            Calls.due("create", x.create(3, 0, 1), 1);
+            Calls.due("put", x.put(3, 0, 0, 1), 0);
         }
     }
 
@@ -219,8 +219,28 @@ public final class LimitsTest {
         adds(tower(8, NUMBERS, "b=copy[0-1].a|copy\"\"", "c=a then b then a then b then b"), 5, 8);
         adds(tower(8, NUMBERS, OTHERS, LESS.replace("b=", "c="), "d=a then b then c then b then a"), 4, 3);
         PutBack x = tower(8, NUMBERS, "b=dict(a.key\";\")", "c=b");
+        ordered();
         // 86 to the 5 is 0 modulo 16, 32 modulo 64.
         roundTrip(x, 7, "0101;110010;11;000000;", "0101;110011;11;000001;", "0101;110010;11;000000;");
+    }
+
+    /** Lenses whose order matters: one more and then all bits turned, an odd number of times; and a first one that deletes. */
+    private static void ordered() {
+        PutBack x = tower(3, NUMBERS, OTHERS, "c=a then b" + repeated(" then a then b", 40));
+        Calls.due("define", Calls.define(x, "d=c then c then c"), 3);
+        Calls.due("define", Calls.define(x, "e=d then d then d then d then d"), 4);
+        for (long n = 1; n > 0; n *= 37) {
+            roundTrip(x, 2, bits(n, 60), bits(-n - 2, 60), bits(n, 60));
+            roundTrip(x, 4, bits(n, 60), bits(-n - 2, 60), bits(n, 60));
+        }
+        Calls.due("define", Calls.define(x, "f=(copy\"0\"|del[1-2]\"2\".ins\"1\")*then d"), 5);
+        // 111 is -1 by three bits, so that -1 is shown, as is 121; what is made anew has the other symbol.
+        roundTrip(x, 5, "121", "111", "222");
+        // 101 is 5, which is shown of 1.
+        Calls.say(x, 0, "221");
+        Calls.say(x, 1, "101");
+        Calls.due("put", x.put(5, 1, 0, 2), 3);
+        Calls.due("put", Calls.read(x, 2), "200");
     }
 
     private static void adds(PutBack x, int levels, int each) {

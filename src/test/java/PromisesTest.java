@@ -509,6 +509,20 @@ public final class PromisesTest {
         Calls.say(x, 0, twelve + twelve + "aaaaaaa");
         Calls.due("9 too long in the midst", x.get(1, 0, 1), NONE);
         Calls.due("11 too long in the midst", x.create(1, 0, 1), NONE);
+        x = with("a = (copy [c] | del [a] \"a\" . ins \"bb\" | del \"bb\" \"bb\" . ins \"a\")*", "b = a then a",
+            "c = copy [a]* . ins \"bbbb\" . ins \"bbbb\"", "d = c then copy ([a]*\"bbbbbbbb\")");
+        Calls.say(x, 0, twelve + twelve + "aaaaaac");
+        Calls.due("9 too long in the midst", x.get(1, 0, 1), NONE);
+        Calls.due("11 too long in the midst", x.create(1, 0, 1), NONE);
+        Calls.say(x, 0, twelve + twelve + twelve + twelve + "aaaaa");
+        Calls.say(x, 1, "abbbbbbbb");
+        Calls.due("10 not in the midst", x.put(2, 1, 0, 2), 1);
+        Calls.due("10 too long in the midst", x.put(3, 1, 0, 2), NONE);
+        x = with("a = (copy [a] . ins \"b\")* . del \"x\" \"x\"", "b = a then copy \"ab\"*");
+        Calls.say(x, 0, twelve + twelve + twelve + "x");
+        Calls.say(x, 1, "ab");
+        Calls.due("10 not in the midst", x.put(0, 1, 0, 2), 2);
+        Calls.due("10 too long in the midst", x.put(1, 1, 0, 2), NONE);
     }
 
     private static void manyTexts() {
@@ -625,6 +639,18 @@ public final class PromisesTest {
         shows(x, 3, "a12", "16a");
         puts(x, 3, "76b", "a12", "b72");
         made(x, 3, "76b", "b75");
+        x = with("a = del [0-9] \"5\" then ins \"x\"", "b = ins \"x\" then del \"x\" \"x\"", "c = del [0-9] \"5\" then del \"\" \"\"",
+            "d = (copy [a] . a)* then (copy [a] . copy \"x\")*");
+        shows(x, 0, "7", "x");
+        puts(x, 0, "x", "7", "7");
+        made(x, 0, "x", "5");
+        shows(x, 1, "", "");
+        made(x, 1, "", "");
+        shows(x, 2, "7", "");
+        puts(x, 2, "", "7", "7");
+        made(x, 2, "", "5");
+        shows(x, 3, "a7a8", "axax");
+        puts(x, 3, "axaxax", "a7a8", "a7a8a5");
         // By which branch a view goes back, and whether into the source.
         x = with("a = copy \"a\" . del [0-9] \"1\" . ins \"x\" | copy \"b\" . del [0-9] \"2\" . ins \"x\"",
             "b = del \"b\" \"b\" . ins \"a\" . copy \"x\" | del \"a\" \"a\" . ins \"b\" . copy \"x\"", "c = a then b then b then b");
