@@ -843,6 +843,8 @@ public final class PutBack {
         final boolean hasKey;
         /** Of a row: which kid stands where in the view. */
         int[] order = new int[0];
+        /** Of a row: the two of which it was made. */
+        Lens[] halves = new Lens[0];
         /** Of branches: whether a kid's views are those of all kids ahead of it. */
         boolean[] same = new boolean[0];
         /** The quoted text of a del or an ins. */
@@ -889,6 +891,7 @@ public final class PutBack {
             made.placeInRow(left, 0, swapped ? b : 0);
             made.placeInRow(right, a, swapped ? 0 : a);
             made.weight = weightOf(left, right);
+            made.halves = new Lens[] {left, right};
             return made;
         }
 
@@ -1133,7 +1136,34 @@ public final class PutBack {
                 return oneForOne(some[0].source, some[count - 1].view);
             }
             Lens found = depth < MOST_LOOKED ? joinedParts(some, count, walker, depth) : null;
+            if (found == null && depth < MOST_LOOKED && some[0].kind == ROW) {
+                found = joinedHalves(some, count, walker, depth);
+            }
             return found != null ? found : then(some, count);
+        }
+
+        /** Rows that aren't split alike may be so if the parts of each half are taken together. */
+        private static Lens joinedHalves(Lens[] some, int count, Walker walker, int depth) {
+            Lens[] pairs = new Lens[count];
+            for (int i = 0; i < count; i++) {
+                boolean again = i > 0 && some[i] == some[i - 1];
+                pairs[i] = again ? pairs[i - 1] : some[i].asPair();
+                if (pairs[i].kids.length != 2) {
+                    return null;
+                }
+            }
+            return joinedParts(pairs, count, walker, depth);
+        }
+
+        private Lens asPair() {
+            if (halves.length != 2) {
+                return this;
+            }
+            Lens made = new Lens(kind, source, view, halves, hasKey);
+            boolean swapped = order.length > 0 && order[0] >= halves[0].kidsInRow();
+            made.order = new int[] {swapped ? 1 : 0, swapped ? 0 : 1};
+            made.weight = weight;
+            return made;
         }
 
         /** One text for another one. */

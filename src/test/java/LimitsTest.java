@@ -172,7 +172,8 @@ public final class LimitsTest {
         Calls.due("62 symbols in the midst", x.put(7, 1, 0, 1), PutBack.NONE);
         Calls.due("62 symbols in the midst", x.open(7, 0), PutBack.NONE);
         towersOfNumbers();
-        towerOfMoves(4567);
+        towerOfMoves();
+        towerOfLengths(1500);
         towerOfDeepNumbers();
         towersOfKeys();
         towerOfNothing();
@@ -274,14 +275,31 @@ public final class LimitsTest {
         }
     }
 
-    /** As the number moves to and fro, it can't be gone through symbol by symbol: more texts than can be recalled. */
-    private static void towerOfMoves(long step) {
+    /** The number has another one ahead of it and behind it in turn. */
+    private static void towerOfMoves() {
         PutBack x = tower(8, NUMBERS, "b=swap(copy[x],a.copy\";\")", "c=swap(a.copy\";\",copy[x])", "d=b then c");
-        for (long n = 1; n < 8192; n += step) {
-            String source = "x" + bits(n, 13) + ";";
-            roundTrip(x, 7, source, "x" + bits(n + 2L * 86 * 86 * 86 * 86, 13) + ";", source);
+        for (long n = 1; n > 0; n *= 37) {
+            String source = "x" + bits(n, 50) + ";";
+            roundTrip(x, 7, source, "x" + bits(n + 2L * 86 * 86 * 86 * 86, 50) + ";", source);
         }
         lawful(x, 7);
+    }
+
+    /** Numbers of bits that aren't of one length: they go through more texts than can be recalled. */
+    private static void towerOfLengths(long step) {
+        PutBack x = tower(8, "a=(del\"bb\"\"bb\".ins\"a\")*.(del\"a\"\"a\".ins\"bb\".copy(\"a\"|\"bb\")*|copy\"\")");
+        long added = 1;
+        for (int i = 0; i < 7; i++) {
+            added *= 86;
+        }
+        for (long n = 1; n < 4096; n += step) {
+            roundTrip(x, 7, lettered(n), lettered(n + added), lettered(n));
+        }
+        lawful(x, 7);
+    }
+
+    private static String lettered(long n) {
+        return bits(n, 12).replace("0", "a").replace("1", "bb");
     }
 
     private static String bits(long n, int many) {
@@ -476,10 +494,10 @@ public final class LimitsTest {
         adds(tower(8, NUMBERS), 7, 1);
         room("tower of numbers", before);
         before = allocated();
-        towerOfMoves(9999);
+        towerOfLengths(4096);
         // What is recalled are numbers of eight bytes.
-        System.out.println("room of a tower of moves: " + (allocated() - before) + " bytes");
-        Calls.due("room of a tower of moves", allocated() - before < 24000000L, true);
+        System.out.println("room of a tower of lengths: " + (allocated() - before) + " bytes");
+        Calls.due("room of a tower of lengths", allocated() - before < 24000000L, true);
         Calls.due("lenses", x.look(0), 8);
     }
 }
