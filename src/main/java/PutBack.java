@@ -1293,11 +1293,13 @@ public final class PutBack {
      * and goes on as one.
      */
     private static final class Words {
-        private static final int MOST_NODES = 2048;
+        private static final int MOST_NODES = 8192;
         private static final int MOST_ATOMS = 512;
         private static final int MOST_STACKED = 8192;
         private static final int MOST_DEEP = 24;
         private static final int SYMBOLS = 42;
+        /** More than there are symbols. */
+        private static final int SIGNS = 64;
 
         final byte[] told = new byte[LONGEST];
         private Lens[] lenses = new Lens[0];
@@ -1309,8 +1311,10 @@ public final class PutBack {
         private int[] rest = new int[0];
         private int nodes;
         private int[] places = new int[0];
-        /** Of each element and symbol: what is to be done behind it (a word), and the symbol that comes out. */
+        /** Of an element and a symbol: what is to be done behind it (a word), and the symbol that comes out. */
+        private int[] asked = new int[0];
         private int[] answers = new int[0];
+        private int answered;
         private int[] stack = new int[0];
         private long[] stackTimes = new long[0];
         private int stacked;
@@ -1348,17 +1352,19 @@ public final class PutBack {
                 times = new long[MOST_NODES];
                 rest = new int[MOST_NODES];
                 places = new int[2 * MOST_NODES];
-                answers = new int[MOST_NODES * SYMBOLS];
+                asked = new int[2 * MOST_NODES];
+                answers = new int[2 * MOST_NODES];
                 stack = new int[MOST_STACKED];
                 stackTimes = new long[MOST_STACKED];
-            } else if (nodes > MOST_NODES / 2 || atoms > MOST_ATOMS / 2) {
+            } else if (nodes > MOST_NODES / 2 || atoms > MOST_ATOMS / 2 || answered > MOST_NODES / 2) {
                 Arrays.fill(places, 0);
-                Arrays.fill(answers, 0);
+                Arrays.fill(asked, 0);
             } else {
                 return;
             }
             // Node 0 is the empty word.
             nodes = 1;
+            answered = 0;
             atoms = 0;
             time++;
         }
@@ -1497,10 +1503,10 @@ public final class PutBack {
             if (failed) {
                 return 0;
             }
-            int at = element * SYMBOLS + x;
-            if (answers[at] != 0) {
-                symbol = (answers[at] - 1) % 64;
-                return (answers[at] - 1) / 64;
+            int known = answerPlace(SIGNS * element + x);
+            if (asked[known] != 0) {
+                symbol = answers[known] % SIGNS;
+                return answers[known] / SIGNS;
             }
             int base = stacked;
             if (first[element] < 0 && times[element] == 1) {
@@ -1510,8 +1516,23 @@ public final class PutBack {
                 power(first[element], times[element], x, depth);
             }
             int word = gather(base);
-            answers[at] = failed ? 0 : 64 * word + symbol + 1;
+            int place = answerPlace(SIGNS * element + x);
+            failed |= answered >= MOST_NODES;
+            if (!failed && asked[place] == 0) {
+                asked[place] = SIGNS * element + x;
+                answers[place] = SIGNS * word + symbol;
+                answered++;
+            }
             return word;
+        }
+
+        /** Where the answer to a question stands, or could stand; no question is 0, as no element is. */
+        private int answerPlace(int question) {
+            int at = (int) (question * 0x9E3779B97F4A7C15L >>> 40) & (asked.length - 1);
+            for (int i = 0; i < asked.length && asked[at] != 0 && asked[at] != question; i++) {
+                at = (at + 1) & (asked.length - 1);
+            }
+            return at;
         }
 
         /** The position to which an atom comes by a symbol; 'symbol' is what comes out. */

@@ -221,6 +221,7 @@ public final class LimitsTest {
         adds(tower(8, NUMBERS, OTHERS, LESS.replace("b=", "c="), "d=a then b then c then b then a"), 4, 3);
         PutBack x = tower(8, NUMBERS, "b=dict(a.key\";\")", "c=b");
         ordered();
+        turned();
         // 86 to the 5 is 0 modulo 16, 32 modulo 64.
         roundTrip(x, 7, "0101;110010;11;000000;", "0101;110011;11;000001;", "0101;110010;11;000000;");
     }
@@ -242,6 +243,30 @@ public final class LimitsTest {
         Calls.say(x, 1, "101");
         Calls.due("put", x.put(5, 1, 0, 2), 3);
         Calls.due("put", Calls.read(x, 2), "200");
+    }
+
+    /** Each lens names the one ahead of it and the one that turns all bits, in turn, 42 times. */
+    private static void turned() {
+        PutBack x = tower(2, NUMBERS, OTHERS);
+        // What a lens shows of n is factor times n, and so much more.
+        long factor = 1;
+        long more = 1;
+        for (int i = 2; i < 8; i++) {
+            String before = i == 2 ? "a" : String.valueOf((char) ('a' + i - 1));
+            String told = (char) ('a' + i) + "=" + before + " then b" + repeated(" then " + before + " then b", 41);
+            Calls.due("define", Calls.define(x, told), i);
+            long allFactor = 1;
+            long allMore = 0;
+            for (int k = 0; k < 42; k++) {
+                allFactor *= -factor;
+                allMore = -factor * allMore - more - 1;
+            }
+            factor = allFactor;
+            more = allMore;
+            for (long n = 1; n > 0; n *= 1234567) {
+                roundTrip(x, i, bits(n, 60), bits(factor * n + more, 60), bits(n, 60));
+            }
+        }
     }
 
     private static void adds(PutBack x, int levels, int each) {
