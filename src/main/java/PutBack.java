@@ -658,6 +658,15 @@ public final class PutBack {
             return runEnd(asked.ranks, 0, asked.length) == asked.length;
         }
 
+        private long allBehind(long positions) {
+            long further = 0;
+            for (long some = positions; some != 0; some &= some - 1) {
+                int p = Long.bitCount((some & -some) - 1);
+                further |= p < count ? behind[p] : 0L;
+            }
+            return further;
+        }
+
         /** The length that all texts of the set have, NONE if they have several. */
         int onlyLength() {
             long open = first;
@@ -665,17 +674,22 @@ public final class PutBack {
                 return count == 0 ? 0 : NONE;
             }
             for (int n = 1; n <= count; n++) {
-                long further = 0;
-                for (long some = open; some != 0; some &= some - 1) {
-                    int p = Long.bitCount((some & -some) - 1);
-                    further |= p < count ? behind[p] : 0L;
-                }
+                long further = allBehind(open);
                 if ((open & last) != 0) {
                     return (open & ~last) == 0 && further == 0 ? n : NONE;
                 }
                 open = further;
             }
             return NONE;
+        }
+
+        /** Whether there is a longest text: it has no position twice, so that it is a text of 60 symbols at most. */
+        boolean isFinite() {
+            long open = first;
+            for (int n = 0; n < count && open != 0; n++) {
+                open = allBehind(open);
+            }
+            return open == 0;
         }
 
         /** Whether there is one text alone. */
@@ -944,7 +958,7 @@ public final class PutBack {
             System.arraycopy(links, 0, made.kids, 0, many);
             made.lastLink = last;
             made.weight = weightOfAll(made.kids);
-            made.growth = made.growthInRow(0);
+            made.growth = made.growthOfLinks();
             made.oneToOne = made.hasKidsOneToOne(0, true);
             made.stepwise = made.hasKidsStepwise();
             return made;
@@ -989,7 +1003,7 @@ public final class PutBack {
             return plain;
         }
 
-        /** By how much a view is always longer than its source, UNKNOWN if it isn't always as much. */
+        /** By how much a view is always longer than its source, UNKNOWN if it isn't always as much or can't be told. */
         int grows(int depth) {
             int ofSource = source.onlyLength();
             int ofView = view.onlyLength();
@@ -1025,7 +1039,23 @@ public final class PutBack {
             return sum;
         }
 
-        /** Whether a view is always as long as its source: then no text in the midst is longer than the outcome. */
+        /** As grows() tells; UNKNOWN also if a text in the midst may be too long though source and view are not. */
+        private int growthOfLinks() {
+            boolean finite = source.isFinite();
+            int sum = 0;
+            int latest = 0;
+            for (int i = 0; i < kids.length && sum != UNKNOWN; i++) {
+                latest = i > 0 && kids[i] == kids[i - 1] ? latest : kids[i].grows(1);
+                boolean tooLong = sum > 0 && !finite;
+                sum = latest == UNKNOWN || tooLong ? UNKNOWN : sum + latest;
+            }
+            return sum;
+        }
+
+        /**
+         * Whether a view is always as long as its source, and no text in the midst is longer: then no source of 60
+         * symbols at most is without a view.
+         */
         boolean isEven() {
             return grows(0) == 0;
         }

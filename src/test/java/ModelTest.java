@@ -15,7 +15,7 @@ public final class ModelTest {
     private static PutBackModel y;
     private static final List<String> names = new ArrayList<>();
     /** In some runs all definitions are of lenses that name one another by "then". */
-    private static Towers towers;
+    private static Definitions towers;
     private static final Map<String, Integer> answered = new TreeMap<>();
     private static int told;
     private static int good;
@@ -49,7 +49,7 @@ public final class ModelTest {
         x = new PutBack();
         y = new PutBackModel();
         names.clear();
-        towers = run % 4 == 3 ? new Towers(ModelTest::pick) : null;
+        towers = run % 4 == 3 ? new Towers(ModelTest::pick) : run % 8 == 5 ? new Swells(ModelTest::pick) : null;
         try {
             for (int i = 0; i < 3; i++) {
                 tellLens(run);
@@ -273,7 +273,7 @@ public final class ModelTest {
     private static String walked(int lens, int side) {
         StringBuilder made = new StringBuilder();
         int most = 1 + pick(towers != null ? 60 : 30);
-        boolean least = pick(4) == 0;
+        int liked = pick(4);
         for (int i = 0; i < 59; i++) {
             tape(made.toString());
             x.text(7);
@@ -285,7 +285,9 @@ public final class ModelTest {
             if (many <= 0) {
                 break;
             }
-            made.append((char) x.goesOn(lens, side, 7, least && pick(9) > 0 ? 0 : pick(many)));
+            // The least symbols often end a part, the last ones make it longer.
+            int at = liked > 1 || pick(12) == 0 ? pick(many) : liked == 0 ? 0 : many - 1;
+            made.append((char) x.goesOn(lens, side, 7, at));
         }
         return made.toString();
     }

@@ -533,11 +533,14 @@ public final class PromisesTest {
         shows(x, 4, twelve + ";" + twelve + ";", twelve + ";" + twelve + ";");
     }
 
+    /** An outcome of null: there is none, and the slot stays. */
     private static void puts(PutBack x, int lens, String view, String source, String outcome) {
+        String call = "10 put '" + view + "' into '" + source + "'";
         Calls.say(x, 0, view);
         Calls.say(x, 1, source);
-        Calls.due("10 put '" + view + "' into '" + source + "'", x.put(lens, 0, 1, 2), outcome.length());
-        Calls.due("10 put '" + view + "' into '" + source + "'", Calls.read(x, 2), outcome);
+        Calls.say(x, 2, "stays");
+        Calls.due(call, x.put(lens, 0, 1, 2), outcome == null ? NONE : outcome.length());
+        Calls.due(call, Calls.read(x, 2), outcome == null ? "stays" : outcome);
     }
 
     private static void put() {
@@ -615,6 +618,73 @@ public final class PromisesTest {
         x = with("a = dict (key [a-c] . del [0-9] \"1\" . copy \";\")", "b = (swap(copy [a-c], copy \";\"))*", "c = a then b");
         puts(x, 2, ";b;a", "a5;b6;", "b6;a5;");
         thensOfAlike();
+        longInTheMidst();
+        longInTheMidstOfParts();
+    }
+
+    /** Letters, a comma, and 40 symbols more; and the lens that takes these away again. */
+    private static PutBack swelling(String... more) {
+        String[] definitions = new String[more.length + 3];
+        String twenty = "\"bbbbbbbbbbbbbbbbbbbb\"";
+        definitions[0] = "x = copy [a]+ . copy \",\" . ins " + twenty + " . ins " + twenty;
+        definitions[1] = "y = copy [a]+ . copy \",\" . del " + twenty + twenty + " . del " + twenty + twenty;
+        definitions[2] = "t = x then y";
+        System.arraycopy(more, 0, definitions, 3, more.length);
+        return with(definitions);
+    }
+
+    /** What the lens ahead shows of the source is asked, though it goes nowhere or changes nothing. */
+    private static void longInTheMidst() {
+        PutBack x = swelling("u = t* then t*", "v = t* then copy ([a]+ \",\")*", "b = t | copy [0-1]+", "w = b then b",
+            "z = copy ([a]+ \",\")* then t*");
+        String most = SIXTY.substring(0, 19).replaceAll(".", "a") + ",";
+        String more = "a" + most;
+        for (int lens : new int[] {3, 4}) {
+            puts(x, lens, "", most, "");
+            puts(x, lens, "", more, null);
+            puts(x, lens, "a,", more, null);
+            puts(x, lens, "a,", "aa," + more, null);
+            puts(x, lens, "a,", "aa," + most, "a,");
+            puts(x, lens, more, "a,", null);
+            puts(x, lens, most, "a,", most);
+            made(x, lens, most, most);
+            made(x, lens, more, null);
+            Calls.say(x, 0, more);
+            Calls.due("9 in the midst", x.get(lens, 0, 1), NONE);
+            Calls.due("21 in the midst", x.open(lens, 0), NONE);
+        }
+        puts(x, 6, "01", most, "01");
+        puts(x, 6, "01", more, null);
+        puts(x, 6, "a,", "01", "a,");
+        // Alone, or behind all others, nothing is shown of the part that is dropped.
+        puts(x, 5, "01", more, "01");
+        puts(x, 7, "", more, "");
+        puts(x, 7, "a,", more, null);
+    }
+
+    private static void longInTheMidstOfParts() {
+        String more = SIXTY.substring(0, 20).replaceAll(".", "a") + ",";
+        PutBack x = swelling("d = dict (key [8-9] . t)", "e = d then d");
+        puts(x, 3, "", "8" + more, null);
+        puts(x, 4, "", "8" + more, null);
+        puts(x, 4, "9a,", "8a," + "9aa,", "9a,");
+        x = swelling("f = t . copy [0-1]*", "g = f then f", "h = f then copy ([a]+ \",\" [0-1]*)");
+        for (int lens : new int[] {4, 5}) {
+            puts(x, lens, "a,01", more.substring(1) + "0110", "a,01");
+            puts(x, lens, "a,01", more + "0110", null);
+        }
+        x = swelling("f = t then t", "g = f | copy [0-1]", "h = g then g");
+        puts(x, 5, "1", more.substring(1), "1");
+        puts(x, 5, "1", more, null);
+        // A text that becomes shorter at first, and one that can't be long at all.
+        x = swelling("s = copy [a]+ . del \",\" \",\"", "r = copy [a]+ . ins \",\"", "q = s then r",
+            "p = (copy [0-9] . q)* then (copy [0-9] . q)*");
+        puts(x, 6, "", "1" + SIXTY.substring(0, 57).replaceAll(".", "a") + ",", "");
+        x = with("a = copy [a] . ins \"bbbbbbbbbbbbbbbbbbbb\"", "b = copy [a] . del \"bbbbbbbbbbbbbbbbbbbb\" \"bbbbbbbbbbbbbbbbbbbb\"",
+            "c = a then b", "d = c* then c*", "e = a* then b*");
+        puts(x, 3, "a", SIXTY.replaceAll(".", "a"), "a");
+        puts(x, 4, "a", "aa", "a");
+        puts(x, 4, "a", "aaa", null);
     }
 
     /** Rows, branches and repetitions behind others of their kind. */
@@ -663,8 +733,9 @@ public final class PromisesTest {
 
     private static void made(PutBack x, int lens, String view, String outcome) {
         Calls.say(x, 0, view);
-        Calls.due("11 create '" + view + "'", x.create(lens, 0, 1), outcome.length());
-        Calls.due("11 create '" + view + "'", Calls.read(x, 1), outcome);
+        Calls.say(x, 1, "stays");
+        Calls.due("11 create '" + view + "'", x.create(lens, 0, 1), outcome == null ? NONE : outcome.length());
+        Calls.due("11 create '" + view + "'", Calls.read(x, 1), outcome == null ? "stays" : outcome);
     }
 
     private static void create() {
@@ -953,6 +1024,15 @@ public final class PromisesTest {
         Calls.due("20 twice", x.laws(1, 2, 5), 98);
         Calls.due("20 anew", x.laws(1, 3, 5), 2);
         Calls.due("20 anew", x.laws(2, 3, 5), 2);
+        // The fourth part goes through 61 symbols: as a source it has no view, as a view no source.
+        String many = " . ins " + twenty + " . ins " + twenty + " . ins \"123456\"";
+        String head = "copy \"0123456789\" . copy [a]+ . copy \",\"";
+        x = with("a = " + head + many, "b = " + head + many.replaceAll("ins (\"\\w+\")", "del $1 $1"), "c = a then b",
+            "d = c* then c*");
+        Calls.due("20 shown in the midst", x.laws(3, 0, 5), 1);
+        Calls.due("20 put in the midst", x.laws(3, 1, 5), 9);
+        Calls.due("20 twice in the midst", x.laws(3, 2, 5), 125 - 64);
+        Calls.due("20 anew in the midst", x.laws(3, 3, 5), 1);
     }
 
     private static void open() {

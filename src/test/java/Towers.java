@@ -5,7 +5,7 @@ import java.util.Map;
 import java.util.function.IntUnaryOperator;
 
 /** Definitions whose sources and views are the same set, so that "then" can stand between any two of them. */
-final class Towers {
+final class Towers implements Definitions {
     private static final int FAMILIES = 8;
     private static final int MOST_LINKS = 150;
     private static final String FLIP = "(del \"a\" \"a\" . ins \"b\" | del \"b\" \"b\" . ins \"a\")";
@@ -35,8 +35,8 @@ final class Towers {
         return of[pick.applyAsInt(of.length)];
     }
 
-    /** A definition behind "=". */
-    String definition() {
+    @Override
+    public String definition() {
         isSmall = family == 0 || (family == 7 && pick.applyAsInt(3) == 0);
         opens = family != 7 && pick.applyAsInt(6) == 0;
         closes = family != 7 && pick.applyAsInt(6) == 0;
@@ -66,8 +66,8 @@ final class Towers {
         made.append(made.length() == 0 ? "" : " then ").append(next != null ? next : other);
     }
 
-    /** The latest definition was read. */
-    void told(String name) {
+    @Override
+    public void told(String name) {
         links.put(name, many);
         if (opens && closes) {
             return;
