@@ -500,6 +500,8 @@ public final class PutBack {
         long first;
         long last;
         boolean hasEmpty;
+        /** Whether a position may come again; else no text is longer than there are positions. */
+        boolean isEndless;
 
         TextSet(int positions) {
             count = Math.max(0, Math.min(positions, MOST_POSITIONS));
@@ -565,10 +567,12 @@ public final class PutBack {
             made.first = first;
             made.last = last;
             made.hasEmpty = hasEmpty || orEmpty;
+            made.isEndless = count > 0;
             return made;
         }
 
         private void place(TextSet other, int offset) {
+            isEndless |= other.isEndless;
             for (int p = 0; p < other.count && p + offset < count; p++) {
                 allowed[p + offset] = other.allowed[p];
                 behind[p + offset] = other.behind[p] << offset;
@@ -658,15 +662,6 @@ public final class PutBack {
             return runEnd(asked.ranks, 0, asked.length) == asked.length;
         }
 
-        private long allBehind(long positions) {
-            long further = 0;
-            for (long some = positions; some != 0; some &= some - 1) {
-                int p = Long.bitCount((some & -some) - 1);
-                further |= p < count ? behind[p] : 0L;
-            }
-            return further;
-        }
-
         /** The length that all texts of the set have, NONE if they have several. */
         int onlyLength() {
             long open = first;
@@ -674,22 +669,17 @@ public final class PutBack {
                 return count == 0 ? 0 : NONE;
             }
             for (int n = 1; n <= count; n++) {
-                long further = allBehind(open);
+                long further = 0;
+                for (long some = open; some != 0; some &= some - 1) {
+                    int p = Long.bitCount((some & -some) - 1);
+                    further |= p < count ? behind[p] : 0L;
+                }
                 if ((open & last) != 0) {
                     return (open & ~last) == 0 && further == 0 ? n : NONE;
                 }
                 open = further;
             }
             return NONE;
-        }
-
-        /** Whether there is a longest text: it has no position twice, so that it is a text of 60 symbols at most. */
-        boolean isFinite() {
-            long open = first;
-            for (int n = 0; n < count && open != 0; n++) {
-                open = allBehind(open);
-            }
-            return open == 0;
         }
 
         /** Whether there is one text alone. */
@@ -1039,23 +1029,19 @@ public final class PutBack {
             return sum;
         }
 
-        /** As grows() tells; UNKNOWN also if a text in the midst may be too long though source and view are not. */
+        /** As grows() tells; UNKNOWN also if a text in the midst may be too long, though neither source nor view is. */
         private int growthOfLinks() {
-            boolean finite = source.isFinite();
             int sum = 0;
             int latest = 0;
             for (int i = 0; i < kids.length && sum != UNKNOWN; i++) {
                 latest = i > 0 && kids[i] == kids[i - 1] ? latest : kids[i].grows(1);
-                boolean tooLong = sum > 0 && !finite;
+                boolean tooLong = sum > 0 && source.isEndless;
                 sum = latest == UNKNOWN || tooLong ? UNKNOWN : sum + latest;
             }
             return sum;
         }
 
-        /**
-         * Whether a view is always as long as its source, and no text in the midst is longer: then no source of 60
-         * symbols at most is without a view.
-         */
+        /** Whether a view is always as long as its source, and no text in the midst too long: no source is without one. */
         boolean isEven() {
             return grows(0) == 0;
         }

@@ -38,8 +38,8 @@ final class Swells implements Definitions {
     private final List<Link> told = new ArrayList<>();
     private final String[] around;
     private final String more;
-    /** The letters of a part: many, or one of them. */
-    private final boolean few;
+    /** The letters of a part: many, one of two, or one alone. */
+    private final int letters;
     private Link latest;
     private int links;
 
@@ -47,7 +47,7 @@ final class Swells implements Definitions {
         this.pick = pick;
         around = new String[][] {REPEATED, REPEATED, BRANCHED, ROWED, TWICE}[pick.applyAsInt(5)];
         more = one("ccccc", "cccccccccccccccccccc", "cccccccccccccccccccc", "ccccccccccccc");
-        few = pick.applyAsInt(4) == 0;
+        letters = Math.max(0, pick.applyAsInt(8) - 5);
     }
 
     private String one(String... of) {
@@ -96,13 +96,14 @@ final class Swells implements Definitions {
     }
 
     private String step(int from, int to) {
-        String letters = few ? one("copy [a-b]", "key [a-b]", FLIP)
+        String head = letters == 2 ? one("copy \"a\"", "del \"a\" \"a\" . ins \"a\"", "key \"a\"")
+            : letters == 1 ? one("copy [a-b]", "key [a-b]", FLIP)
             : one("copy [a-b]+", "key [a-b]+", FLIP + " . " + FLIP + "*", "copy [a-b] . copy [a-b]*");
         String sign = from == SHORT ? to == SHORT ? "" : " . ins \",\""
             : to == SHORT ? " . del \",\" \",\"" : one(" . copy \",\"", " . del \",\" \",\" . ins \",\"");
         String tail = from == LONG ? to == LONG ? " . copy \"T\"" : " . del \"T\" \"T\""
             : to == LONG ? " . ins \"T\" . ins \"T\"" : "";
         String twice = from == LONG ? tail + tail : tail;
-        return letters + sign + twice.replace("T", more);
+        return head + sign + twice.replace("T", more);
     }
 }
