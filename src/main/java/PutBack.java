@@ -406,7 +406,7 @@ public final class PutBack {
     private static Lens repeatedOf(Lens told) {
         Lens found = told;
         for (int i = 0; i <= MOST_LENSES && found != null && found.kind == THEN; i++) {
-            found = found.lastLink;
+            found = found.lastLink();
         }
         return found != null && (found.kind == STAR || found.kind == DICT) ? found : null;
     }
@@ -853,15 +853,15 @@ public final class PutBack {
         boolean[] same = new boolean[0];
         /** The quoted text of a del or an ins. */
         byte[] quoted = new byte[0];
-        /** Of "then": what stands behind all others, which has its keys and parts. */
-        Lens lastLink;
         /** Of "then" as it was told: another lens that does the same. */
         Lens simpler;
         /** Of "then": by which number its answers are recalled, 0 if none were yet. */
         int number;
-        /** Of "then": as grows() and isOneToOne() tell. */
+        /** Of "then": as grows() tells, and whether each link goes back to one source, whatever it is put into. */
         int growth;
-        boolean oneToOne;
+        boolean linksOneToOne;
+        /** How often the lens of which it is made stands behind itself. */
+        long power = 1;
         /** Of "then": whether all kids are stepwise; else of a lens that is so: which positions stay as they are. */
         boolean stepwise;
         long kept;
@@ -946,10 +946,10 @@ public final class PutBack {
             Lens last = links[many - 1];
             Lens made = new Lens(THEN, links[0].source, last.view, new Lens[many], last.hasKey);
             System.arraycopy(links, 0, made.kids, 0, many);
-            made.lastLink = last;
             made.weight = weightOfAll(made.kids);
             made.growth = made.growthOfLinks();
-            made.oneToOne = made.hasKidsOneToOne(0, true);
+            made.linksOneToOne = made.hasLinksOneToOne();
+            made.power = made.powerOfLinks();
             made.stepwise = made.hasKidsStepwise();
             return made;
         }
@@ -1059,7 +1059,7 @@ public final class PutBack {
                 case DICT:
                     return hasKidsOneToOne(depth, true);
                 case THEN:
-                    return oneToOne;
+                    return linksOneToOne && growth == 0;
                 default:
                     return true;
             }
@@ -1072,6 +1072,37 @@ public final class PutBack {
                 good = again || (kids[i].isOneToOne(depth + 1) && (!even || kids[i].grows(0) == 0));
             }
             return good;
+        }
+
+        private boolean hasLinksOneToOne() {
+            boolean good = true;
+            for (int i = 0; i < kids.length && good; i++) {
+                boolean again = i > 0 && kids[i] == kids[i - 1];
+                good = again || (kids[i].kind == THEN ? kids[i].linksOneToOne : kids[i].isOneToOne(1));
+            }
+            return good;
+        }
+
+        private long powerOfLinks() {
+            boolean alike = kids.length > 0;
+            for (int i = 1; i < kids.length && alike; i++) {
+                alike = kids[i] == kids[0];
+            }
+            return alike ? kids.length * kids[0].power : 1;
+        }
+
+        /** What stands there as often as 'power' tells. */
+        Lens base() {
+            Lens found = this;
+            for (int i = 0; i <= MOST_LENSES && found.power > 1 && found.kids.length > 0; i++) {
+                found = found.kids[0];
+            }
+            return found;
+        }
+
+        /** Of "then": what stands behind all others, which has its keys and parts. */
+        Lens lastLink() {
+            return kids.length > 0 ? kids[kids.length - 1] : null;
         }
 
         private boolean hasKidsStepwise() {
@@ -2392,11 +2423,15 @@ public final class PutBack {
             if (many <= 0 || at < 0 || to > from.length) {
                 return;
             }
+            makeRoom(many);
+            System.arraycopy(from, at, store, top, many);
+            top += many;
+        }
+
+        private void makeRoom(int many) {
             if (top + many > store.length) {
                 store = Arrays.copyOf(store, 2 * (top + many));
             }
-            System.arraycopy(from, at, store, top, many);
-            top += many;
         }
 
         /** What stands on top from a place on comes down to a lower place. */
@@ -2534,7 +2569,7 @@ public final class PutBack {
         /** Shows (without a view), makes anew (without a source) or puts back by lenses behind one another. */
         private boolean answerThen(Lens then, int fromView, int toView, int fromSource, int toSource, int depth) {
             boolean shows = fromView == NONE;
-            int from = !shows && then.oneToOne ? NONE : fromSource;
+            int from = !shows && then.isOneToOne(0) ? NONE : fromSource;
             if (then.simpler != null) {
                 await(then.simpler, fromView, toView, fromSource, toSource);
                 return true;
@@ -2554,12 +2589,93 @@ public final class PutBack {
                 append(recall.told, 0, recall.length);
                 return recall.length != NONE;
             }
-            boolean good = shows ? showLinks(then, from, toSource, depth)
-                : backLinks(then, fromView, toView, from, toSource, depth);
+            boolean good = answerLinks(then, fromView, toView, from, toSource, depth);
             recall.ask(then, store, fromView, toView, from, toSource);
             recall.makeRoom();
             recall.keep(store, begin, good ? top : NONE);
             return good;
+        }
+
+        private boolean answerLinks(Lens then, int fromView, int toView, int fromSource, int toSource, int depth) {
+            boolean shows = fromView == NONE;
+            boolean asks = !shows && fromSource != NONE && then.linksOneToOne;
+            if (asks && !showsAhead(then, fromSource, toSource, depth)) {
+                return false;
+            }
+            boolean anew = asks || fromSource == NONE;
+            if (then.power > 1 && (shows || anew)) {
+                return repeat(then.base(), then.power, shows, shows ? fromSource : fromView, shows ? toSource : toView,
+                    depth);
+            }
+            return shows ? showLinks(then, fromSource, toSource, depth)
+                : backLinks(then, fromView, toView, anew ? NONE : fromSource, toSource, depth);
+        }
+
+        /** Shows, or makes anew, by one lens over and over: when a text comes again, all goes on in rounds. */
+        private boolean repeat(Lens lens, long times, boolean shows, int from, int to, int depth) {
+            int begin = top;
+            int low = begin + LONGEST;
+            int old = to - from;
+            if (old < 0 || old > LONGEST) {
+                return false;
+            }
+            // The text that is waited for stands ahead of the latest one, in room for the longest.
+            makeRoom(2 * LONGEST);
+            append(store, from, to);
+            top = low;
+            append(store, from, to);
+            long since = 0;
+            long span = 1;
+            for (long left = times; left > 0; left--) {
+                int start = top;
+                if (!(shows ? show(lens, low, start, depth + 1) : back(lens, low, start, NONE, NONE, depth + 1))) {
+                    return false;
+                }
+                settle(low, start);
+                since++;
+                boolean again = isLike(begin, old, low, top - low);
+                left = again ? (left - 1) % since + 1 : left;
+                if (again || since == span) {
+                    System.arraycopy(store, low, store, begin, top - low);
+                    old = top - low;
+                    span *= 2;
+                    since = 0;
+                }
+            }
+            settle(begin, low);
+            return true;
+        }
+
+        private boolean isLike(int one, int many, int other, int others) {
+            boolean like = many == others;
+            for (int i = 0; i < many && like; i++) {
+                like = store[one + i] == store[other + i];
+            }
+            return like;
+        }
+
+        /** Whether all lenses but the last one show something of a source: a text in the midst may be too long. */
+        private boolean showsAhead(Lens then, int from, int to, int depth) {
+            int begin = top;
+            int a = from;
+            int b = to;
+            Lens rest = then;
+            for (int level = 0; level <= MOST_LENSES && rest.kind == THEN && rest.kids.length > 0; level++) {
+                Lens base = rest.base();
+                boolean powers = rest.power > 1;
+                for (int k = 0; k < (powers ? 1 : rest.kids.length - 1); k++) {
+                    int start = top;
+                    if (!(powers ? repeat(base, rest.power - 1, true, a, b, depth) : show(rest.kids[k], a, b, depth + 1))) {
+                        return false;
+                    }
+                    settle(begin, start);
+                    a = begin;
+                    b = top;
+                }
+                rest = powers ? base : rest.kids[rest.kids.length - 1];
+            }
+            top = begin;
+            return true;
         }
 
         private boolean showLinks(Lens then, int from, int to, int depth) {
@@ -2816,10 +2932,11 @@ public final class PutBack {
         }
 
         private boolean keyThen(Lens then, int from, int to) {
-            if (then.lastLink != null) {
-                await(then.lastLink, from, to, NONE, NONE);
+            Lens last = then.lastLink();
+            if (last != null) {
+                await(last, from, to, NONE, NONE);
             }
-            return then.lastLink != null;
+            return last != null;
         }
 
         private boolean keyBranch(Lens branches, int from, int to) {

@@ -175,6 +175,8 @@ public final class LimitsTest {
         towerOfMoves();
         towerOfLengths(1500);
         towerOfDeepNumbers();
+        towerInRounds();
+        towerOverSixty();
         towersOfKeys();
         towerOfNothing();
         towerInRow();
@@ -321,6 +323,33 @@ public final class LimitsTest {
             roundTrip(x, 7, lettered(n), lettered(n + added), lettered(n));
         }
         lawful(x, 7);
+    }
+
+    /** Numbers of 17 bits, the ones of which are longer: more texts than can be recalled, but they come again. */
+    private static void towerInRounds() {
+        PutBack x = tower(8, "a=(del\"22\"\"22\".ins\"0\")*.(del\"0\"\"0\".ins\"22\".copy(\"0\"|\"22\")*|copy\"\")");
+        long added = 86L * 86 * 86 * 86 * 86 * 86 * 86;
+        String source = bits(12345, 17).replace("1", "22");
+        roundTrip(x, 7, source, bits(12345 + added, 17).replace("1", "22"), source);
+    }
+
+    /** One symbol more with each lens: what all but the last one show of the source is asked, when it is put into. */
+    private static void towerOverSixty() {
+        PutBack x = tower(1, "a=ins\"a\".copy[a]*|del\"b\"\"b\".copy[b]*");
+        Calls.due("define", Calls.define(x, "b=a" + repeated(" then a", 79)), 1);
+        Calls.due("define", Calls.define(x, "c=b" + repeated(" then a", 39)), 2);
+        for (int lens : new int[] {1, 2}) {
+            int more = lens == 1 ? 80 : 119;
+            // 'more' lenses show as many symbols more, some of them b that go.
+            for (int went = more - 62; went <= 60; went++) {
+                boolean shown = more - went <= 60;
+                boolean put = more - 1 - went <= 60;
+                Calls.say(x, 0, repeated("b", went));
+                Calls.due("get " + went, x.get(lens, 0, 1), shown ? more - went : PutBack.NONE);
+                Calls.say(x, 1, repeated("a", 60));
+                Calls.due("put " + went, x.put(lens, 1, 0, 2), put ? more - 60 : PutBack.NONE);
+            }
+        }
     }
 
     private static String lettered(long n) {

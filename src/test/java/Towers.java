@@ -6,12 +6,16 @@ import java.util.function.IntUnaryOperator;
 
 /** Definitions whose sources and views are the same set, so that "then" can stand between any two of them. */
 final class Towers implements Definitions {
-    private static final int FAMILIES = 8;
+    private static final int FAMILIES = 9;
     private static final int MOST_LINKS = 150;
     private static final String FLIP = "(del \"a\" \"a\" . ins \"b\" | del \"b\" \"b\" . ins \"a\")";
     private static final String FLOP = "(del \"1\" \"1\" . ins \"0\" | del \"0\" \"0\" . ins \"1\")";
     private static final String MORE = "(del \"1\" \"1\" . ins \"0\")* . (del \"0\" \"0\" . ins \"1\" . copy [0-1]* | copy \"\")";
     private static final String LESS = "(del \"0\" \"0\" . ins \"1\")* . (copy \"\" | del \"1\" \"1\" . ins \"0\" . copy [0-1]*)";
+
+    /** As those of 0 and 1, but a text may become longer or shorter. */
+    private static final String LONGER = MORE.replace("copy [0-1]*", "copy (\"0\"|\"22\")*").replace("1", "22");
+    private static final String SHORTER = LESS.replace("copy [0-1]*", "copy (\"0\"|\"22\")*").replace("1", "22");
 
     private final IntUnaryOperator pick;
     private final int family;
@@ -91,6 +95,8 @@ final class Towers implements Definitions {
                 return first + " . " + number + "*";
             case 5:
                 return "(" + first + " . copy \"1\")*";
+            case 8:
+                return "(copy \"0\" | del [4-6] \"5\" . ins \"22\")*";
             default:
                 return "(" + first + " . " + letter() + " . " + letter() + ")*";
         }
@@ -117,6 +123,8 @@ final class Towers implements Definitions {
                     first + " . " + number + "*");
             case 5:
                 return "(" + first + " . copy \"1\")*";
+            case 8:
+                return one("(copy \"0\" | del \"22\" \"22\" . ins \"0\")*", "(copy \"0\" | key \"2\" . del \"2\" \"2\")*");
             default:
                 return "(" + first + " . " + letter() + " . " + letter() + ")*";
         }
@@ -171,6 +179,9 @@ final class Towers implements Definitions {
                 return one("(copy [a-b] . del \"1\" \"1\" . ins \"1\")*", "(" + FLIP + " . copy \"1\")*",
                     "(key [a-b] . copy \"1\")*", "dict (key [a-b] . copy \"1\")", "dict (" + FLIP + " . key \"1\")",
                     "dict (swap(ins \"\", key [a-b]) . del \"1\" \"1\" . ins \"1\")");
+            case 8:
+                return one(LONGER, LONGER, SHORTER, "copy (\"0\"|\"22\")*", FLOP.replace("1", "22") + "*",
+                    "dict (key \"\" . " + FLOP.replace("1", "22") + ")");
             case 6:
                 return one("(" + row() + ")*", "dict (key \"\" . " + row() + ")", "dict (" + row() + ". key \"\")");
             default:
