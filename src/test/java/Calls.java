@@ -1,5 +1,13 @@
+import java.util.function.IntSupplier;
+
 /** Calls that tests make over and over: texts instead of numbers, and a count of what was wrong. */
 final class Calls {
+    /** What of an object's state a call may change though it is refused. */
+    static final int NOTHING = 0;
+    static final int TAPE = 1;
+    static final int FAULT = 2;
+    static final int REFUSED = 4;
+
     private static int wrong;
     private static int asked;
     private static long latest;
@@ -63,6 +71,48 @@ final class Calls {
     static int define(PutBack x, String definition) {
         tape(x, definition);
         return x.lens();
+    }
+
+    /** A new object with some lenses, all of them good ones. */
+    static PutBack with(String... definitions) {
+        PutBack x = new PutBack();
+        for (int i = 0; i < definitions.length; i++) {
+            due("define " + definitions[i], define(x, definitions[i]), i);
+        }
+        return x;
+    }
+
+    /** All that can be seen of an object, but for slot 7, by which what is open is looked at. */
+    private static String state(PutBack x, int changes) {
+        StringBuilder made = new StringBuilder();
+        for (int what = 0; what < 5; what++) {
+            boolean counts = what == 1 && (changes & TAPE) != 0 || what == 4 && (changes & REFUSED) != 0;
+            made.append(counts ? "?" : String.valueOf(x.look(what))).append(' ');
+        }
+        for (int what = 0; what < 3; what++) {
+            made.append((changes & FAULT) != 0 ? "?" : String.valueOf(x.fault(what))).append(' ').append(x.moved(what)).append(' ');
+        }
+        for (int slot = 0; slot < 7; slot++) {
+            made.append('"').append(read(x, slot)).append('"');
+        }
+        for (int side = 0; side < 2; side++) {
+            made.append(x.copy(side, 7)).append(x.look(2) == PutBack.NONE ? "" : read(x, 7)).append(' ');
+        }
+        for (int lens = 0; lens < x.look(0); lens++) {
+            made.append(x.set(lens, 0, 0)).append('/').append(x.set(lens, 1, 0)).append(' ');
+        }
+        return made.toString();
+    }
+
+    /** A call is refused, and all stays but what it may change all the same. */
+    static void stays(PutBack x, String call, int changes, IntSupplier answer) {
+        String before = state(x, changes);
+        due(call, answer.getAsInt(), PutBack.NONE);
+        due(call + " all stays", state(x, changes), before);
+    }
+
+    static void stays(PutBack x, String call, IntSupplier answer) {
+        stays(x, call, NOTHING, answer);
     }
 
     static int say(PutBack x, int slot, String text) {

@@ -40,11 +40,7 @@ public final class PromisesTest {
     }
 
     private static PutBack with(String... definitions) {
-        PutBack x = new PutBack();
-        for (int i = 0; i < definitions.length; i++) {
-            Calls.due("define " + definitions[i], Calls.define(x, definitions[i]), i);
-        }
-        return x;
+        return Calls.with(definitions);
     }
 
     private static void newObject() {
