@@ -21,15 +21,19 @@ public final class LensEdgesTest {
         putByKey();
         keysOfSeveralUnits();
         notPut();
+        notOfKinds();
         madeOfSixty();
         madeByKinds();
         notMade();
         shownInTheMidst();
         putInTheMidst();
         madeInTheMidst();
+        lastIsNotShown();
         shownOfKeys();
+        eightDeep();
         parts();
         partsOfKinds();
+        partsOfEightThens();
         aligned();
         alignedOfKinds();
         key();
@@ -38,6 +42,7 @@ public final class LensEdgesTest {
         lawsOfFew();
         lawsBroken();
         lawsOfSixty();
+        lawsOfTheLeast();
         Calls.finish("LensEdgesTest");
     }
 
@@ -266,6 +271,26 @@ public final class LensEdgesTest {
         Calls.due("10 a VIEW into itself", x.put(1, 3, 3, 3), 1);
     }
 
+    /** Of each kind by itself: a TEXT that is none of its SOURCES, none of its VIEWS. */
+    private static void notOfKinds() {
+        String[] told = {"copy[a]", "key[a]*", "del[a]*\"\"", "ins\"a\"", "copy[a]|ins\"b\"", "(copy[a])*", "dict(key[a])", "copy[a]then copy[a]",
+            "swap(copy[a],copy\"\")", "copy[a].ins\"\""};
+        String[] source = {"a", "aa", "aa", "", "a", "aa", "aa", "a", "a", "a"};
+        String[] view = {"a", "aa", "", "a", "a", "aa", "aa", "a", "a", "a"};
+        for (int i = 0; i < told.length; i++) {
+            PutBack x = Calls.with("p=" + told[i]);
+            shows(x, 0, source[i], view[i]);
+            puts(x, 0, view[i], source[i], source[i]);
+            for (String no : new String[] {"c", "ac", "ca", "aac"}) {
+                shows(x, 0, no, null);
+                puts(x, 0, view[i], no, null);
+                puts(x, 0, no, source[i], null);
+                puts(x, 0, no, no, null);
+                makes(x, 0, no, null);
+            }
+        }
+    }
+
     /** Promise 11: likewise. */
     private static void madeOfSixty() {
         PutBack x = Calls.with("p=copy[a]*.del[b]\"b\"", "q=(copy[a].del[b]*\"bb\")*", "r=copy[a]*.del[b]*" + TWENTY, "s=copy[a]*.ins\"c\"");
@@ -368,6 +393,40 @@ public final class LensEdgesTest {
         makes(x, 1, many("a", 41), null);
     }
 
+    /** To put back, what the last lens of all SHOWS is not asked. */
+    private static void lastIsNotShown() {
+        PutBack x = Calls.with("p=copy[a]*.del[x]\"x\"then(copy[a].ins\"bbbb\")*", "q=p then copy\"abbbb\"*");
+        for (int lens = 0; lens < 2; lens++) {
+            shows(x, lens, many("a", 12) + "x", many("abbbb", 12));
+            shows(x, lens, many("a", 13) + "x", null);
+            puts(x, lens, "abbbb", many("a", 12) + "x", "ax");
+            makes(x, lens, many("abbbb", 12), many("a", 12) + "x");
+        }
+        puts(x, 0, "abbbb", many("a", 13) + "x", "ax");
+        puts(x, 1, "abbbb", many("a", 13) + "x", null);
+    }
+
+    /** Each of the eight lenses is "then" and has the one ahead of it as a part; none can be made simpler. */
+    private static void eightDeep() {
+        PutBack x = Calls.with("a=copy[a]*.ins\"b\"then copy[a]*.del\"b\"\"b\"");
+        String rest = "copy[a]*";
+        for (int i = 1; i < 8; i++) {
+            char c = (char) ('a' + i);
+            char before = (char) (c - 1);
+            rest = rest + ".copy[" + i + "]";
+            Told.taken(x, c + "=" + before + ".copy[" + i + "].ins\"b\"then " + rest + ".del\"b\"\"b\"");
+        }
+        String most = many("a", 52) + "1234567";
+        shows(x, 7, most, most);
+        puts(x, 7, most, "1234567", most);
+        puts(x, 7, "1234567", most, "1234567");
+        makes(x, 7, most, most);
+        shows(x, 7, "a" + most, null);
+        puts(x, 7, "a" + most, "1234567", null);
+        puts(x, 7, "1234567", "a" + most, null);
+        makes(x, 7, "a" + most, null);
+    }
+
     /** What a part SHOWS whose KEY is asked may not be longer than 60, be it put into or not. */
     private static void shownOfKeys() {
         for (int more = 0; more <= 1; more++) {
@@ -430,6 +489,21 @@ public final class LensEdgesTest {
                 Calls.due("17 " + told[i] + " " + lens, x.parts(lens, 0), want[i]);
                 Calls.due("19 " + told[i] + " " + lens, x.key(lens, 0, 0, 1), want[i] == NONE ? NONE : told[i].endsWith("dict(key[a])") ? 1 : 0);
             }
+        }
+    }
+
+    /** A then B: of B, which may be "then" itself, eight times. */
+    private static void partsOfEightThens() {
+        PutBack x = Calls.with("a=copy[a]*then dict(key[a])");
+        for (int i = 1; i < 8; i++) {
+            Told.taken(x, (char) ('a' + i) + "=copy[a]*then " + (char) ('a' + i - 1));
+        }
+        Calls.say(x, 0, "aaa");
+        for (int lens = 0; lens < 8; lens++) {
+            Calls.due("17 of " + lens, x.parts(lens, 0), 3);
+            Calls.due("19 of " + lens, x.key(lens, 0, 2, 1), 1);
+            Calls.due("19 of " + lens, x.key(lens, 0, 3, 1), NONE);
+            Calls.due("18 of " + lens, x.aligned(lens, 0, 0, 0), NONE);
         }
     }
 
@@ -607,5 +681,24 @@ public final class LensEdgesTest {
             Calls.due("20 anew", x.laws(0, 3, 5), more);
             Calls.due("20 anew", x.laws(0, 3, 4), more == 2 ? 1 : 0);
         }
+    }
+
+    /** The least TEXTS of all count, too; and a TEXT that differs by its first SYMBOL, by its last one. */
+    private static void lawsOfTheLeast() {
+        String one = "ins\"a\".copy[a]*|del\"b\"\"b\".copy[b]*";
+        PutBack x = Calls.with("a=" + one, "b=a" + many(" then a", 59), "c=b then a", "d=del[0-1]\"1\".copy[a]|del[2-3]\"3\".copy[b]",
+            "e=copy[a].del[0-1]\"1\"|copy[b].del[0-1]\"1\"");
+        // "", a, b, aa, bb: 60 symbols a come (or 61) or as many b go, where a view is shown; and back where one is made.
+        int[] shown = {0, 1, 1, 2, 2};
+        int[] made = {0, 0, 1, 1, 2};
+        for (int n = 1; n <= 5; n++) {
+            Calls.due("20 shown, of 60 " + n, x.laws(1, 0, n), shown[n - 1]);
+            Calls.due("20 shown, of 61 " + n, x.laws(2, 0, n), 1 + shown[n - 1]);
+            Calls.due("20 made, of 60 " + n, x.laws(1, 3, n), made[n - 1]);
+            Calls.due("20 made, of 61 " + n, x.laws(2, 3, n), 1 + made[n - 1]);
+        }
+        // 0a, 1a by a, b: what was 0a becomes 1a behind b.
+        Calls.due("20 by the first SYMBOL", x.laws(3, 2, 2), 1);
+        Calls.due("20 by the last SYMBOL", x.laws(4, 2, 2), 1);
     }
 }

@@ -176,6 +176,7 @@ public final class LimitsTest {
         towerOfLengths(1500);
         towerOfDeepNumbers();
         towerInRounds();
+        towerIntoRound();
         towerOverSixty();
         towersOfKeys();
         towerOfNothing();
@@ -333,13 +334,25 @@ public final class LimitsTest {
         roundTrip(x, 7, source, bits(12345 + added, 17).replace("1", "22"), source);
     }
 
+    /** Symbols go one by one, and then y and z are shown in turn: what comes again isn't what was there at first. */
+    private static void towerIntoRound() {
+        PutBack x = tower(8, "a=del[a-b]\"a\".copy[a-b]*.copy\"x\"|(del\"x\"\"x\".ins\"y\"|del\"z\"\"z\".ins\"y\")|del\"y\"\"y\".ins\"z\"");
+        for (int n = 0; n <= 59; n++) {
+            Calls.say(x, 0, repeated("ab", 30).substring(0, n) + "x");
+            Calls.due("get", x.get(7, 0, 1), 1);
+            Calls.due("get", x.symbol(1, 0), n % 2 == 0 ? 'z' : 'y');
+            Calls.due("62 symbols in the midst", x.create(7, 1, 2), PutBack.NONE);
+        }
+    }
+
     /** One symbol more with each lens: what all but the last one show of the source is asked, when it is put into. */
     private static void towerOverSixty() {
         PutBack x = tower(1, "a=ins\"a\".copy[a]*|del\"b\"\"b\".copy[b]*");
         Calls.due("define", Calls.define(x, "b=a" + repeated(" then a", 79)), 1);
         Calls.due("define", Calls.define(x, "c=b" + repeated(" then a", 39)), 2);
-        for (int lens : new int[] {1, 2}) {
-            int more = lens == 1 ? 80 : 119;
+        Calls.due("define", Calls.define(x, "d=a then b"), 3);
+        for (int lens : new int[] {1, 2, 3}) {
+            int more = lens == 1 ? 80 : lens == 2 ? 119 : 81;
             // 'more' lenses show as many symbols more, some of them b that go.
             for (int went = more - 62; went <= 60; went++) {
                 boolean shown = more - went <= 60;

@@ -539,6 +539,12 @@ public final class TellingEdgesTest {
             Told.refused("a=" + own + "x", 2, 2, NONE);
             Told.refused("a=" + own + own, 2, 2, NONE);
             Told.cant("a=" + own + "abcdef", 2);
+            // Another letter anywhere makes it a NAME.
+            for (int i = 0; i < own.length(); i++) {
+                String other = own.substring(0, i) + "q" + own.substring(i + 1);
+                Told.taken(other + "=copy[a]");
+                Told.refused("a=" + other + "[a]", 2, 2, NONE);
+            }
         }
         for (char c : new char[] {'`', '{', 'A', 'Z', '0', '9', '_', '-'}) {
             Told.cant(c + "=copy[a]", 0);
