@@ -2633,7 +2633,7 @@ public final class PutBack {
                 }
                 settle(low, start);
                 since++;
-                boolean again = isLike(begin, old, low, top - low);
+                boolean again = since > 0 && isLike(begin, old, low, top - low);
                 left = again ? (left - 1) % since + 1 : left;
                 if (again || since == span) {
                     System.arraycopy(store, low, store, begin, top - low);

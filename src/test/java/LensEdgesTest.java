@@ -20,6 +20,7 @@ public final class LensEdgesTest {
         putByPlace();
         putByKey();
         keysOfSeveralUnits();
+        keysBehindOthers();
         notPut();
         notOfKinds();
         madeOfSixty();
@@ -245,6 +246,19 @@ public final class LensEdgesTest {
         puts(x, 2, "x;x;", "xa1;2xb3;4", "x;2x;4");
     }
 
+    /** Dicts ahead of and behind others whose VIEWS are as long as their SOURCES: each goes by its own KEYS. */
+    private static void keysBehindOthers() {
+        PutBack x = Calls.with("d=dict(key[a-c].del[0-9]\"5\".ins\"6\")", "t=(swap(copy[a-c],copy[6]))*", "p=d then t", "s=(swap(copy[a-c],copy[0-9]))*",
+            "e=dict(swap(del[0-9]\"5\".ins\"6\",key[a-c]))", "q=s then e", "r=q then t", "u=d then dict(swap(copy[a-c],key[6]))");
+        puts(x, 0, "b6a6", "a1b2", "b2a1");
+        puts(x, 2, "6b6a", "a1b2", "b2a1");
+        puts(x, 2, "6b6c6a", "a1b2", "b2c5a1");
+        puts(x, 5, "b6a6", "a1b2", "b2a1");
+        puts(x, 6, "6b6a6a", "a1b2", "b2a1a5");
+        puts(x, 7, "6b6a", "a1b2", "b2a1");
+        makes(x, 7, "6b6a", "b5a5");
+    }
+
     /** It is no VIEW, no SOURCE, or there is none such. */
     private static void notPut() {
         PutBack x = Calls.with("p=copy[a]*.del[,]\",\".ins\"b\"", "q=copy[a]");
@@ -358,6 +372,13 @@ public final class LensEdgesTest {
         puts(x, 0, "a" + many("b", 20), many("a", 41), "a");
         puts(x, 4, "a" + many("b", 20), many("a", 40), "a");
         puts(x, 4, "a" + many("b", 20), many("a", 41), null);
+        // Parts that become longer by one, shorter by one or stay, and two symbols more.
+        x = Calls.with("p=(copy\"a\"|del\"b\"\"b\").ins\"cc\".copy[e]*", "q=p then copy(\"a\"?\"cc\"[e]*)");
+        puts(x, 1, "acc", "a" + many("e", 57), "a");
+        puts(x, 1, "acc", "a" + many("e", 58), null);
+        puts(x, 1, "acc", "b" + many("e", 58), "a");
+        puts(x, 1, "acc", "b" + many("e", 59), null);
+        puts(x, 0, "acc", "b" + many("e", 59), "a");
     }
 
     /** What is PUT BACK into that may not be longer than 60. */

@@ -179,6 +179,7 @@ public final class LimitsTest {
         towerIntoRound();
         towerOverSixty();
         towersOfKeys();
+        towersOfLongKeys();
         towerOfNothing();
         towerInRow();
     }
@@ -412,6 +413,24 @@ public final class LimitsTest {
         Calls.due("put", Calls.read(x, 2), "c3x2b5");
         Calls.due("key", x.key(7, 1, 0, 2), 1);
         Calls.due("key", x.key(7, 1, 1, 2), 0);
+    }
+
+    /** Each bit becomes longer and shorter again; KEYS of the last dict are asked of what its parts show. */
+    private static void towersOfLongKeys() {
+        PutBack x = tower(4, "a=dict((copy[0-1].ins\"c\")*.key[;])", "b=dict((copy[0-1].del\"c\"\"c\")*.key[;])", "c=a then b" + repeated(" then a then b", 39),
+            "d=dict((copy[0-1].ins\"dd\")*.key[;])");
+        Calls.due("define", Calls.define(x, "e=c then d"), 4);
+        Calls.due("define", Calls.define(x, "f=" + NUMBERS.substring(2) + ".copy[;]"), 5);
+        Calls.due("define", Calls.define(x, "g=(f)*" + repeated(" then(f)*", 65)), 6);
+        Calls.due("define", Calls.define(x, "h=g then d"), 7);
+        Calls.say(x, 1, ";");
+        for (int lens : new int[] {4, 7}) {
+            for (int bits = 0; bits <= 59; bits++) {
+                Calls.say(x, 0, repeated("1", bits) + ";");
+                Calls.due("get " + bits, x.get(lens, 0, 2), bits <= 19 ? 3 * bits + 1 : PutBack.NONE);
+                Calls.due("put " + bits, x.put(lens, 1, 0, 2), bits <= 19 ? 1 : PutBack.NONE);
+            }
+        }
     }
 
     /** More texts in the midst, and more parts that wait, than there is room for at first. */
