@@ -1083,12 +1083,17 @@ public final class PutBack {
             return good;
         }
 
+        /** The links may be one lens so often each: all of them are that lens as often as they tell together. */
         private long powerOfLinks() {
-            boolean alike = kids.length > 0;
-            for (int i = 1; i < kids.length && alike; i++) {
-                alike = kids[i] == kids[0];
+            long sum = 0;
+            for (int i = 0; i < kids.length; i++) {
+                boolean again = i > 0 && kids[i] == kids[i - 1];
+                if (!again && kids[i].base() != kids[0].base()) {
+                    return 1;
+                }
+                sum += kids[i].power;
             }
-            return alike ? kids.length * kids[0].power : 1;
+            return Math.max(1, sum);
         }
 
         /** What stands there as often as 'power' tells. */

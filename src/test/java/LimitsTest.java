@@ -176,6 +176,7 @@ public final class LimitsTest {
         towerOfLengths(1500);
         towerOfDeepNumbers();
         towerInRounds();
+        towerInMixedRounds();
         towerIntoRound();
         towerOverSixty();
         towersOfKeys();
@@ -333,6 +334,23 @@ public final class LimitsTest {
         long added = 86L * 86 * 86 * 86 * 86 * 86 * 86;
         String source = bits(12345, 17).replace("1", "22");
         roundTrip(x, 7, source, bits(12345 + added, 17).replace("1", "22"), source);
+    }
+
+    /** The same numbers, but each lens names several of those ahead of it: all of them are the first one so often. */
+    private static void towerInMixedRounds() {
+        String[] told = new String[8];
+        long[] added = new long[8];
+        told[0] = "a=(del\"22\"\"22\".ins\"0\")*.(del\"0\"\"0\".ins\"22\".copy(\"0\"|\"22\")*|copy\"\")";
+        added[0] = 1;
+        for (int i = 1; i < 8; i++) {
+            char before = (char) ('a' + i - 1);
+            char earlier = (char) ('a' + i / 2);
+            told[i] = (char) ('a' + i) + "=a" + repeated(" then " + before, 60) + " then " + (i > 1 ? earlier : 'a');
+            added[i] = 1 + 60 * added[i - 1] + (i > 1 ? added[i / 2] : 1);
+        }
+        PutBack x = tower(8, told);
+        String source = bits(54321, 17).replace("1", "22");
+        roundTrip(x, 7, source, bits(54321 + added[7], 17).replace("1", "22"), source);
     }
 
     /** Symbols go one by one, and then y and z are shown in turn: what comes again isn't what was there at first. */
