@@ -379,6 +379,19 @@ public final class LensEdgesTest {
         puts(x, 1, "acc", "b" + many("e", 58), "a");
         puts(x, 1, "acc", "b" + many("e", 59), null);
         puts(x, 0, "acc", "b" + many("e", 59), "a");
+        // Longer by one, and by one again: of a source of 60 there is no text in the midst.
+        x = Calls.with("p=copy[a]*.(ins\"b\"|copy\"d\".ins\"d\")", "q=p then copy[a]*.(del\"b\"\"b\".ins\"ee\"|copy\"dd\".ins\"f\")");
+        puts(x, 1, "ee", many("a", 59), "");
+        puts(x, 1, "ee", many("a", 60), null);
+        puts(x, 1, "ee", many("a", 58) + "d", "");
+        puts(x, 1, "ee", many("a", 59) + "d", null);
+        // Each part becomes longer or shorter by one, then shorter or longer again.
+        x = Calls.with("p=(copy\"x\".(ins\"b\"|del\"z\"\"z\"))*", "q=p then(copy\"x\".(del\"b\"\"b\"|ins\"d\"))*");
+        shows(x, 1, many("x", 30), many("x", 30));
+        shows(x, 1, many("x", 31), null);
+        shows(x, 1, many("xz", 30), many("xd", 30));
+        puts(x, 1, "x", many("x", 31), null);
+        puts(x, 1, "x", many("x", 30), "x");
     }
 
     /** What is PUT BACK into that may not be longer than 60. */
@@ -412,6 +425,16 @@ public final class LensEdgesTest {
         }
         makes(x, 4, many("a", 40) + many("b", 20), many("a", 40));
         makes(x, 1, many("a", 41), null);
+        // Two symbols of each one are made in the midst, and one of these; the texts there may also be shorter.
+        x = Calls.with("p=(del\"p\"\"p\".ins\"a\".(ins\"b\"|del\"z\"\"z\"))*", "q=p then(del(\"a\"\"b\"?)\"ab\".ins\"c\")*");
+        makes(x, 1, many("c", 30), many("p", 30));
+        makes(x, 1, many("c", 31), null);
+        puts(x, 1, many("c", 31), many("pz", 30), null);
+        puts(x, 1, many("c", 30), many("pz", 29), many("pz", 29) + "p");
+        puts(x, 1, many("c", 30), many("pz", 30), many("pz", 30));
+        shows(x, 1, many("p", 30), many("c", 30));
+        shows(x, 1, many("p", 31), null);
+        shows(x, 1, many("pz", 30), many("c", 30));
     }
 
     /** To put back, what the last lens of all SHOWS is not asked. */

@@ -16,6 +16,7 @@ public final class SetEdgesTest {
         nthOfThousand();
         compare();
         compareByOneText();
+        compareByManyTexts();
         set();
         setOfSixty();
         goesOn();
@@ -241,6 +242,28 @@ public final class SetEdgesTest {
                 Calls.due("14 " + one + " " + other, x.compare(one, 0, other, 1), due[one][other]);
             }
         }
+    }
+
+    /** SETS that go two ways with each SYMBOL, and differ behind fifteen of them alone. */
+    private static void compareByManyTexts() {
+        String each = "(\"a\"|\"b\")";
+        String most = each.repeat(14);
+        PutBack x = Calls.with("p=copy(" + most + each + ")", "q=copy(" + most + "(\"a\"|\"c\"))", "r=copy(" + most + each + "\"d\"?)",
+            "s=copy(" + most + "(\"a\"|[bc]))", "t=copy(" + most + "[a-b])");
+        int[][] due = {
+            {0, 3, 1, 1, 0},
+            {3, 0, 3, 1, 3},
+            {2, 3, 0, 3, 2},
+            {2, 2, 3, 0, 2},
+            {0, 3, 1, 1, 0}};
+        for (int one = 0; one < 5; one++) {
+            for (int other = 0; other < 5; other++) {
+                Calls.due("14 " + one + " " + other, x.compare(one, 1, other, 0), due[one][other]);
+            }
+        }
+        Told.taken(x, "u=p then t");
+        Told.refused(x, "v=p then q", 12, 4, PutBack.NONE);
+        Told.refused(x, "v=p then s", 12, 4, PutBack.NONE);
     }
 
     /** Promise 15: POSITIONS, how many FIRST, how many LAST, whether the empty TEXT is of it; no other what. */
