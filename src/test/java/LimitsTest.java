@@ -183,6 +183,54 @@ public final class LimitsTest {
         towersOfLongKeys();
         towerOfNothing();
         towerInRow();
+        towerOfSpacedNumbers();
+        rowsSplitInTwoWays();
+        rowsOfManyPositions();
+    }
+
+    /** Three symbols stay behind each bit of a number. */
+    private static void towerOfSpacedNumbers() {
+        PutBack x = tower(8, "a=(del\"1\"\"1\".ins\"0\".copy\"xyz\")*.(del\"0\"\"0\".ins\"1\".copy(\"xyz\"([0-1]\"xyz\")*)|copy\"\")");
+        long added = 86L * 86 * 86 * 86 * 86 * 86 * 86;
+        for (long n = 1; n < 20000; n *= 7) {
+            roundTrip(x, 7, spaced(n), spaced(n + added), spaced(n));
+            roundTrip(x, 1, spaced(n), spaced(n + 86), spaced(n));
+        }
+    }
+
+    private static String spaced(long n) {
+        return bits(n, 15).replace("0", "0xyz").replace("1", "1xyz");
+    }
+
+    /** One symbol and two, twice, and then two and one. */
+    private static void rowsSplitInTwoWays() {
+        String two = "copy([a-b][a-b])";
+        PutBack x = Calls.with("r=" + FLIP + "." + two, "s=" + two + "." + FLIP, "t=r then r then s", "u=r then s then s", "v=s then r then r then r then s");
+        roundTrip(x, 2, "aba", "abb", "aba");
+        roundTrip(x, 3, "aba", "bba", "aba");
+        roundTrip(x, 4, "aba", "bba", "aba");
+    }
+
+    /** Of two lenses of 57 positions the parts that aren't plain have 85 in all. */
+    private static void rowsOfManyPositions() {
+        String some = "f" + repeated(".f", 13);
+        String others = "c" + repeated(".c", 13);
+        PutBack x = Calls.with("c=copy[a-c]", "f=del\"a\"\"a\".ins\"b\"|del\"b\"\"b\".ins\"a\"|copy\"c\"", "g=" + some + "." + others,
+            "h=" + others + "." + some, "q=g then h", "r=q.copy\";\"", "s=r then r then r", "t=r then(g.copy\";\")");
+        String source = repeated("abca", 7);
+        String turned = repeated("bacb", 7);
+        roundTrip(x, 4, source, turned, source);
+        roundTrip(x, 5, source + ";", turned + ";", source + ";");
+        roundTrip(x, 6, source + ";", turned + ";", source + ";");
+        roundTrip(x, 7, source + ";", source.substring(0, 14) + turned.substring(14) + ";", source + ";");
+        Calls.due("positions", x.set(6, 0, 0), 57);
+        Calls.due("positions", x.set(6, 1, 0), 57);
+        // The same of sources alone.
+        x = Calls.with("c=copy[a-c]", "f=del(\"a\"|\"b\"|\"c\")\"c\".ins\"d\"", "d=copy\"d\"", "g=" + some + "." + others,
+            "h=" + others.replace("c", "d") + "." + some, "q=g then h", "r=q.copy\";\"",
+            "s=r then" + repeated(" del\"d\"\"d\".ins\"b\".", 28) + "copy\";\"");
+        roundTrip(x, 5, source, repeated("d", 28), repeated("c", 28));
+        roundTrip(x, 7, source + ";", repeated("b", 28) + ";", repeated("c", 28) + ";");
     }
 
     private static void towerInRow() {
@@ -207,6 +255,10 @@ public final class LimitsTest {
             Calls.due("create", x.create(3, 0, 1), 1);
             Calls.due("put", x.put(3, 0, 0, 1), 0);
         }
+        // Once more, so that it is an odd number of times.
+        Calls.due("define", Calls.define(x, "e=c then a"), 4);
+        roundTrip(x, 4, "", "x", "");
+        roundTrip(x, 4, "x", "", "x");
     }
 
     private static void lawful(PutBack x, int lens) {
@@ -248,6 +300,12 @@ public final class LimitsTest {
         Calls.say(x, 1, "101");
         Calls.due("put", x.put(5, 1, 0, 2), 3);
         Calls.due("put", Calls.read(x, 2), "200");
+        Calls.due("define", Calls.define(x, "g=copy[0-1]*.del\"b\"\"b\"then d"), 6);
+        Calls.due("define", Calls.define(x, "h=del\"b\"\"b\".copy[0-1]*then d"), 7);
+        for (long n = 1; n > 0; n *= 37) {
+            roundTrip(x, 6, bits(n, 59) + "b", bits(-n - 2, 59), bits(n, 59) + "b");
+            roundTrip(x, 7, "b" + bits(n, 59), bits(-n - 2, 59), "b" + bits(n, 59));
+        }
     }
 
     /** Each lens names the one ahead of it and the one that turns all bits, in turn, 42 times. */
