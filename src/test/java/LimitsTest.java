@@ -186,6 +186,116 @@ public final class LimitsTest {
         towerOfSpacedNumbers();
         rowsSplitInTwoWays();
         rowsOfManyPositions();
+        towersOfMixedNumbers();
+        askedAhead();
+        twiceAlone();
+        manyWaiting();
+    }
+
+    /** One less, all bits turned, or by the first bit one more or all others turned: told in Java. */
+    private static String mixed(int lens, String text) {
+        if (lens < 2 || text.isEmpty()) {
+            return lens == 0 ? less(text) : turned(text);
+        }
+        String rest = text.substring(1);
+        String turned = turned(rest);
+        return text.charAt(0) == '0' ? "0" + turned : "1" + turned(less(turned));
+    }
+
+    private static String less(String text) {
+        int one = text.indexOf('1');
+        int many = one < 0 ? text.length() : one;
+        return "1".repeat(many) + (one < 0 ? "" : "0" + text.substring(one + 1));
+    }
+
+    private static String turned(String text) {
+        return text.replace('0', 'x').replace('1', '0').replace('x', '1');
+    }
+
+    private static String mixed(int[][] words, int lens, String text) {
+        if (lens < 3) {
+            return mixed(lens, text);
+        }
+        String made = text;
+        for (int each : words[lens]) {
+            made = mixed(words, each, made);
+        }
+        return made;
+    }
+
+    /** Three lenses in any order, and what is made of them: they carry in too many ways to be known all at once. */
+    private static void towersOfMixedNumbers() {
+        String more = NUMBERS.substring(2);
+        for (int round = 0; round < 8; round++) {
+            PutBack x = Calls.with(LESS.replace("b=", "a="), OTHERS, "c=copy\"\"|copy\"0\"." + OTHERS.substring(2) + "|copy\"1\"." + more);
+            int[][] words = new int[8][9];
+            for (int i = 3; i < 8; i++) {
+                StringBuilder told = new StringBuilder();
+                for (int k = 0; k < 9; k++) {
+                    words[i][k] = i == 3 ? pick(3) : pick(6) == 0 ? pick(i) : i - 1;
+                    told.append(k == 0 ? "" : " then ").append((char) ('a' + words[i][k]));
+                }
+                Calls.due("define", Calls.define(x, (char) ('a' + i) + "=" + told), i);
+            }
+            for (int length = round % 3; length <= 60; length += 19) {
+                String source = bits(123456789123L * (round + 1), length);
+                roundTrip(x, 7, source, mixed(words, 7, source), source);
+            }
+        }
+    }
+
+    /** Lenses of more than one kind: what all but the last one show of the source is asked, and it alone isn't. */
+    private static void askedAhead() {
+        String longer = "copy[a-b]*.ins\"cccccccccc\"";
+        String shorter = "copy[a-b]*.del\"cccccccccc\"\"cccccccccc\"";
+        PutBack x = Calls.with("k=" + FLIP + "*", "j=copy[a-b].k|copy\"\"", "g=" + longer, "s=" + shorter,
+            "m=k" + repeated(" then g then s then k", 26), "n=k then m", "o=k" + repeated(" then j then k", 21) + " then g", "p=k then o");
+        for (int lens = 4; lens < 6; lens++) {
+            putsAhead(x, lens, "a", 50, true, lens == 4 ? "b" : "a");
+            putsAhead(x, lens, "a", 51, false, "");
+            putsAhead(x, lens, "", 60, false, "");
+        }
+        // The first symbol is turned 22 times, the second one 43 times.
+        for (int lens = 6; lens < 8; lens++) {
+            putsAhead(x, lens, "aacccccccccc", 60, true, lens == 6 ? "ab" : "ba");
+            putsAhead(x, lens, "cccccccccc", 51, true, "");
+        }
+    }
+
+    private static void putsAhead(PutBack x, int lens, String view, int many, boolean good, String due) {
+        Calls.say(x, 0, repeated("a", many));
+        Calls.say(x, 1, view);
+        for (int i = 0; i < 2; i++) {
+            Calls.due("put " + lens + " into " + many, x.put(lens, 1, 0, 2), good ? due.length() : PutBack.NONE);
+            Calls.due("put " + lens + " into " + many, good ? Calls.read(x, 2) : due, due);
+        }
+    }
+
+    /** A lens of very many parts, twice behind itself. */
+    private static void twiceAlone() {
+        PutBack x = Calls.with("n=ins\"\"", "a=(del\"a\"\"a\".ins\"bb\"|del\"bb\"\"bb\".ins\"a\")*.copy\";\"" + repeated(".n", 200), "b=a then a",
+            "c=b then a", "d=b then b");
+        roundTrip(x, 1, "abb;", "bba;", "abb;");
+        roundTrip(x, 2, "abb;", "abb;", "abb;");
+        roundTrip(x, 3, "abb;", "bba;", "abb;");
+        roundTrip(x, 4, "abb;", "abb;", "abb;");
+        Calls.say(x, 0, repeated("a", 30) + ";");
+        Calls.due("61 symbols", x.get(2, 0, 1), PutBack.NONE);
+        Calls.say(x, 0, repeated("a", 29) + ";");
+        Calls.due("59 symbols", x.get(2, 0, 1), 30);
+    }
+
+    /** Each lens has 60 parts in the midst, of which the first one has so many again. */
+    private static void manyWaiting() {
+        PutBack x = Calls.with("n=ins\"c\"", "m=del\"c\"\"c\"", "c=copy[a-b]");
+        for (char c = 'd'; c < 'i'; c++) {
+            Told.taken(x, c + "=copy[a-b]" + repeated(".n", 59) + " then " + (char) (c - 1) + repeated(".m", 59));
+        }
+        // From the last one on, as nothing is known then of those within it.
+        for (int lens = 7; lens >= 2; lens--) {
+            roundTrip(x, lens, "a", "a", "a");
+            lawful(x, lens);
+        }
     }
 
     /** Three symbols stay behind each bit of a number. */
