@@ -226,7 +226,7 @@ public final class LimitsTest {
     /** Three lenses in any order, and what is made of them: they carry in too many ways to be known all at once. */
     private static void towersOfMixedNumbers() {
         String more = NUMBERS.substring(2);
-        for (int round = 0; round < 8; round++) {
+        for (int round = 0; round < 25; round++) {
             PutBack x = Calls.with(LESS.replace("b=", "a="), OTHERS, "c=copy\"\"|copy\"0\"." + OTHERS.substring(2) + "|copy\"1\"." + more);
             int[][] words = new int[8][9];
             for (int i = 3; i < 8; i++) {
@@ -237,7 +237,7 @@ public final class LimitsTest {
                 }
                 Calls.due("define", Calls.define(x, (char) ('a' + i) + "=" + told), i);
             }
-            for (int length = round % 3; length <= 60; length += 19) {
+            for (int length = 1 + round % 5; length <= 60; length += 14) {
                 String source = bits(123456789123L * (round + 1), length);
                 roundTrip(x, 7, source, mixed(words, 7, source), source);
             }
